@@ -711,16 +711,18 @@ public final class Reifytown {
             return owner.told[kind.index * NAMES + name];
         }
 
-        /**
-         * The argument of the first type of a kind that is found in a type, MISSING if there is none.
-         * All that lies above a kind has a lower number, so this goes at most 10 deep.
-         */
+        /** The argument of the first type of a kind that is found in a type, MISSING if there is none. */
         static int argumentFor(Kind kind, int argument, Kind wanted) {
+            return searchArgument(kind, argument, wanted);
+        }
+
+        /** All that lies above a kind has a lower number, so this goes at most 10 deep. */
+        private static int searchArgument(Kind kind, int argument, Kind wanted) {
             if (kind == wanted) {
                 return argument;
             }
             for (int i = 0; i < kind.otherCount; i++) {
-                int found = argumentFor(kind.others[i], Types.put(kind.otherArguments[i], argument), wanted);
+                int found = searchArgument(kind.others[i], Types.put(kind.otherArguments[i], argument), wanted);
                 if (found != MISSING) {
                     return found;
                 }
@@ -728,7 +730,7 @@ public final class Reifytown {
             if (kind.parent == null) {
                 return MISSING;
             }
-            return argumentFor(kind.parent, Types.put(kind.parentArgument, argument), wanted);
+            return searchArgument(kind.parent, Types.put(kind.parentArgument, argument), wanted);
         }
     }
 

@@ -305,7 +305,7 @@ public final class RandomRunsTest {
 
     public static void main(String[] args) {
         int from = args.length > 0 ? Integer.parseInt(args[0]) : 0;
-        int to = args.length > 1 ? Integer.parseInt(args[1]) : 4000;
+        int to = args.length > 1 ? Integer.parseInt(args[1]) : 10000;
         for (int i = from; i < to; i++) {
             try {
                 new RandomRunsTest(i).live();

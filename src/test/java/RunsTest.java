@@ -16,22 +16,27 @@ public final class RunsTest {
         promise15Iterators();
         promise15IteratorFaults();
         promise15IteratorsAtLast();
+        promise15IteratorsGivingAtLast();
         promise15Delegates();
         promise15DelegateRows();
+        promise15RowsInOrder();
         promise15Handlers();
         promise15Filters();
         promise15AtLast();
         promise15AtLastUnderThrow();
         promise15AtLastTakenOver();
+        promise15AtLastKept();
         promise15EndOfBody();
         promise15Statics();
         promise15StaticsSpoilt();
         promise15Limit();
         promise16Written();
+        promise24Pieces();
         promise17To21Answers();
         promise22StaticOf();
         promise23To30Counts();
         promise31IsSame();
+        promise31Differences();
         manyCalls();
         Checks.close("RunsTest");
     }
@@ -429,6 +434,35 @@ public final class RunsTest {
         runs("15 thrown by Q", town, thrown, 3, "rn0 3");
     }
 
+    private static void promise15IteratorsGivingAtLast() {
+        Reifytown town = new Reifytown();
+        town.addKind('c', false, '=', '-');
+        town.type(0, -1);
+        int itself = body(town, "y 1", "e", "S 2 2 0", "E 3 2 4", "e");
+        town.addRegion(itself, 0, 0, 'f', 0, 2);
+        int gives = body(town, "y 1", "e", "y 1", "p 1", "e");
+        town.addRegion(gives, 0, 0, 'f', 0, 2);
+        int thrown = body(town, "x 1", "e", "y 1", "p 1", "e");
+        town.addRegion(thrown, 0, 0, 'f', 0, 2);
+        int returned = body(town, "r 1", "e", "y 1", "p 1", "e");
+        town.addRegion(returned, 0, 0, 'f', 0, 2);
+        town.addMethod(0, 0, 'v', itself);
+        town.addMethod(0, 1, 'v', gives);
+        town.addMethod(0, 2, 'v', thrown);
+        town.addMethod(0, 3, 'v', returned);
+        int ends = body(town, "N 2 2", "G 3 2 0 1", "s 3 2 0", "E 4 3 5", "Q 3", "r 4");
+        runs("15 E of one that is ended", town, ends, 3, "u5");
+        int nobody = body(town, "N 2 2", "G 3 2 1 1", "E 4 3 5", "Q 3", "p 5", "E 4 3 5", "r 4");
+        runs("15 gives to nobody", town, nobody, 3, "rn0 3 3");
+        int rest = body(town, "N 2 2", "G 3 2 3 1", "E 4 3 5", "p 5", "p 4", "E 4 3 5", "r 4");
+        runs("15 gives on its way out", town, rest, 3, "rn0 3 1 3");
+        // Free in the document: the exception that stood still is thrown anew from the step that went on.
+        int anew = body(town, "N 2 2", "G 3 2 2 1", "E 4 3 5", "p 4", "E 4 3 5", "x 5", "= 2 44", "p 2", "p 5");
+        town.addRegion(anew, 2, 2, 'c', -1, 5);
+        town.addRegion(anew, 4, 4, 'c', -1, 6);
+        runs("15 thrown anew", town, anew, 7, "r0 1 7 44 7");
+    }
+
     private static void promise15Delegates() {
         Reifytown town = new Reifytown();
         town.addKind('c', false, '=', '-');
@@ -499,6 +533,40 @@ public final class RunsTest {
         runs("15 rows without end", other, loop, 0, "l");
         int prepend = body(other, "N 2 " + empty, "D 3 2 10", "P 4 3 4", "P 5 4 4", "M 5 5 3", "j 0 2");
         runs("15 long rows", other, prepend, 0, "l");
+    }
+
+    private static void promise15RowsInOrder() {
+        Reifytown town = new Reifytown();
+        town.addKind('c', false, '=', '-');
+        for (int i = 0; i < 3; i++) {
+            town.addMethod(0, i, 'v', body(town, "= 2 " + i, "p 2"));
+        }
+        town.type(0, -1);
+        String[] begin = {"N 2 2", "D 3 2 0", "D 4 2 1", "D 5 2 2"};
+        String[][] rows = {
+            {"P 1 4 3", "1 0"}, {"P 1 5 4;P 1 1 3", "2 1 0"}, {"P 1 3 4;P 1 4 1;P 1 1 5", "1 0 1 2"},
+            {"P 1 3 4;P 1 1 5;M 1 1 4", "0 2"}, {"P 1 3 4;P 1 1 5;M 1 1 3", "1 2"}, {"P 1 3 4;P 1 1 5;M 1 1 5", "0 1"},
+            {"P 1 3 4;P 1 1 1;P 1 1 5;M 1 1 4", "0 1 0 2"}, {"P 1 3 4;P 5 1 5;P 5 5 1;P 5 5 5;M 1 5 1", "0 1 2 0 1 0 1 2"},
+            {"P 1 3 4;P 5 1 5;P 5 5 1;P 5 5 3;M 1 5 1", "0 1 2 0"}, {"P 1 3 4;P 5 1 3;P 1 1 4;P 1 5 1", "0 1 0 0 1 1"},
+            {"P 1 3 4;P 5 1 3;P 4 1 4;P 5 5 4;M 1 5 1", "0 1 0 1"}, {"P 1 3 5;M 1 1 4", "0 2"},
+            {"P 1 3 4;P 1 1 3;P 5 4 4;M 1 1 5", "0 1 0"}, {"P 1 3 3;P 1 1 1;P 1 1 3;P 5 3 3;M 1 1 5", "0 0 0"},
+        };
+        for (String[] row : rows) {
+            Reifytown again = new Reifytown();
+            again.addKind('c', false, '=', '-');
+            for (int i = 0; i < 3; i++) {
+                again.addMethod(0, i, 'v', body(again, "= 2 " + i, "p 2"));
+            }
+            again.type(0, -1);
+            int b = body(again, begin);
+            Checks.write(again, b, row[0].split(";"));
+            Checks.write(again, b, "I 1 1 2");
+            runs("15 row " + row[0], again, b, 0, "r0 " + row[1]);
+            runs("15 row in another run " + row[0], again, b, 0, "r0 " + row[1]);
+        }
+        int two = body(town, begin);
+        Checks.write(town, two, "P 1 3 4", "P 5 1 5", "P 4 1 4", "I 3 1 2", "I 3 5 2", "I 3 4 2");
+        runs("15 rows stay as they are", town, two, 0, "r0 0 1 0 1 2 0 1 1");
     }
 
     private static void promise15Handlers() {
@@ -663,6 +731,33 @@ public final class RunsTest {
         runs("15 thrown by what it calls", town, kept, 4, "r0");
     }
 
+    private static void promise15AtLastKept() {
+        Reifytown town = new Reifytown();
+        town.addKind('c', false, '=', '-');
+        town.type(0, -1);
+        int noisy = body(town, "= 2 77", "x 2", "r 5");
+        town.addRegion(noisy, 0, 1, 'c', -1, 2);
+        town.addMethod(0, 0, 'v', noisy);
+        int inner = body(town, "x 1", "e", "C 2 0 0 1", "p 2", "e");
+        town.addRegion(inner, 0, 0, 'f', 0, 2);
+        town.addMethod(0, 1, 'v', inner);
+        int outer = body(town, "N 2 2", "C 3 2 1 1", "r 3", "r 5", "e", "= 2 -1", "r 2");
+        town.addRegion(outer, 1, 1, 'c', 4, 3);
+        town.addRegion(outer, 1, 1, 'c', -1, 5);
+        runs("15 goes on after a throw of another call", town, outer, 4, "rn4 77");
+        runs("15 goes on to its own handler", town, outer, 5, "rn-1 77");
+        Checks.same("27 once", town.finals(), 1);
+        int jumps = body(town, "r 1", "e", "C 4 5 0 1", "j 0 6", "p 1", "e", "e", "p 5", "e");
+        town.addRegion(jumps, 0, 0, 'f', 0, 2);
+        town.addRegion(jumps, 2, 2, 'c', -1, 6);
+        runs("15 a null receiver at last", town, jumps, 8, "r0 1");
+        int within = body(town, "r 1", "e", "j 0 6", "p 1", "e", "e", "= 2 3", "p 2", "e");
+        town.addRegion(within, 0, 0, 'f', 0, 2);
+        town.addRegion(within, 2, 2, 'f', 0, 3);
+        runs("15 a jump at last within a return", town, within, 8, "rn8 8 3");
+        Checks.same("27 both", town.finals(), 2);
+    }
+
     private static void promise15EndOfBody() {
         Reifytown town = new Reifytown();
         int end = body(town, "j 0 3", "p 1", "e");
@@ -798,6 +893,44 @@ public final class RunsTest {
         Checks.same("16 ends with l", town.runWritten(body(town, "j 0 0"), 5), 'l');
     }
 
+    private static void promise24Pieces() {
+        Reifytown town = new Reifytown();
+        town.addKind('c', true, '=', '-');
+        town.addKind('s', true, '=', '-');
+        int empty = body(town);
+        int other = body(town);
+        for (int name = 0; name < 3; name++) {
+            town.addMethod(0, name, 'v', name == 2 ? other : empty);
+            town.addMethod(1, name, 'v', empty);
+        }
+        int ofInt = town.type(0, 0);
+        int ofObject = town.type(0, 1);
+        int value = town.type(1, 0);
+        int ofValue = town.type(0, value);
+        int ofInts = town.type(0, ofInt);
+        int names = body(town, "N 2 " + ofInt, "C 3 2 0 1", "C 3 2 1 1", "C 3 2 2 1", "N 2 " + value, "C 3 2 10 1",
+            "C 3 2 11 1", "C 3 2 12 1", "C 3 2 12 1");
+        town.run(names, 0);
+        Checks.same("24 each name", town.pieces(), 6);
+        Checks.same("25 each call", town.calls(), 7);
+        int types = body(town, "N 2 " + ofInt, "C 3 2 0 1", "N 2 " + ofValue, "C 3 2 0 1", "N 2 " + ofObject, "C 3 2 0 1",
+            "N 2 " + ofInts, "C 3 2 0 1");
+        town.run(types, 0);
+        Checks.same("24 references share", town.pieces(), 3);
+        town.runWritten(types, 0);
+        Checks.same("24 each type", town.pieces(), 4);
+        int all = body(town, "N 2 " + ofInt, "C 3 2 0 1", "C 3 2 1 1", "N 2 " + ofObject, "C 3 2 0 1", "C 3 2 1 1",
+            "N 2 " + ofValue, "G 3 2 0 1", "D 3 2 1", "I 4 3 1", "C 3 2 0 1");
+        town.run(all, 0);
+        Checks.same("24 names and types", town.pieces(), 6);
+        Checks.same("29 share", town.pieceShare(), 1f);
+        town.run(body(town, "N 2 " + ofInt, "G 3 2 0 1"), 0);
+        Checks.same("24 of an iterator", town.pieces(), 1);
+        Checks.arithmetic("29 without calls", () -> town.pieceShare());
+        Checks.same("24 none is left", town.run(empty, 0), 'r');
+        Checks.same("24 none", town.pieces(), 0);
+    }
+
     private static void promise17To21Answers() {
         Reifytown town = new Reifytown();
         Checks.missing("17 no run", () -> town.returned());
@@ -910,6 +1043,28 @@ public final class RunsTest {
         town.run(fills, 5);
         town.isSame(put, 5);
         Checks.same("22 the last stays", town.staticOf(2, 0), 5);
+    }
+
+    /** The first way makes a type which the second way finds: they differ in one thing at a time. */
+    private static void promise31Differences() {
+        String[][] bodies = {
+            {"end", "T 2 1 2", "r 2", "N 3 -2", "x 1"},
+            {"number", "T 2 1 2", "j 0 5", "N 3 -2", "= 2 4", "r 2", "e", "r 2"},
+            {"letter", "T 2 1 2", "j 0 4", "N 2 -2", "r 2", "e", "r 2"},
+            {"thrown", "T 2 1 2", "j 0 5", "N 3 -2", "= 2 4", "x 2", "e", "x 2"},
+            {"output", "T 2 1 2", "j 0 6", "N 3 -2", "= 2 4", "p 2", "r 1", "e", "p 2", "r 1"},
+            {"outputs", "T 2 1 2", "j 0 6", "N 3 -2", "e", "p 1", "r 1", "e", "e", "r 1"},
+            {"steps", "T 2 1 2", "r 1", "N 3 -2", "r 1"},
+        };
+        for (String[] b : bodies) {
+            Reifytown town = new Reifytown();
+            town.addKind('c', true, '=', '-');
+            int made = body(town);
+            Checks.write(town, made, java.util.Arrays.copyOfRange(b, 1, b.length));
+            town.addRegion(made, 0, 0, 'c', 3, 2);
+            Checks.same("31 other " + b[0], town.isSame(made, 6), false);
+            Checks.same("31 then the same " + b[0], town.isSame(made, 6), true);
+        }
     }
 
     /** What one object is asked for at the most: 512 calls, the dearest ones. */
