@@ -20,11 +20,6 @@ public final class Reifytown {
     private static final int MOST_THINGS = MOST_STEPS + 1;
     private static final int BUCKETS = 1024;
 
-    // The document sets no bound to the targets of a delegate: these lie beyond what 1000 steps can call.
-    private static final int LONGEST_ROW = 4096;
-    private static final int FIRST_CELLS = 1024;
-    private static final int MOST_CELLS = 524288;
-
     // Far more turns than 1000 steps, and the ends of bodies between them, can take.
     private static final int MOST_TURNS = 1000000;
 
@@ -593,6 +588,11 @@ public final class Reifytown {
             return place >= firsts[region] && place <= lasts[region];
         }
 
+        /** Whether a call of it takes no step. */
+        boolean isEmpty() {
+            return stepCount == 0 && !isWatched(0);
+        }
+
         /** Whether something is told at last for a step at this place. */
         boolean isWatched(int place) {
             for (int i = 0; i < regionCount; i++) {
@@ -965,169 +965,544 @@ public final class Reifytown {
         }
     }
 
-    /** The delegates of a run: each one is a row of targets, a part of the cells. */
+    /**
+     * The delegates of a run. A row of targets is a tree of parts, since a row can be twice as long with
+     * each step, and rows share their parts. A part is one target, or two parts with lower numbers.
+     */
     private static final class Rows {
+        // A longer row counts as one of this length: no run could call so many.
+        static final long LONGEST = 1L << 60;
+        private static final int FIRST_PARTS = 256;
+        // 'P' makes one part, 'M' fewer than 'P's were made, twice: less than this in 1000 steps.
+        private static final int MOST_PARTS = 1 << 19;
+        private static final int WAYS = 128;
+
+        // Signs are reckoned modulo this prime number, 2 to the power of 61 less 1.
+        static final long PRIME = (1L << 61) - 1;
+        static final long BASE = 1350490027123405247L;
+        private static final long LOW_30 = (1L << 30) - 1;
+        private static final long LOW_31 = (1L << 31) - 1;
+
+        // What is known of a part: that its calls take no step, that its pieces were noted, or are to be.
+        private static final int IDLE = 1;
+        private static final int NOTED = 2;
+        private static final int ASKED = 4;
+
         private final long[] receivers = new long[MOST_THINGS];
         private final int[] ways = new int[MOST_THINGS];
         private int targetCount = 0;
-        private final int[] starts = new int[MOST_THINGS];
-        private final int[] lengths = new int[MOST_THINGS];
+        private final int[] roots = new int[MOST_THINGS];
         private int rowCount = 0;
-        private int[] cells = new int[FIRST_CELLS];
-        private int cellCount = 0;
+        private int[] lefts = new int[FIRST_PARTS];
+        private int[] rights = new int[FIRST_PARTS];
+        private long[] lengths = new long[FIRST_PARTS];
+        private long[] signs = new long[FIRST_PARTS];
+        private long[] powers = new long[FIRST_PARTS];
+        private byte[] marks = new byte[FIRST_PARTS];
+        private int partCount = 0;
+        private int signedCount = 0;
 
         void clear() {
             targetCount = 0;
             rowCount = 0;
-            cellCount = 0;
+            partCount = 0;
+            signedCount = 0;
         }
 
-        /** A delegate with one target of its own. */
-        long single(long receiver, int way) {
-            if (targetCount >= MOST_THINGS) {
+        // ---- delegates
+
+        /** A delegate with one target of its own; it is idle if its call takes no step and throws nothing. */
+        long single(long receiver, int way, boolean isIdle) {
+            if (targetCount >= MOST_THINGS || !reserve()) {
                 return NULL;
             }
             receivers[targetCount] = receiver;
             ways[targetCount] = way;
             targetCount++;
-            int start = cellCount;
-            if (reserve(1)) {
-                cells[cellCount] = targetCount - 1;
-                cellCount++;
-            }
-            return row(start, cellCount - start);
+            return row(add(NONE, targetCount - 1, 1, isIdle ? IDLE : 0));
         }
 
-        /** A new delegate with the targets of both; a longer row than can ever be called is cut. */
-        long join(long one, long other) {
-            int front = lengthOf(one);
-            int back = Math.min(lengthOf(other), LONGEST_ROW - front);
-            int start = startOf(one);
-            if (start + front != cellCount) {
-                start = cellCount;
-                front = copy(startOf(one), front);
-            }
-            back = copy(startOf(other), back);
-            return row(start, front + back);
+        /** A new delegate with the targets of both. */
+        long joined(long one, long other) {
+            return row(join(rootOf(one), rootOf(other)));
         }
 
-        /** The one without the last part of its row that is like the row of the other. */
-        long without(long one, long other) {
-            int length = lengthOf(one);
-            int less = lengthOf(other);
-            int at = less == 0 ? NONE : lastLike(one, other);
-            if (at == NONE) {
-                return one;
-            }
-            int start = startOf(one);
-            if (at + less == length) {
-                return row(start, at);
-            }
-            int made = cellCount;
-            int front = copy(start, at);
-            int back = copy(start + at + less, length - at - less);
-            return row(made, front + back);
-        }
-
-        private int lastLike(long one, long other) {
-            int length = lengthOf(one);
-            int less = lengthOf(other);
-            for (int at = length - less; at >= 0; at--) {
-                int same = 0;
-                while (same < less && isLike(targetAt(one, at + same), targetAt(other, same))) {
-                    same++;
-                }
-                if (same == less) {
-                    return at;
-                }
-            }
-            return NONE;
-        }
-
-        private boolean isLike(int target, int other) {
-            return receivers[target] == receivers[other] && ways[target] == ways[other];
-        }
-
-        private long row(int start, int length) {
-            if (length <= 0 || rowCount >= MOST_THINGS) {
+        /** A new delegate with the targets of a part, null for NONE. */
+        long row(int root) {
+            if (root == NONE || rowCount >= MOST_THINGS) {
                 return NULL;
             }
-            starts[rowCount] = start;
-            lengths[rowCount] = length;
+            roots[rowCount] = root;
             rowCount++;
             return valueOf(DELEGATE, rowCount - 1);
         }
 
-        /** Puts the cells from a place on behind all others, and tells how many. */
-        private int copy(int from, int count) {
-            if (count <= 0 || !reserve(count)) {
-                return 0;
-            }
-            System.arraycopy(cells, from, cells, cellCount, count);
-            cellCount += count;
-            return count;
+        /** The part with all targets of a delegate, NONE for null. */
+        int rootOf(long delegate) {
+            return kindOf(delegate) == DELEGATE ? roots[restOf(delegate)] : NONE;
         }
 
-        private boolean reserve(int count) {
-            int wanted = cellCount + count;
-            if (wanted > MOST_CELLS) {
-                return false;
-            }
-            if (wanted > cells.length) {
-                cells = Arrays.copyOf(cells, Math.min(MOST_CELLS, Math.max(wanted, cells.length * 2)));
-            }
-            return true;
-        }
-
-        private int startOf(long delegate) {
-            return kindOf(delegate) == DELEGATE ? starts[restOf(delegate)] : 0;
-        }
-
-        int lengthOf(long delegate) {
-            return kindOf(delegate) == DELEGATE ? lengths[restOf(delegate)] : 0;
-        }
-
-        int targetAt(long delegate, int index) {
-            return cells[startOf(delegate) + index];
-        }
+        // ---- targets
 
         long receiverOf(int target) {
             return receivers[target];
         }
 
+        /** Changes a receiver, and so what its target is like. */
         void setReceiver(int target, long value) {
             receivers[target] = value;
+            signedCount = 0;
         }
 
         int wayOf(int target) {
             return ways[target];
         }
-    }
 
-    /** The pieces of code that a run made. */
-    private static final class Pieces {
-        // An argument is none, any reference (OWN), or one of the types.
-        private static final int ARGUMENTS = MOST_TYPES + 2;
+        // ---- parts
 
-        // A new piece takes a new step that calls, makes an iterator, or makes a target.
-        private final int[] made = new int[MOST_THINGS];
-        int count = 0;
-
-        void clear() {
-            count = 0;
+        long lengthOf(int part) {
+            return lengths[part];
         }
 
-        void note(int method, int name, int argument) {
-            int piece = (method * NAMES + name) * ARGUMENTS + argument - OWN;
-            for (int i = 0; i < count; i++) {
-                if (made[i] == piece) {
+        /** The first of the two parts of a part, NONE if it is one target. */
+        int leftOf(int part) {
+            return lefts[part];
+        }
+
+        int rightOf(int part) {
+            return rights[part];
+        }
+
+        /** The target that a part is, NONE if it is two parts. */
+        int targetOf(int part) {
+            return lefts[part] == NONE ? rights[part] : NONE;
+        }
+
+        boolean isIdle(int part) {
+            return (marks[part] & IDLE) != 0;
+        }
+
+        /** The longest idle part, or else the one target, that begins in a part at a place. */
+        int partAt(int whole, long place) {
+            int part = whole;
+            long ahead = place;
+            while (lefts[part] >= 0 && (ahead > 0 || !isIdle(part))) {
+                int left = lefts[part];
+                boolean isLeft = ahead < lengths[left];
+                ahead -= isLeft ? 0 : lengths[left];
+                part = isLeft ? left : rights[part];
+            }
+            return part;
+        }
+
+        /** Asks for the pieces of a part; false if they were noted before. */
+        boolean ask(int part) {
+            if ((marks[part] & NOTED) != 0) {
+                return false;
+            }
+            marks[part] |= ASKED;
+            return true;
+        }
+
+        /** If a part was asked for: its target, which is noted so; its own parts are asked for in its place. */
+        int answer(int part) {
+            if ((marks[part] & ASKED) == 0) {
+                return NONE;
+            }
+            marks[part] = (byte) (marks[part] & ~ASKED | NOTED);
+            if (lefts[part] >= 0) {
+                ask(lefts[part]);
+                ask(rights[part]);
+            }
+            return targetOf(part);
+        }
+
+        private boolean reserve() {
+            if (partCount < lefts.length) {
+                return true;
+            }
+            if (partCount >= MOST_PARTS) {
+                return false;
+            }
+            int wanted = partCount * 2;
+            lefts = Arrays.copyOf(lefts, wanted);
+            rights = Arrays.copyOf(rights, wanted);
+            lengths = Arrays.copyOf(lengths, wanted);
+            signs = Arrays.copyOf(signs, wanted);
+            powers = Arrays.copyOf(powers, wanted);
+            marks = Arrays.copyOf(marks, wanted);
+            return true;
+        }
+
+        /** A part of two others, or the other one if one is NONE. */
+        int join(int left, int right) {
+            if (left == NONE || right == NONE || !reserve()) {
+                return left == NONE ? right : left;
+            }
+            long length = Math.min(LONGEST, lengths[left] + lengths[right]);
+            return add(left, right, length, marks[left] & marks[right] & IDLE);
+        }
+
+        private int add(int left, int right, long length, int mark) {
+            int part = partCount;
+            partCount++;
+            lefts[part] = left;
+            rights[part] = right;
+            lengths[part] = length;
+            marks[part] = (byte) mark;
+            return part;
+        }
+
+        // ---- signs: what rows that are alike have in common
+
+        void signAll() {
+            while (signedCount < partCount) {
+                int left = lefts[signedCount];
+                int right = rights[signedCount];
+                if (left == NONE) {
+                    signs[signedCount] = receivers[right] * WAYS + ways[right] + 1;
+                    powers[signedCount] = BASE;
+                } else {
+                    signs[signedCount] = reckon(signs[left], powers[right], signs[right]);
+                    powers[signedCount] = reckon(powers[left], powers[right], 0);
+                }
+                signedCount++;
+            }
+        }
+
+        boolean isLike(int part, int other) {
+            return lengths[part] == lengths[other] && signs[part] == signs[other] && powers[part] == powers[other];
+        }
+
+        /** The sign of the first targets of a part. */
+        long signOfFirst(int whole, long count) {
+            int part = whole;
+            long missing = count;
+            long sign = 0;
+            while (missing > 0 && missing < lengths[part] && lefts[part] >= 0) {
+                int left = lefts[part];
+                if (missing < lengths[left]) {
+                    part = left;
+                } else {
+                    sign = reckon(sign, powers[left], signs[left]);
+                    missing -= lengths[left];
+                    part = rights[part];
+                }
+            }
+            return missing > 0 ? reckon(sign, powers[part], signs[part]) : sign;
+        }
+
+        /** A product and a sum of signs. */
+        static long reckon(long one, long factor, long added) {
+            long high = one >>> 31;
+            long low = one & LOW_31;
+            long factorHigh = factor >>> 31;
+            long factorLow = factor & LOW_31;
+            long middle = low * factorHigh + high * factorLow;
+            long sum = high * factorHigh * 2 + (middle >>> 30) + ((middle & LOW_30) << 31) + low * factorLow;
+            sum = (sum >>> 61) + (sum & PRIME) + added;
+            sum = (sum >>> 61) + (sum & PRIME);
+            return sum >= PRIME ? sum - PRIME : sum;
+        }
+    }
+
+    /**
+     * Looks for the last place of a pattern in a row, and takes it out, however long both are: for each part, it is
+     * told where the pattern lies last in it, and with which first targets of the pattern, but not all, the part ends.
+     * How many these are is kept as ladders, with the same step between the numbers: a row that ends with two of the
+     * beginnings of the pattern repeats itself at the step between them, as far as the longer one reaches.
+     */
+    private static final class Search {
+        private static final int BITS = 61;
+        private static final int FIRST_SIZE = 256;
+        private static final int MOST_LADDERS = 1 << 20;
+
+        // Where the pattern lies in a part: all of it, or across its two parts, with so many targets in the left one.
+        private static final long WHOLE = 0;
+        private static final long NOWHERE = -1;
+        private static final long IN_LEFT = -2;
+        private static final long IN_RIGHT = -3;
+        private static final long WANTED = -4;
+        private static final long UNWANTED = -5;
+
+        private final Rows rows;
+        private final long[] squares = new long[BITS];
+        private int pattern = NONE;
+        private long length = 0;
+        private long[] places = new long[FIRST_SIZE];
+        private int[] starts = new int[FIRST_SIZE];
+        private int[] counts = new int[FIRST_SIZE];
+        private long[] firsts = new long[FIRST_SIZE];
+        private long[] steps = new long[FIRST_SIZE];
+        private long[] rungs = new long[FIRST_SIZE];
+        private int ladderCount = 0;
+        private long lastStep = 0;
+        private long lastReach = 0;
+        // No part lies deeper than there were steps.
+        private final int[] path = new int[MOST_THINGS];
+
+        Search(Rows rows) {
+            this.rows = rows;
+            squares[0] = Rows.BASE;
+            for (int i = 1; i < BITS; i++) {
+                squares[i] = Rows.reckon(squares[i - 1], squares[i - 1], 0);
+            }
+        }
+
+        /** The one delegate without the last part of its row that is like the row of the other. */
+        long without(long one, long other) {
+            int row = rows.rootOf(one);
+            int less = rows.rootOf(other);
+            if (row == NONE || less == NONE || rows.lengthOf(less) > rows.lengthOf(row)) {
+                return one;
+            }
+            rows.signAll();
+            begin(row, less);
+            for (int i = 0; i <= row; i++) {
+                if (places[i] == WANTED) {
+                    climb(i, rows.leftOf(i), rows.rightOf(i));
+                    settle(i, rows.leftOf(i), rows.rightOf(i));
+                }
+            }
+            return places[row] == NOWHERE ? one : rows.row(cut(row));
+        }
+
+        /** Begins to look for a pattern in a row: all parts of this are wanted. */
+        private void begin(int row, int sought) {
+            pattern = sought;
+            length = rows.lengthOf(sought);
+            ladderCount = 0;
+            lastStep = 0;
+            if (places.length <= row) {
+                places = new long[row * 2];
+                starts = new int[row * 2];
+                counts = new int[row * 2];
+            }
+            Arrays.fill(places, 0, row + 1, UNWANTED);
+            places[row] = WANTED;
+            for (int i = row; i >= 0; i--) {
+                if (places[i] == WANTED && rows.leftOf(i) >= 0) {
+                    places[rows.leftOf(i)] = WANTED;
+                    places[rows.rightOf(i)] = WANTED;
+                }
+            }
+        }
+
+        // ---- where the pattern lies
+
+        /** Tells where the pattern lies last in a part, when this and the ladders are known of its two parts. */
+        private void settle(int part, int left, int right) {
+            places[part] = NOWHERE;
+            if (rows.isLike(part, pattern)) {
+                places[part] = WHOLE;
+            } else if (left >= 0 && places[right] != NOWHERE) {
+                places[part] = IN_RIGHT;
+            } else if (left >= 0) {
+                long across = 0;
+                for (int i = starts[left]; i < starts[left] + counts[left] && across == 0; i++) {
+                    across = across(i, right);
+                }
+                places[part] = across > 0 ? across : places[left] == NOWHERE ? NOWHERE : IN_LEFT;
+            }
+        }
+
+        /** The least rung of a ladder behind which the right part begins with the rest of the pattern, or 0. */
+        private long across(int ladder, int right) {
+            long first = firsts[ladder];
+            long step = steps[ladder];
+            long only = first;
+            if (rungs[ladder] > 1) {
+                long top = first + step * (rungs[ladder] - 1);
+                long repeated = repeats(right, top, step, Math.min(rows.lengthOf(right), length));
+                if (reach(step) == length) {
+                    long least = Math.max(0, length - repeated - first);
+                    long found = first + (least + step - 1) / step * step;
+                    return found <= top ? found : 0;
+                }
+                only = reach(step) - repeated;
+            }
+            long rest = length - only;
+            return isOn(ladder, only) && rest <= rows.lengthOf(right) && goesOn(only, right, rest) ? only : 0;
+        }
+
+        // ---- what is left of a row when what was found in it is taken out
+
+        private int cut(int row) {
+            int depth = 0;
+            int at = row;
+            while (places[at] == IN_LEFT || places[at] == IN_RIGHT) {
+                at = places[at] == IN_LEFT ? rows.leftOf(at) : rows.rightOf(at);
+            }
+            int rest = NONE;
+            if (places[at] > 0) {
+                int front = shorten(rows.leftOf(at), places[at], true);
+                rest = rows.join(front, shorten(rows.rightOf(at), length - places[at], false));
+            }
+            for (int part = row; part != at && depth < path.length; depth++) {
+                path[depth] = part;
+                part = places[part] == IN_LEFT ? rows.leftOf(part) : rows.rightOf(part);
+            }
+            for (int i = depth - 1; i >= 0; i--) {
+                int part = path[i];
+                boolean isLeft = places[part] == IN_LEFT;
+                rest = isLeft ? rows.join(rest, rows.rightOf(part)) : rows.join(rows.leftOf(part), rest);
+            }
+            return rest;
+        }
+
+        /** A part without so many of its targets, the last or the first ones. */
+        private int shorten(int whole, long count, boolean isEnd) {
+            int depth = 0;
+            int part = whole;
+            long less = count;
+            while (less > 0 && less < rows.lengthOf(part) && depth < path.length) {
+                int shortened = isEnd ? rows.rightOf(part) : rows.leftOf(part);
+                int kept = isEnd ? rows.leftOf(part) : rows.rightOf(part);
+                if (less < rows.lengthOf(shortened)) {
+                    path[depth] = kept;
+                    depth++;
+                    part = shortened;
+                } else {
+                    less -= rows.lengthOf(shortened);
+                    part = kept;
+                }
+            }
+            int rest = less > 0 ? NONE : part;
+            for (int i = depth - 1; i >= 0; i--) {
+                rest = isEnd ? rows.join(path[i], rest) : rows.join(rest, path[i]);
+            }
+            return rest;
+        }
+
+        // ---- ladders
+
+        /** Makes the ladders of a part from those of its two parts. */
+        private void climb(int part, int left, int right) {
+            starts[part] = ladderCount;
+            counts[part] = 0;
+            if (length == 1 || length >= Rows.LONGEST) {
+                return;
+            }
+            if (left == NONE) {
+                if (goesOn(0, part, 1)) {
+                    add(part, 1, 1, 1);
+                }
+                return;
+            }
+            if (rows.lengthOf(right) >= length) {
+                starts[part] = starts[right];
+                counts[part] = counts[right];
+                return;
+            }
+            for (int i = starts[right]; i < starts[right] + counts[right]; i++) {
+                add(part, firsts[i], steps[i], rungs[i]);
+            }
+            for (int i = starts[left]; i < starts[left] + counts[left]; i++) {
+                climbOn(part, i, right);
+            }
+        }
+
+        /** Adds those rungs of a ladder of the left part with which the pattern goes on as the right part does. */
+        private void climbOn(int part, int ladder, int right) {
+            long more = rows.lengthOf(right);
+            long first = firsts[ladder];
+            long step = steps[ladder];
+            long only = first;
+            if (rungs[ladder] > 1) {
+                long top = first + step * (rungs[ladder] - 1);
+                long repeated = repeats(right, top, step, more);
+                if (repeated >= more) {
+                    long most = Math.min(reach(step), length - 1) - more;
+                    if (most >= first) {
+                        add(part, first + more, step, Math.min(rungs[ladder], (most - first) / step + 1));
+                    }
+                    return;
+                }
+                only = reach(step) - repeated;
+            }
+            if (isOn(ladder, only) && only + more < length && goesOn(only, right, more)) {
+                add(part, only + more, 1, 1);
+            }
+        }
+
+        private boolean isOn(int ladder, long number) {
+            long above = number - firsts[ladder];
+            return above >= 0 && above % steps[ladder] == 0 && above / steps[ladder] < rungs[ladder];
+        }
+
+        private void add(int part, long first, long step, long count) {
+            int last = ladderCount - 1;
+            if (counts[part] > 0) {
+                long gap = first - firsts[last] - steps[last] * (rungs[last] - 1);
+                if ((rungs[last] == 1 || steps[last] == gap) && (count == 1 || step == gap)) {
+                    steps[last] = gap;
+                    rungs[last] += count;
                     return;
                 }
             }
-            if (count < MOST_THINGS) {
-                made[count] = piece;
-                count++;
+            if (ladderCount >= MOST_LADDERS) {
+                return;
             }
+            if (ladderCount >= firsts.length) {
+                firsts = Arrays.copyOf(firsts, ladderCount * 2);
+                steps = Arrays.copyOf(steps, ladderCount * 2);
+                rungs = Arrays.copyOf(rungs, ladderCount * 2);
+            }
+            firsts[ladderCount] = first;
+            steps[ladderCount] = step;
+            rungs[ladderCount] = count;
+            ladderCount++;
+            counts[part]++;
+        }
+
+        // ---- what goes on alike
+
+        /** How far the pattern repeats itself at a step from its first target on. */
+        private long reach(long step) {
+            if (lastStep != step) {
+                lastStep = step;
+                lastReach = step + common(pattern, 0, pattern, step, length - step);
+            }
+            return lastReach;
+        }
+
+        /** How far a part goes on as the first targets of the pattern do that repeat themselves at a step. */
+        private long repeats(int part, long top, long step, long most) {
+            long once = Math.min(step, most);
+            long alike = common(pattern, top - step, part, 0, once);
+            return alike < once || most <= step ? alike : step + common(part, 0, part, step, most - step);
+        }
+
+        /** How many targets, at most so many, are alike in two parts from a place on in each. */
+        private long common(int one, long place, int other, long otherPlace, long most) {
+            long ahead = Rows.PRIME - rows.signOfFirst(one, place);
+            long otherAhead = Rows.PRIME - rows.signOfFirst(other, otherPlace);
+            long alike = 0;
+            long power = 1;
+            for (int i = BITS - 1; i >= 0; i--) {
+                long more = alike + (1L << i);
+                if (more <= most) {
+                    long longer = Rows.reckon(power, squares[i], 0);
+                    long sign = Rows.reckon(ahead, longer, rows.signOfFirst(one, place + more));
+                    if (sign == Rows.reckon(otherAhead, longer, rows.signOfFirst(other, otherPlace + more))) {
+                        alike = more;
+                        power = longer;
+                    }
+                }
+            }
+            return alike;
+        }
+
+        /** Whether the pattern goes on from a place as a part begins. */
+        private boolean goesOn(long place, int part, long count) {
+            long power = 1;
+            for (int i = 0; i < BITS; i++) {
+                if ((count >> i & 1) != 0) {
+                    power = Rows.reckon(power, squares[i], 0);
+                }
+            }
+            long ahead = Rows.reckon(rows.signOfFirst(pattern, place), power, rows.signOfFirst(part, count));
+            return ahead == rows.signOfFirst(pattern, place + count);
         }
     }
 
@@ -1202,6 +1577,9 @@ public final class Reifytown {
 
     /** What a run tells when it has ended. */
     private static final class Outcome {
+        // The argument in a piece is none, any reference (OWN), or one of the types.
+        private static final int ARGUMENTS = MOST_TYPES + 2;
+
         // How the statics of a type stand.
         static final int UNUSED = 0;
         static final int USED = 1;
@@ -1213,6 +1591,8 @@ public final class Reifytown {
         final int[] output = new int[MOST_STEPS];
         int outputCount = 0;
         int stepCount = 0;
+        // A new piece takes a new step that calls, makes an iterator, or makes a target.
+        private final int[] pieces = new int[MOST_THINGS];
         int pieceCount = 0;
         int callCount = 0;
         int boxCount = 0;
@@ -1243,6 +1623,23 @@ public final class Reifytown {
             }
         }
 
+        void notePiece(int method, int name, int argument) {
+            int piece = (method * NAMES + name) * ARGUMENTS + argument - OWN;
+            for (int i = 0; i < pieceCount; i++) {
+                if (pieces[i] == piece) {
+                    return;
+                }
+            }
+            if (pieceCount < MOST_THINGS) {
+                pieces[pieceCount] = piece;
+                pieceCount++;
+            }
+        }
+
+        void addCalls(long count) {
+            callCount = (int) Math.min(Integer.MAX_VALUE, callCount + count);
+        }
+
         boolean tellsAs(Outcome other) {
             if (end != other.end || stepCount != other.stepCount || outputCount != other.outputCount) {
                 return false;
@@ -1269,7 +1666,7 @@ public final class Reifytown {
         private final Types types;
         private final Store store = new Store();
         private final Rows rows = new Rows();
-        private final Pieces pieces = new Pieces();
+        private final Search search = new Search(rows);
         private final Frame[] stack = new Frame[MOST_CALLS];
         private final Frame[] plainFrames = new Frame[MOST_CALLS];
         private int depth = 0;
@@ -1297,7 +1694,6 @@ public final class Reifytown {
             outcome.clear();
             store.clear();
             rows.clear();
-            pieces.clear();
             depth = 0;
             iteratorCount = 0;
             out = outcome;
@@ -1306,7 +1702,6 @@ public final class Reifytown {
             frame.locals[1] = ofNumber(argument);
             int way = enter(frame);
             out.boxCount = store.boxCount;
-            out.pieceCount = pieces.count;
             if (way == RETURNED) {
                 out.end = 'r';
                 out.value = result;
@@ -1401,6 +1796,8 @@ public final class Reifytown {
                     return goOn(frame, i);
                 case 'Q':
                     return endIterator(frame, i);
+                case 'D':
+                    return makeTarget(frame, i);
                 case 'P':
                 case 'M':
                     return makeRow(frame, i);
@@ -1477,7 +1874,7 @@ public final class Reifytown {
             Frame asked = open(filter, frame.argument, Frame.FILTER);
             bindTo(asked, frame, 0);
             asked.locals[1] = ofNumber(number);
-            out.callCount++;
+            out.addCalls(1);
             int way = enter(asked);
             if (way == RETURNED) {
                 return kindOf(result) == NUMBER && restOf(result) != 0 ? 1 : 0;
@@ -1648,8 +2045,6 @@ public final class Reifytown {
                     long value = get(frame, b);
                     boolean isValue = kindOf(value) == NUMBER || kindOf(value) == STRUCTURE;
                     return set(frame, a, isValue ? store.box(value) : value);
-                case 'D':
-                    return set(frame, a, rows.single(get(frame, b), body.cs[i]));
                 default:
                     return NEXT;
             }
@@ -1825,7 +2220,7 @@ public final class Reifytown {
                 return fail(FAULT_LIMIT);
             }
             out.staticStates[type] = Outcome.USED;
-            out.callCount++;
+            out.addCalls(1);
             int way = enter(open(plan.bodies[ready], types.arguments[type], Frame.READY));
             if (way == RETURNED) {
                 return NEXT;
@@ -1869,13 +2264,13 @@ public final class Reifytown {
             if (!isWritten && argument != NONE && !types.isValue(argument)) {
                 argument = OWN;
             }
-            pieces.note(foundMethod, name, argument);
+            out.notePiece(foundMethod, name, argument);
         }
 
         /** A call of the method that was found, which has not begun. */
         private Frame openFound(int name, long argument) {
             countPiece(name);
-            out.callCount++;
+            out.addCalls(1);
             Frame called = open(foundBody(), foundArgument, Frame.METHOD);
             called.locals[1] = argument;
             return called;
@@ -1901,6 +2296,14 @@ public final class Reifytown {
 
         // ---- delegates
 
+        private int makeTarget(Frame frame, int i) {
+            Body body = frame.body;
+            long receiver = get(frame, body.bs[i]);
+            int way = body.cs[i];
+            boolean isIdle = seek(receiver, way) == 0 && foundBody().isEmpty();
+            return set(frame, body.as[i], rows.single(receiver, way, isIdle));
+        }
+
         private int makeRow(Frame frame, int i) {
             Body body = frame.body;
             long one = get(frame, body.bs[i]);
@@ -1908,7 +2311,7 @@ public final class Reifytown {
             if (!isRow(one) || !isRow(other)) {
                 return fail(FAULT_WRONG);
             }
-            return set(frame, body.as[i], body.ops[i] == 'P' ? rows.join(one, other) : rows.without(one, other));
+            return set(frame, body.as[i], body.ops[i] == 'P' ? rows.joined(one, other) : search.without(one, other));
         }
 
         private static boolean isRow(long value) {
@@ -1924,14 +2327,37 @@ public final class Reifytown {
             if (kindOf(delegate) != DELEGATE) {
                 return fail(FAULT_WRONG);
             }
-            int length = rows.lengthOf(delegate);
-            for (int k = 0; k < length; k++) {
-                int way = callTarget(frame, rows.targetAt(delegate, k), body.cs[i]);
+            int row = rows.rootOf(delegate);
+            int part = row;
+            for (long at = 0; at < rows.lengthOf(row); at += rows.lengthOf(part)) {
+                part = rows.partAt(row, at);
+                int way = rows.isIdle(part) ? callIdle(part) : callTarget(frame, rows.targetOf(part), body.cs[i]);
                 if (way != RETURNED) {
                     return way;
                 }
             }
             return set(frame, body.as[i], result);
+        }
+
+        /** Calls all targets of a part whose calls take no step; no run could end that called them one by one. */
+        private int callIdle(int part) {
+            if (isFull()) {
+                return fail(FAULT_LIMIT);
+            }
+            if (rows.ask(part)) {
+                for (int i = part; i >= 0; i--) {
+                    notePieceOf(rows.answer(i));
+                }
+            }
+            out.addCalls(rows.lengthOf(part));
+            result = NULL;
+            return RETURNED;
+        }
+
+        private void notePieceOf(int target) {
+            if (target != NONE && seek(rows.receiverOf(target), rows.wayOf(target)) == 0) {
+                countPiece(rows.wayOf(target) % 10);
+            }
         }
 
         private int callTarget(Frame frame, int target, int local) {

@@ -1,0 +1,224 @@
+import java.util.ArrayList;
+import java.util.List;
+import java.util.Random;
+
+/** Promise 15, delegates: rows of any length, what 'M' takes out of them, and calls that take no step. */
+public final class RowsTest {
+    public static void main(String[] args) {
+        int from = args.length > 1 ? Integer.parseInt(args[0]) : 0;
+        int to = args.length > 1 ? Integer.parseInt(args[1]) : 1500;
+        longRowsAreKept();
+        manyRowsAreKept();
+        targetsInThousands();
+        beyondAllNumbers();
+        callsWithoutSteps();
+        callsWithoutStepsThrow();
+        changedReceivers();
+        for (int seed = from; seed < to; seed++) {
+            randomRows(seed);
+        }
+        Checks.close("RowsTest");
+    }
+
+    /** A town whose kind 0 has the names 0, 1, 2 that put out 1, 2, 3 in two steps each, and 3 and 4 without steps. */
+    private static Reifytown town() {
+        Reifytown town = new Reifytown();
+        town.addKind('c', false, '=', '-');
+        town.type(0, -1);
+        for (int name = 0; name < 3; name++) {
+            town.addMethod(0, name, 'v', Checks.body(town, "= 2 " + (name + 1), "p 2"));
+        }
+        town.addMethod(0, 3, 'v', Checks.body(town));
+        town.addMethod(0, 4, 'v', Checks.body(town));
+        return town;
+    }
+
+    private static int body(Reifytown town, String... steps) {
+        return Checks.body(town, steps);
+    }
+
+    /** The local becomes a delegate that is doubled so often; the locals 4 and 5 are used. */
+    private static List<String> doubled(int name, int local, int times, int at) {
+        List<String> steps = new ArrayList<>();
+        steps.add("D " + local + " 2 " + name);
+        steps.add("= 4 " + times);
+        steps.add("= 5 1");
+        steps.add("P " + local + " " + local + " " + local);
+        steps.add("- 4 4 5");
+        steps.add("z 4 " + (at + 7));
+        steps.add("j 0 " + (at + 3));
+        return steps;
+    }
+
+    private static int twoRows(Reifytown town, int first, int second, String... more) {
+        int body = body(town, "N 2 2");
+        List<String> steps = doubled(0, 1, first, 1);
+        steps.addAll(doubled(1, 3, second, 8));
+        Checks.write(town, body, steps.toArray(new String[0]));
+        Checks.write(town, body, more);
+        return body;
+    }
+
+    private static void longRowsAreKept() {
+        for (int times : new int[] {1, 11, 12, 13, 20, 31, 32, 40, 59, 60, 61, 90, 110}) {
+            Reifytown town = town();
+            int body = twoRows(town, times, 1, "P 4 1 3", "M 4 4 1", "I 5 4 1", "r 5");
+            Checks.runs("15 the row behind a long one, " + times, town, body, 0, "r0 2 2");
+            town = town();
+            body = twoRows(town, times, times, "P 4 3 1", "M 4 4 3", "M 4 4 1", "r 4");
+            Checks.runs("15 both rows taken out, " + times, town, body, 0, "r0");
+            town = town();
+            body = twoRows(town, times, times, "P 4 1 3", "P 4 4 1", "M 4 4 3", "M 4 4 1", "M 4 4 1", "r 4");
+            Checks.runs("15 from the middle, " + times, town, body, 0, "r0");
+            town = town();
+            body = twoRows(town, times, times, "P 4 3 1", "M 5 4 4", "? 5 5 1", "M 4 1 3", "? 4 4 1", "r 4");
+            Checks.runs("15 no such row, " + times, town, body, 0, "rn1");
+        }
+    }
+
+    private static void manyRowsAreKept() {
+        Reifytown town = town();
+        int body = twoRows(town, 12, 180, "P 1 1 1", "P 1 1 1", "P 4 1 3", "D 5 2 2", "r 5");
+        Checks.runs("15 a delegate after many long ones", town, body, 0, "rd");
+    }
+
+    private static void targetsInThousands() {
+        Reifytown town = town();
+        int body = twoRows(town, 12, 1, "P 1 1 3", "I 5 1 1", "r 5");
+        Checks.same("15 a long row has too many steps", town.run(body, 0), 'l');
+        int ahead = 1 + (3 + 4 * 12 - 1) + (3 + 4 - 1) + 2;
+        Checks.same("25 the calls of it until then, with the one that is cut", town.calls(), (1000 - ahead) / 2 + 1);
+    }
+
+    private static void beyondAllNumbers() {
+        Reifytown town = town();
+        int body = twoRows(town, 200, 1, "P 1 1 3", "M 1 1 3", "I 5 1 1", "r 5");
+        Checks.same("15 a row beyond all numbers", town.run(body, 0), 'l');
+        town = town();
+        body = twoRows(town, 100, 100, "P 3 3 1", "P 3 3 3", "M 5 3 1", "M 5 5 1", "r 5");
+        Checks.runs("15 taken out beyond all numbers", town, body, 0, "rd");
+    }
+
+    private static void callsWithoutSteps() {
+        for (int times : new int[] {0, 1, 12, 20, 30}) {
+            Reifytown town = town();
+            int body = body(town, "N 2 2");
+            Checks.write(town, body, doubled(3, 1, times + 1, 1).toArray(new String[0]));
+            Checks.write(town, body, "D 3 2 1", "P 3 1 3", "I 4 3 1", "I 4 3 1", "I 0 1 1", "r 0");
+            long calls = 3L * (2L << times) + 2;
+            Checks.runs("15 calls without steps, " + times, town, body, 0, "r0 2 2");
+            Checks.same("25 are counted, " + times, town.calls(), (int) Math.min(Integer.MAX_VALUE, calls));
+            Checks.same("24 are one piece, " + times, town.pieces(), 2);
+            Checks.same("23 and are no step, " + times, town.steps(), 4 + 4 * (times + 1) - 1 + 3 + 3 + 4 - 1 + 1);
+        }
+        Reifytown town = town();
+        int body = body(town, "N 2 2", "D 1 2 3", "D 3 2 4", "P 3 1 3", "P 3 3 3", "= 5 7", "I 5 3 1", "r 5");
+        Checks.runs("15 what a call without steps returns", town, body, 0, "r0");
+        Checks.same("24 two pieces", town.pieces(), 2);
+        Checks.same("25 four calls", town.calls(), 4);
+    }
+
+    private static void callsWithoutStepsThrow() {
+        Reifytown town = town();
+        int body = body(town, "N 2 2", "D 1 2 3", "P 1 1 1", "D 3 2 5", "P 3 1 3", "P 3 3 1", "I 5 3 1", "r 5");
+        Checks.runs("15 no method behind calls without steps", town, body, 0, "u4");
+        Checks.same("25 the calls until then", town.calls(), 2);
+        town = town();
+        body = body(town, "N 2 2", "D 1 2 3", "P 1 1 1", "D 3 4 3", "P 3 3 1", "I 5 3 1", "r 5");
+        Checks.runs("15 a receiver that is null ahead of calls without steps", town, body, 0, "u1");
+        Checks.same("25 no calls", town.calls(), 0);
+        town = town();
+        town.addMethod(0, 5, 'v', body(town, "z 1 5", "= 2 1", "- 1 1 2", "C 3 0 5 1", "r 3", ". 3 0 0", "I 3 3 1", "r 3"));
+        body = body(town, "N 2 2", "D 3 2 3", "P 3 3 3", "! 3 2 0", "C 3 2 5 1", "r 3");
+        Checks.runs("15 calls without steps as the twelfth call", town, body, 9, "r0");
+        Checks.same("25 calls with the eleven", town.calls(), 12);
+        Checks.runs("15 calls without steps beyond 12", town, body, 10, "u6");
+        Checks.same("25 no calls beyond", town.calls(), 11);
+        Checks.same("23 the end of a body without steps is one if it is watched", watchedEnd(), "r0 2 2");
+    }
+
+    /** The end of a body without steps is a step if something is told at last there. */
+    private static String watchedEnd() {
+        Reifytown town = town();
+        int empty = town.addBody();
+        town.addRegion(empty, 0, 0, 'f', 0, 3);
+        town.addMethod(0, 5, 'v', empty);
+        int body = body(town, "N 2 2", "D 1 2 5", "P 1 1 1", "D 3 2 3", "P 1 1 3", "I 5 1 1", "r 5");
+        town.run(body, 0);
+        return Checks.tells(town) + " " + (town.steps() - 7) + " " + town.finals();
+    }
+
+    /** A structure that a target has as its receiver is changed by calls, and so is what the target is like. */
+    private static void changedReceivers() {
+        Reifytown town = new Reifytown();
+        town.addKind('s', false, '=', '-');
+        town.type(0, -1);
+        town.addMethod(0, 0, 'v', body(town, ". 2 0 0", "= 3 1", "+ 2 2 3", "! 2 0 0", "p 2"));
+        int body = body(town, "N 2 2", "D 1 2 0", "D 3 2 0", "P 4 1 3", "M 5 4 1", "I 0 5 0", "M 5 4 3", "I 0 5 0",
+            "I 0 3 0", "I 0 3 0", "M 5 4 3", "I 0 5 0", "M 5 4 1", "M 5 5 3", "r 5");
+        Checks.runs("15 receivers that are changed", town, body, 0, "r0 1 2 1 2 3");
+    }
+
+    // ---- random rows, held against plain lists
+
+    /** Delegates of up to three names are joined and taken out of one another, and one of them is called. */
+    private static void randomRows(int seed) {
+        Random random = new Random(seed);
+        int letters = 1 + random.nextInt(3);
+        Reifytown town = town();
+        int body = town.addBody();
+        Checks.write(town, body, "N 2 2");
+        List<List<Integer>> locals = new ArrayList<>();
+        for (int i = 0; i < 6; i++) {
+            locals.add(new ArrayList<>());
+        }
+        int[] own = {1, 3, 4, 5};
+        for (int i = 0; i < letters; i++) {
+            Checks.write(town, body, "D " + own[i] + " 2 " + i);
+            locals.get(own[i]).add(i);
+        }
+        int steps = letters + 1;
+        for (; steps < 22; steps++) {
+            int a = own[random.nextInt(4)];
+            int b = own[random.nextInt(4)];
+            int c = own[random.nextInt(4)];
+            List<Integer> one = locals.get(b);
+            List<Integer> other = locals.get(c);
+            boolean isLess = random.nextInt(5) < 2 || one.size() + other.size() > 6000;
+            Checks.write(town, body, (isLess ? "M " : "P ") + a + " " + b + " " + c);
+            List<Integer> made = new ArrayList<>(one);
+            if (isLess) {
+                takeOut(made, other);
+            } else {
+                made.addAll(other);
+            }
+            locals.set(a, made);
+        }
+        int asked = own[random.nextInt(4)];
+        Checks.write(town, body, "I 0 " + asked + " 2", "r 0");
+        town.run(body, 0);
+        Checks.same("15 random rows " + seed, Checks.tells(town), due(locals.get(asked), steps));
+    }
+
+    private static void takeOut(List<Integer> row, List<Integer> less) {
+        if (less.isEmpty()) {
+            return;
+        }
+        int at = java.util.Collections.lastIndexOfSubList(row, less);
+        if (at >= 0) {
+            row.subList(at, at + less.size()).clear();
+        }
+    }
+
+    private static String due(List<Integer> row, int steps) {
+        if (row.isEmpty()) {
+            return "u1";
+        }
+        int left = 1000 - steps - 1;
+        StringBuilder text = new StringBuilder(2 * row.size() + 1 <= left ? "r0" : "l");
+        for (int i = 0; i < row.size() && 2 * i + 2 <= left; i++) {
+            text.append(' ').append(row.get(i) + 1);
+        }
+        return text.toString();
+    }
+}
