@@ -1479,7 +1479,11 @@ public final class Reifytown {
             long otherAhead = Rows.PRIME - rows.signOfFirst(other, otherPlace);
             long alike = 0;
             long power = 1;
-            for (int i = BITS - 1; i >= 0; i--) {
+            int top = 0;
+            while (top < BITS - 1 && most >> top > 1) {
+                top++;
+            }
+            for (int i = top; i >= 0; i--) {
                 long more = alike + (1L << i);
                 if (more <= most) {
                     long longer = Rows.reckon(power, squares[i], 0);
@@ -1496,7 +1500,7 @@ public final class Reifytown {
         /** Whether the pattern goes on from a place as a part begins. */
         private boolean goesOn(long place, int part, long count) {
             long power = 1;
-            for (int i = 0; i < BITS; i++) {
+            for (int i = 0; i < BITS && count >> i != 0; i++) {
                 if ((count >> i & 1) != 0) {
                     power = Rows.reckon(power, squares[i], 0);
                 }
