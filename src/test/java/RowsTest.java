@@ -14,8 +14,11 @@ public final class RowsTest {
         callsWithoutSteps();
         callsWithoutStepsThrow();
         changedReceivers();
+        rowsOfEachLength();
         for (int seed = from; seed < to; seed++) {
             randomRows(seed);
+            randomRounds(seed);
+            randomWords(seed);
         }
         Checks.close("RowsTest");
     }
@@ -116,6 +119,10 @@ public final class RowsTest {
         Checks.runs("15 what a call without steps returns", town, body, 0, "r0");
         Checks.same("24 two pieces", town.pieces(), 2);
         Checks.same("25 four calls", town.calls(), 4);
+        town = town();
+        body = body(town, "N 2 2", "D 1 2 3", "D 3 2 4", "I 5 3 1", "r 5");
+        Checks.runs("15 one of two without steps is called", town, body, 0, "r0");
+        Checks.same("24 one piece", town.pieces(), 1);
     }
 
     private static void callsWithoutStepsThrow() {
@@ -159,6 +166,18 @@ public final class RowsTest {
         Checks.runs("15 receivers that are changed", town, body, 0, "r0 1 2 1 2 3");
     }
 
+    /** Rows of so many parts that the room for them grows. */
+    private static void rowsOfEachLength() {
+        for (int times = 1; times < 75; times++) {
+            Reifytown town = town();
+            int body = body(town, "N 2 2", "D 1 2 3", "D 3 2 4", "= 4 " + times, "= 5 1", "P 1 1 3", "P 1 1 3", "P 1 1 3",
+                "P 0 1 3", "P 1 0 3", "- 4 4 5", "z 4 13", "j 0 5", "M 4 0 3", "M 4 4 0", "M 5 1 0", "M 0 1 3", "I 0 0 4",
+                "D 2 2 0", "P 5 5 2", "I 0 5 4", "r 0");
+            Checks.runs("15 a row of " + (5 * times + 1), town, body, 0, "r0 1");
+            Checks.same("25 the calls of a row of " + (5 * times + 1), town.calls(), 5 * times + 2);
+        }
+    }
+
     // ---- random rows, held against plain lists
 
     /** Delegates of up to three names are joined and taken out of one another, and one of them is called. */
@@ -186,18 +205,94 @@ public final class RowsTest {
             List<Integer> other = locals.get(c);
             boolean isLess = random.nextInt(5) < 2 || one.size() + other.size() > 6000;
             Checks.write(town, body, (isLess ? "M " : "P ") + a + " " + b + " " + c);
-            List<Integer> made = new ArrayList<>(one);
-            if (isLess) {
-                takeOut(made, other);
-            } else {
-                made.addAll(other);
-            }
-            locals.set(a, made);
+            rounds(locals, new int[][] {{isLess ? 0 : 1, a, b, c}}, 1);
         }
         int asked = own[random.nextInt(4)];
         Checks.write(town, body, "I 0 " + asked + " 2", "r 0");
         town.run(body, 0);
         Checks.same("15 random rows " + seed, Checks.tells(town), due(locals.get(asked), steps));
+    }
+
+    /** The same steps again and again make rows that repeat themselves, and nearly do so. */
+    private static void randomRounds(int seed) {
+        Random random = new Random(seed);
+        int[] own = {0, 3, 4, 5};
+        int letters = 1 + random.nextInt(3);
+        Reifytown town = town();
+        int body = body(town, "N 2 2");
+        List<List<Integer>> locals = new ArrayList<>();
+        for (int i = 0; i < 6; i++) {
+            locals.add(new ArrayList<>());
+        }
+        for (int i = 0; i < letters; i++) {
+            Checks.write(town, body, "D " + own[i] + " 2 " + i);
+            locals.get(own[i]).add(i);
+        }
+        int[][] changes = new int[2 + random.nextInt(10)][];
+        Checks.write(town, body, "= 2 1");
+        for (int i = 0; i < changes.length; i++) {
+            changes[i] = new int[] {random.nextInt(3), own[random.nextInt(4)], own[random.nextInt(4)], own[random.nextInt(4)]};
+            Checks.write(town, body, (changes[i][0] == 0 ? "M " : "P ") + changes[i][1] + " " + changes[i][2] + " " + changes[i][3]);
+        }
+        int rounds = rounds(locals, changes, 1 + random.nextInt(30));
+        int asked = own[random.nextInt(4)];
+        int first = letters + 2;
+        int behind = first + changes.length;
+        Checks.write(town, body, "- 1 1 2", "z 1 " + (behind + 3), "j 0 " + first, "N 2 2", "I 1 " + asked + " 2", "r 1");
+        town.run(body, rounds);
+        int steps = first + rounds * (changes.length + 3) - 1 + 1;
+        Checks.same("15 random rounds " + seed, Checks.tells(town), due(locals.get(asked), steps));
+    }
+
+    /** Rows that are made of a few words and much like one another. */
+    private static void randomWords(int seed) {
+        Random random = new Random(seed);
+        int[] words = {3, 4, 0, 2};
+        Reifytown town = town();
+        int body = body(town, "N 2 2", "D 3 2 0", "D 4 2 1", ": 2 0", ": 1 0");
+        List<List<Integer>> locals = new ArrayList<>();
+        for (int i = 0; i < 6; i++) {
+            locals.add(new ArrayList<>());
+        }
+        locals.get(3).add(0);
+        locals.get(4).add(1);
+        int[][] changes = new int[17][];
+        for (int i = 0; i < changes.length; i++) {
+            int made = new int[] {0, 2, 5, 5, 1, 1}[random.nextInt(6)];
+            int word = words[random.nextInt(4)];
+            int other = made == 0 || made == 2 ? words[random.nextInt(4)] : made;
+            boolean isFront = random.nextInt(2) == 0;
+            changes[i] = new int[] {1, made, isFront ? word : other, isFront ? other : word};
+        }
+        changes[16] = new int[] {0, 5, 5, 1};
+        for (int[] change : changes) {
+            Checks.write(town, body, (change[0] == 0 ? "M " : "P ") + change[1] + " " + change[2] + " " + change[3]);
+        }
+        rounds(locals, changes, 1);
+        Checks.write(town, body, "I 0 5 4", "r 0");
+        town.run(body, 0);
+        Checks.same("15 random words " + seed, Checks.tells(town), due(locals.get(5), 22));
+    }
+
+    /** Carries changes out on plain lists, at least once and until one is long, and tells how often. */
+    private static int rounds(List<List<Integer>> locals, int[][] changes, int most) {
+        int longest = 0;
+        for (int round = 0; round < most; round++) {
+            for (int[] change : changes) {
+                List<Integer> made = new ArrayList<>(locals.get(change[2]));
+                if (change[0] == 0) {
+                    takeOut(made, locals.get(change[3]));
+                } else {
+                    made.addAll(locals.get(change[3]));
+                }
+                locals.set(change[1], made);
+                longest = Math.max(longest, made.size());
+            }
+            if (longest > 1500) {
+                return round + 1;
+            }
+        }
+        return most;
     }
 
     private static void takeOut(List<Integer> row, List<Integer> less) {
