@@ -966,14 +966,195 @@ public final class Reifytown {
     }
 
     /**
+     * Numbers of targets, however large, since a row can be twice as long with each step: one less than LARGE
+     * is told as itself, any other one as LARGE and the place of its digits.
+     */
+    private static final class Counts {
+        private static final int DIGIT = 60;
+        static final long LARGE = 1L << DIGIT;
+
+        // Enough for what 1000 steps can double.
+        private static final int DIGITS = 17;
+        static final int BITS = DIGIT * DIGITS;
+        private static final int FIRST_LARGE = 4;
+        private static final int MOST_LARGE = 1 << 19;
+
+        private long[] digits = new long[FIRST_LARGE * DIGITS];
+        private int largeCount = 0;
+
+        /** How many large numbers are kept. */
+        int mark() {
+            return largeCount;
+        }
+
+        /** Gives up all large numbers that were made since there were so many. */
+        void release(int mark) {
+            largeCount = mark;
+        }
+
+        /** Gives up all these but one. */
+        long keep(long count, int mark) {
+            largeCount = mark;
+            if (count < LARGE) {
+                return count;
+            }
+            System.arraycopy(digits, (int) (count - LARGE) * DIGITS, digits, mark * DIGITS, DIGITS);
+            largeCount++;
+            return LARGE + mark;
+        }
+
+        long plus(long one, long other) {
+            if (one < LARGE && other < LARGE && one + other < LARGE) {
+                return one + other;
+            }
+            int made = reserve();
+            long sum = 0;
+            for (int i = 0; i < DIGITS; i++) {
+                sum += digit(one, i) + digit(other, i);
+                digits[made + i] = sum & LARGE - 1;
+                sum >>= DIGIT;
+            }
+            return told(made);
+        }
+
+        /** One less another, which is not larger. */
+        long minus(long one, long other) {
+            if (one < LARGE) {
+                return one - other;
+            }
+            int made = reserve();
+            long left = 0;
+            for (int i = 0; i < DIGITS; i++) {
+                left += digit(one, i) - digit(other, i);
+                digits[made + i] = left & LARGE - 1;
+                left >>= DIGIT;
+            }
+            return told(made);
+        }
+
+        /** What is left when one is divided by another, which is not 0. */
+        long rest(long one, long other) {
+            if (one < LARGE || isLess(one, other)) {
+                return one < LARGE && other < LARGE ? one % other : one;
+            }
+            int made = reserve();
+            Arrays.fill(digits, made, made + DIGITS, 0);
+            for (int i = BITS - 1; i >= 0; i--) {
+                long next = hasBit(one, i) ? 1 : 0;
+                for (int k = 0; k < DIGITS; k++) {
+                    next += digits[made + k] * 2;
+                    digits[made + k] = next & LARGE - 1;
+                    next >>= DIGIT;
+                }
+                lessen(made, other);
+            }
+            return told(made);
+        }
+
+        /** Takes a number away from another one, if it is not larger. */
+        private void lessen(int made, long other) {
+            int i = DIGITS - 1;
+            while (i > 0 && digits[made + i] == digit(other, i)) {
+                i--;
+            }
+            boolean isLarger = digits[made + i] < digit(other, i);
+            long left = 0;
+            for (int k = 0; k < DIGITS && !isLarger; k++) {
+                left += digits[made + k] - digit(other, k);
+                digits[made + k] = left & LARGE - 1;
+                left >>= DIGIT;
+            }
+        }
+
+        boolean isLess(long one, long other) {
+            if (one < LARGE || other < LARGE) {
+                return one < other;
+            }
+            int place = (int) (one - LARGE) * DIGITS;
+            int otherPlace = (int) (other - LARGE) * DIGITS;
+            int i = DIGITS - 1;
+            while (i > 0 && digits[place + i] == digits[otherPlace + i]) {
+                i--;
+            }
+            return digits[place + i] < digits[otherPlace + i];
+        }
+
+        boolean isEqual(long one, long other) {
+            int same = 0;
+            while (same < DIGITS && digit(one, same) == digit(other, same)) {
+                same++;
+            }
+            return same == DIGITS;
+        }
+
+        long least(long one, long other) {
+            return isLess(other, one) ? other : one;
+        }
+
+        /** 2 to some power. */
+        long power(int bit) {
+            if (bit < DIGIT) {
+                return 1L << bit;
+            }
+            int made = reserve();
+            Arrays.fill(digits, made, made + DIGITS, 0);
+            digits[made + bit / DIGIT] = 1L << bit % DIGIT;
+            return told(made);
+        }
+
+        boolean hasBit(long count, int bit) {
+            return (digit(count, bit / DIGIT) >> bit % DIGIT & 1) != 0;
+        }
+
+        int bitsOf(long count) {
+            int bits = count < LARGE ? DIGIT : BITS;
+            while (bits > 0 && !hasBit(count, bits - 1)) {
+                bits--;
+            }
+            return bits;
+        }
+
+        private long digit(long count, int index) {
+            if (count < LARGE) {
+                return index == 0 ? count : 0;
+            }
+            return digits[(int) (count - LARGE) * DIGITS + index];
+        }
+
+        /** The place of the digits of a new large number. */
+        private int reserve() {
+            int made = largeCount * DIGITS;
+            if (made >= digits.length && largeCount < MOST_LARGE) {
+                digits = Arrays.copyOf(digits, made * 2);
+            }
+            if (made >= digits.length) {
+                return made - DIGITS;
+            }
+            largeCount++;
+            return made;
+        }
+
+        private long told(int made) {
+            int i = DIGITS - 1;
+            while (i > 0 && digits[made + i] == 0) {
+                i--;
+            }
+            if (i > 0) {
+                return LARGE + made / DIGITS;
+            }
+            largeCount = made / DIGITS;
+            return digits[made];
+        }
+    }
+
+    /**
      * The delegates of a run. A row of targets is a tree of parts, since a row can be twice as long with
      * each step, and rows share their parts. A part is one target, or two parts with lower numbers.
      */
     private static final class Rows {
-        // A longer row counts as one of this length: no run could call so many.
-        static final long LONGEST = 1L << 60;
         private static final int FIRST_PARTS = 256;
-        // 'P' makes one part, 'M' fewer than 'P's were made, twice: less than this in 1000 steps.
+        // 'P' makes one part, which lies one deeper; 'M' makes at most two for each depth, and none lies deeper.
+        static final int DEEPEST_PART = MOST_STEPS;
         private static final int MOST_PARTS = 1 << 19;
         private static final int WAYS = 128;
 
@@ -988,6 +1169,7 @@ public final class Reifytown {
         private static final int NOTED = 2;
         private static final int ASKED = 4;
 
+        private final Counts counts = new Counts();
         private final long[] receivers = new long[MOST_THINGS];
         private final int[] ways = new int[MOST_THINGS];
         private int targetCount = 0;
@@ -1003,6 +1185,7 @@ public final class Reifytown {
         private int signedCount = 0;
 
         void clear() {
+            counts.release(0);
             targetCount = 0;
             rowCount = 0;
             partCount = 0;
@@ -1082,16 +1265,29 @@ public final class Reifytown {
             return (marks[part] & IDLE) != 0;
         }
 
+        boolean isBefore(long place, int part) {
+            return counts.isLess(place, lengths[part]);
+        }
+
+        long placeBehind(long place, int part) {
+            return counts.plus(place, lengths[part]);
+        }
+
         /** The longest idle part, or else the one target, that begins in a part at a place. */
         int partAt(int whole, long place) {
+            int mark = counts.mark();
             int part = whole;
             long ahead = place;
-            while (lefts[part] >= 0 && (ahead > 0 || !isIdle(part))) {
+            for (int i = 0; i < DEEPEST_PART && lefts[part] >= 0 && (ahead > 0 || !isIdle(part)); i++) {
                 int left = lefts[part];
-                boolean isLeft = ahead < lengths[left];
-                ahead -= isLeft ? 0 : lengths[left];
-                part = isLeft ? left : rights[part];
+                if (counts.isLess(ahead, lengths[left])) {
+                    part = left;
+                } else {
+                    ahead = counts.minus(ahead, lengths[left]);
+                    part = rights[part];
+                }
             }
+            counts.release(mark);
             return part;
         }
 
@@ -1139,7 +1335,7 @@ public final class Reifytown {
             if (left == NONE || right == NONE || !reserve()) {
                 return left == NONE ? right : left;
             }
-            long length = Math.min(LONGEST, lengths[left] + lengths[right]);
+            long length = counts.plus(lengths[left], lengths[right]);
             return add(left, right, length, marks[left] & marks[right] & IDLE);
         }
 
@@ -1171,24 +1367,26 @@ public final class Reifytown {
         }
 
         boolean isLike(int part, int other) {
-            return lengths[part] == lengths[other] && signs[part] == signs[other] && powers[part] == powers[other];
+            return signs[part] == signs[other] && counts.isEqual(lengths[part], lengths[other]);
         }
 
         /** The sign of the first targets of a part. */
         long signOfFirst(int whole, long count) {
+            int mark = counts.mark();
             int part = whole;
             long missing = count;
             long sign = 0;
-            while (missing > 0 && missing < lengths[part] && lefts[part] >= 0) {
+            for (int i = 0; i < DEEPEST_PART && missing > 0 && counts.isLess(missing, lengths[part]); i++) {
                 int left = lefts[part];
-                if (missing < lengths[left]) {
+                if (counts.isLess(missing, lengths[left])) {
                     part = left;
                 } else {
                     sign = reckon(sign, powers[left], signs[left]);
-                    missing -= lengths[left];
+                    missing = counts.minus(missing, lengths[left]);
                     part = rights[part];
                 }
             }
+            counts.release(mark);
             return missing > 0 ? reckon(sign, powers[part], signs[part]) : sign;
         }
 
@@ -1207,13 +1405,12 @@ public final class Reifytown {
     }
 
     /**
-     * Looks for the last place of a pattern in a row, and takes it out, however long both are: for each part, it is
-     * told where the pattern lies last in it, and with which first targets of the pattern, but not all, the part ends.
-     * How many these are is kept as ladders, with the same step between the numbers: a row that ends with two of the
-     * beginnings of the pattern repeats itself at the step between them, as far as the longer one reaches.
+     * Looks for the last place of a pattern in a row, and takes it out, however long both are. For each part, it
+     * is told where the pattern lies last in it, and with which first targets of the pattern, but not all, the part
+     * ends. How many these are is kept as ladders, with the same step between the numbers: a row that ends with two
+     * of the beginnings of the pattern repeats itself at the step between them, as far as the longer one reaches.
      */
     private static final class Search {
-        private static final int BITS = 61;
         private static final int FIRST_SIZE = 256;
         private static final int MOST_LADDERS = 1 << 20;
 
@@ -1226,25 +1423,29 @@ public final class Reifytown {
         private static final long UNWANTED = -5;
 
         private final Rows rows;
-        private final long[] squares = new long[BITS];
+        private final Counts counts;
+        private final long[] squares = new long[Counts.BITS];
         private int pattern = NONE;
         private long length = 0;
         private long[] places = new long[FIRST_SIZE];
         private int[] starts = new int[FIRST_SIZE];
-        private int[] counts = new int[FIRST_SIZE];
+        private int[] ends = new int[FIRST_SIZE];
+        // A ladder goes from its first number to its top; its step is 0 if they are the same.
         private long[] firsts = new long[FIRST_SIZE];
         private long[] steps = new long[FIRST_SIZE];
-        private long[] rungs = new long[FIRST_SIZE];
+        private long[] tops = new long[FIRST_SIZE];
         private int ladderCount = 0;
         private long lastStep = 0;
-        private long lastReach = 0;
-        // No part lies deeper than there were steps.
-        private final int[] path = new int[MOST_THINGS];
+        private long reach = 0;
+        private long repeated = 0;
+        private final int[] above = new int[Rows.DEEPEST_PART];
+        private final int[] kept = new int[Rows.DEEPEST_PART];
 
         Search(Rows rows) {
             this.rows = rows;
+            counts = rows.counts;
             squares[0] = Rows.BASE;
-            for (int i = 1; i < BITS; i++) {
+            for (int i = 1; i < squares.length; i++) {
                 squares[i] = Rows.reckon(squares[i - 1], squares[i - 1], 0);
             }
         }
@@ -1253,18 +1454,31 @@ public final class Reifytown {
         long without(long one, long other) {
             int row = rows.rootOf(one);
             int less = rows.rootOf(other);
-            if (row == NONE || less == NONE || rows.lengthOf(less) > rows.lengthOf(row)) {
+            if (row == NONE || less == NONE || counts.isLess(rows.lengthOf(row), rows.lengthOf(less))) {
                 return one;
             }
+            int mark = counts.mark();
             rows.signAll();
             begin(row, less);
             for (int i = 0; i <= row; i++) {
                 if (places[i] == WANTED) {
-                    climb(i, rows.leftOf(i), rows.rightOf(i));
-                    settle(i, rows.leftOf(i), rows.rightOf(i));
+                    int left = rows.leftOf(i);
+                    int right = rows.rightOf(i);
+                    climb(i, left, right);
+                    long across = 0;
+                    for (int k = left < 0 ? 0 : starts[left]; left >= 0 && k < ends[left]; k++) {
+                        measure(k, right);
+                        climbOn(i, k, right);
+                        across = across > 0 ? across : across(k, right);
+                    }
+                    settle(i, left, right, across);
                 }
             }
-            return places[row] == NOWHERE ? one : rows.row(cut(row));
+            if (places[row] == NOWHERE) {
+                counts.release(mark);
+                return one;
+            }
+            return rows.row(cut(row, mark));
         }
 
         /** Begins to look for a pattern in a row: all parts of this are wanted. */
@@ -1276,7 +1490,7 @@ public final class Reifytown {
             if (places.length <= row) {
                 places = new long[row * 2];
                 starts = new int[row * 2];
-                counts = new int[row * 2];
+                ends = new int[row * 2];
             }
             Arrays.fill(places, 0, row + 1, UNWANTED);
             places[row] = WANTED;
@@ -1290,60 +1504,53 @@ public final class Reifytown {
 
         // ---- where the pattern lies
 
-        /** Tells where the pattern lies last in a part, when this and the ladders are known of its two parts. */
-        private void settle(int part, int left, int right) {
+        /** Tells where the pattern lies last in a part, when this is known of its two parts. */
+        private void settle(int part, int left, int right, long across) {
             places[part] = NOWHERE;
             if (rows.isLike(part, pattern)) {
                 places[part] = WHOLE;
             } else if (left >= 0 && places[right] != NOWHERE) {
                 places[part] = IN_RIGHT;
             } else if (left >= 0) {
-                long across = 0;
-                for (int i = starts[left]; i < starts[left] + counts[left] && across == 0; i++) {
-                    across = across(i, right);
-                }
                 places[part] = across > 0 ? across : places[left] == NOWHERE ? NOWHERE : IN_LEFT;
             }
         }
 
-        /** The least rung of a ladder behind which the right part begins with the rest of the pattern, or 0. */
+        /** The least rung of a measured ladder behind which the right part begins with all else, or 0. */
         private long across(int ladder, int right) {
-            long first = firsts[ladder];
-            long step = steps[ladder];
-            long only = first;
-            if (rungs[ladder] > 1) {
-                long top = first + step * (rungs[ladder] - 1);
-                long repeated = repeats(right, top, step, Math.min(rows.lengthOf(right), length));
-                if (reach(step) == length) {
-                    long least = Math.max(0, length - repeated - first);
-                    long found = first + (least + step - 1) / step * step;
-                    return found <= top ? found : 0;
-                }
-                only = reach(step) - repeated;
+            long only = firsts[ladder];
+            if (steps[ladder] > 0 && !counts.isLess(reach, length)) {
+                return rungFrom(ladder, counts.minus(length, repeated));
             }
-            long rest = length - only;
-            return isOn(ladder, only) && rest <= rows.lengthOf(right) && goesOn(only, right, rest) ? only : 0;
+            if (steps[ladder] > 0) {
+                only = counts.isLess(reach, repeated) ? 0 : counts.minus(reach, repeated);
+            }
+            if (!isOn(ladder, only)) {
+                return 0;
+            }
+            long behind = counts.minus(length, only);
+            boolean isLong = !counts.isLess(rows.lengthOf(right), behind);
+            return isLong && areAlike(pattern, only, right, 0, behind) ? only : 0;
         }
 
         // ---- what is left of a row when what was found in it is taken out
 
-        private int cut(int row) {
+        private int cut(int row, int mark) {
             int depth = 0;
             int at = row;
-            while (places[at] == IN_LEFT || places[at] == IN_RIGHT) {
+            while (depth < above.length && (places[at] == IN_LEFT || places[at] == IN_RIGHT)) {
+                above[depth] = at;
+                depth++;
                 at = places[at] == IN_LEFT ? rows.leftOf(at) : rows.rightOf(at);
             }
+            long across = counts.keep(Math.max(0, places[at]), mark);
             int rest = NONE;
-            if (places[at] > 0) {
-                int front = shorten(rows.leftOf(at), places[at], true);
-                rest = rows.join(front, shorten(rows.rightOf(at), length - places[at], false));
-            }
-            for (int part = row; part != at && depth < path.length; depth++) {
-                path[depth] = part;
-                part = places[part] == IN_LEFT ? rows.leftOf(part) : rows.rightOf(part);
+            if (across > 0) {
+                int front = shorten(rows.leftOf(at), across, true);
+                rest = rows.join(front, shorten(rows.rightOf(at), counts.minus(length, across), false));
             }
             for (int i = depth - 1; i >= 0; i--) {
-                int part = path[i];
+                int part = above[i];
                 boolean isLeft = places[part] == IN_LEFT;
                 rest = isLeft ? rows.join(rest, rows.rightOf(part)) : rows.join(rows.leftOf(part), rest);
             }
@@ -1355,88 +1562,108 @@ public final class Reifytown {
             int depth = 0;
             int part = whole;
             long less = count;
-            while (less > 0 && less < rows.lengthOf(part) && depth < path.length) {
+            for (int i = 0; i < kept.length && less > 0 && counts.isLess(less, rows.lengthOf(part)); i++) {
                 int shortened = isEnd ? rows.rightOf(part) : rows.leftOf(part);
-                int kept = isEnd ? rows.leftOf(part) : rows.rightOf(part);
-                if (less < rows.lengthOf(shortened)) {
-                    path[depth] = kept;
+                int other = isEnd ? rows.leftOf(part) : rows.rightOf(part);
+                if (counts.isLess(less, rows.lengthOf(shortened))) {
+                    kept[depth] = other;
                     depth++;
                     part = shortened;
                 } else {
-                    less -= rows.lengthOf(shortened);
-                    part = kept;
+                    less = counts.minus(less, rows.lengthOf(shortened));
+                    part = other;
                 }
             }
             int rest = less > 0 ? NONE : part;
             for (int i = depth - 1; i >= 0; i--) {
-                rest = isEnd ? rows.join(path[i], rest) : rows.join(rest, path[i]);
+                rest = isEnd ? rows.join(kept[i], rest) : rows.join(rest, kept[i]);
             }
             return rest;
         }
 
         // ---- ladders
 
-        /** Makes the ladders of a part from those of its two parts. */
+        /** Begins the ladders of a part with those of its right part. */
         private void climb(int part, int left, int right) {
             starts[part] = ladderCount;
-            counts[part] = 0;
-            if (length == 1 || length >= Rows.LONGEST) {
+            ends[part] = ladderCount;
+            if (length == 1) {
                 return;
             }
             if (left == NONE) {
-                if (goesOn(0, part, 1)) {
-                    add(part, 1, 1, 1);
+                if (areAlike(pattern, 0, part, 0, 1)) {
+                    add(part, 1, 0, 1);
                 }
                 return;
             }
-            if (rows.lengthOf(right) >= length) {
+            if (!counts.isLess(rows.lengthOf(right), length)) {
                 starts[part] = starts[right];
-                counts[part] = counts[right];
+                ends[part] = ends[right];
                 return;
             }
-            for (int i = starts[right]; i < starts[right] + counts[right]; i++) {
-                add(part, firsts[i], steps[i], rungs[i]);
-            }
-            for (int i = starts[left]; i < starts[left] + counts[left]; i++) {
-                climbOn(part, i, right);
+            for (int i = starts[right]; i < ends[right]; i++) {
+                add(part, firsts[i], steps[i], tops[i]);
             }
         }
 
-        /** Adds those rungs of a ladder of the left part with which the pattern goes on as the right part does. */
+        /** Adds the rungs of a measured ladder of the left part with which the pattern goes on as the right part. */
         private void climbOn(int part, int ladder, int right) {
             long more = rows.lengthOf(right);
-            long first = firsts[ladder];
-            long step = steps[ladder];
-            long only = first;
-            if (rungs[ladder] > 1) {
-                long top = first + step * (rungs[ladder] - 1);
-                long repeated = repeats(right, top, step, more);
-                if (repeated >= more) {
-                    long most = Math.min(reach(step), length - 1) - more;
-                    if (most >= first) {
-                        add(part, first + more, step, Math.min(rungs[ladder], (most - first) / step + 1));
-                    }
-                    return;
-                }
-                only = reach(step) - repeated;
+            if (!counts.isLess(more, length)) {
+                return;
             }
-            if (isOn(ladder, only) && only + more < length && goesOn(only, right, more)) {
-                add(part, only + more, 1, 1);
+            long only = firsts[ladder];
+            if (steps[ladder] > 0 && !counts.isLess(repeated, more)) {
+                climbAll(part, ladder, more);
+                return;
+            }
+            if (steps[ladder] > 0) {
+                only = counts.isLess(reach, repeated) ? 0 : counts.minus(reach, repeated);
+            }
+            long next = counts.plus(only, more);
+            if (isOn(ladder, only) && counts.isLess(next, length) && areAlike(pattern, only, right, 0, more)) {
+                add(part, next, 0, next);
+            }
+        }
+
+        /** Adds the rungs of a ladder, that much higher, up to where the pattern ends or repeats itself no more. */
+        private void climbAll(int part, int ladder, long more) {
+            long first = counts.plus(firsts[ladder], more);
+            long most = counts.least(reach, counts.minus(length, 1));
+            if (!counts.isLess(most, first)) {
+                long top = counts.least(counts.plus(tops[ladder], more), most);
+                top = counts.minus(top, counts.rest(counts.minus(top, first), steps[ladder]));
+                add(part, first, counts.isLess(first, top) ? steps[ladder] : 0, top);
             }
         }
 
         private boolean isOn(int ladder, long number) {
-            long above = number - firsts[ladder];
-            return above >= 0 && above % steps[ladder] == 0 && above / steps[ladder] < rungs[ladder];
+            if (counts.isLess(number, firsts[ladder]) || counts.isLess(tops[ladder], number)) {
+                return false;
+            }
+            return steps[ladder] == 0 || counts.rest(counts.minus(number, firsts[ladder]), steps[ladder]) == 0;
         }
 
-        private void add(int part, long first, long step, long count) {
+        /** The least rung of a ladder that is not less than a number, or 0. */
+        private long rungFrom(int ladder, long number) {
+            long first = firsts[ladder];
+            if (!counts.isLess(first, number)) {
+                return first;
+            }
+            long over = counts.rest(counts.minus(number, first), steps[ladder]);
+            long rung = over == 0 ? number : counts.plus(number, counts.minus(steps[ladder], over));
+            return counts.isLess(tops[ladder], rung) ? 0 : rung;
+        }
+
+        /** Adds a ladder behind all others of a part, or to the last of them, if the steps are the same. */
+        private void add(int part, long first, long step, long top) {
             int last = ladderCount - 1;
-            if (counts[part] > 0) {
-                long gap = first - firsts[last] - steps[last] * (rungs[last] - 1);
-                if ((rungs[last] == 1 || steps[last] == gap) && (count == 1 || step == gap)) {
+            if (ends[part] > starts[part]) {
+                long gap = counts.minus(first, tops[last]);
+                boolean isLast = steps[last] == 0 || counts.isEqual(steps[last], gap);
+                if (isLast && (step == 0 || counts.isEqual(step, gap))) {
                     steps[last] = gap;
-                    rungs[last] += count;
+                    tops[last] = top;
                     return;
                 }
             }
@@ -1446,67 +1673,68 @@ public final class Reifytown {
             if (ladderCount >= firsts.length) {
                 firsts = Arrays.copyOf(firsts, ladderCount * 2);
                 steps = Arrays.copyOf(steps, ladderCount * 2);
-                rungs = Arrays.copyOf(rungs, ladderCount * 2);
+                tops = Arrays.copyOf(tops, ladderCount * 2);
             }
             firsts[ladderCount] = first;
             steps[ladderCount] = step;
-            rungs[ladderCount] = count;
+            tops[ladderCount] = top;
             ladderCount++;
-            counts[part]++;
+            ends[part]++;
         }
 
         // ---- what goes on alike
 
-        /** How far the pattern repeats itself at a step from its first target on. */
-        private long reach(long step) {
-            if (lastStep != step) {
-                lastStep = step;
-                lastReach = step + common(pattern, 0, pattern, step, length - step);
+        /** Finds how far the pattern and the right part repeat themselves at the step of a ladder on the left. */
+        private void measure(int ladder, int right) {
+            long step = steps[ladder];
+            if (step == 0) {
+                return;
             }
-            return lastReach;
-        }
-
-        /** How far a part goes on as the first targets of the pattern do that repeat themselves at a step. */
-        private long repeats(int part, long top, long step, long most) {
-            long once = Math.min(step, most);
-            long alike = common(pattern, top - step, part, 0, once);
-            return alike < once || most <= step ? alike : step + common(part, 0, part, step, most - step);
+            if (lastStep == 0 || !counts.isEqual(lastStep, step)) {
+                lastStep = step;
+                reach = counts.plus(step, common(pattern, 0, pattern, step, counts.minus(length, step)));
+            }
+            long most = counts.least(rows.lengthOf(right), length);
+            long once = counts.least(step, most);
+            repeated = common(pattern, counts.minus(tops[ladder], step), right, 0, once);
+            if (!counts.isLess(repeated, once) && counts.isLess(step, most)) {
+                repeated = counts.plus(step, common(right, 0, right, step, counts.minus(most, step)));
+            }
         }
 
         /** How many targets, at most so many, are alike in two parts from a place on in each. */
         private long common(int one, long place, int other, long otherPlace, long most) {
-            long ahead = Rows.PRIME - rows.signOfFirst(one, place);
-            long otherAhead = Rows.PRIME - rows.signOfFirst(other, otherPlace);
-            long alike = 0;
-            long power = 1;
-            int top = 0;
-            while (top < BITS - 1 && most >> top > 1) {
-                top++;
+            if (areAlike(one, place, other, otherPlace, most)) {
+                return most;
             }
-            for (int i = top; i >= 0; i--) {
-                long more = alike + (1L << i);
-                if (more <= most) {
-                    long longer = Rows.reckon(power, squares[i], 0);
-                    long sign = Rows.reckon(ahead, longer, rows.signOfFirst(one, place + more));
-                    if (sign == Rows.reckon(otherAhead, longer, rows.signOfFirst(other, otherPlace + more))) {
-                        alike = more;
-                        power = longer;
-                    }
+            int mark = counts.mark();
+            int bits = counts.bitsOf(most);
+            int bit = 0;
+            while (bit < bits && areAlike(one, place, other, otherPlace, counts.power(bit))) {
+                bit++;
+            }
+            long alike = bit == 0 ? 0 : counts.power(bit - 1);
+            for (int i = bit - 2; i >= 0; i--) {
+                long more = counts.plus(alike, counts.power(i));
+                if (!counts.isLess(most, more) && areAlike(one, place, other, otherPlace, more)) {
+                    alike = more;
                 }
             }
-            return alike;
+            return counts.keep(alike, mark);
         }
 
-        /** Whether the pattern goes on from a place as a part begins. */
-        private boolean goesOn(long place, int part, long count) {
-            long power = 1;
-            for (int i = 0; i < BITS && count >> i != 0; i++) {
-                if ((count >> i & 1) != 0) {
+        /** Whether so many targets are alike in two parts from a place on in each. */
+        private boolean areAlike(int one, long place, int other, long otherPlace, long count) {
+            long power = Rows.PRIME - 1;
+            for (int i = counts.bitsOf(count) - 1; i >= 0; i--) {
+                if (counts.hasBit(count, i)) {
                     power = Rows.reckon(power, squares[i], 0);
                 }
             }
-            long ahead = Rows.reckon(rows.signOfFirst(pattern, place), power, rows.signOfFirst(part, count));
-            return ahead == rows.signOfFirst(pattern, place + count);
+            long end = rows.signOfFirst(one, counts.plus(place, count));
+            long otherEnd = rows.signOfFirst(other, counts.plus(otherPlace, count));
+            return Rows.reckon(rows.signOfFirst(one, place), power, end)
+                == Rows.reckon(rows.signOfFirst(other, otherPlace), power, otherEnd);
         }
     }
 
@@ -2333,7 +2561,7 @@ public final class Reifytown {
             }
             int row = rows.rootOf(delegate);
             int part = row;
-            for (long at = 0; at < rows.lengthOf(row); at += rows.lengthOf(part)) {
+            for (long at = 0; rows.isBefore(at, row); at = rows.placeBehind(at, part)) {
                 part = rows.partAt(row, at);
                 int way = rows.isIdle(part) ? callIdle(part) : callTarget(frame, rows.targetOf(part), body.cs[i]);
                 if (way != RETURNED) {

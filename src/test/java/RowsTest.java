@@ -93,22 +93,57 @@ public final class RowsTest {
         Checks.same("25 the calls of it until then, with the one that is cut", town.calls(), (1000 - ahead) / 2 + 1);
     }
 
+    /** Rows of 2 to the power of n, and of some more targets, in one another. */
     private static void beyondAllNumbers() {
+        for (int times : new int[] {1, 2, 9, 30, 31, 32, 57, 58, 59, 60, 61, 62, 63, 64, 100, 118, 119, 120, 121, 160}) {
+            Reifytown town = town();
+            int body = twoRows(town, times, 1, "P 1 1 3", "M 1 1 3", "I 5 1 1", "r 5");
+            Checks.same("15 a long row is called, " + times, town.run(body, 0), times < 8 ? 'r' : 'l');
+            town = town();
+            body = oneRow(town, times, "P 4 1 3", "P 5 1 4", "M 5 5 4", "P 4 1 1", "P 4 4 3", "P 5 1 3", "M 4 4 5", "M 4 4 1", "r 4");
+            Checks.runs("15 the end of a long row, " + times, town, body, 0, "r0");
+            town = town();
+            body = oneRow(town, times, "P 4 1 1", "P 4 4 3", "P 5 1 3", "M 4 4 5", "M 5 1 1", "? 5 5 0", "M 4 4 1", "P 4 4 3",
+                "I 4 4 1", "r 5");
+            Checks.runs("15 all of a long row, " + times, town, body, 0, "rn1 2");
+            town = town();
+            body = oneRow(town, times, "P 5 3 1", "P 4 1 5", "P 4 4 4", "P 5 5 1", "M 4 4 5", "P 5 1 1", "M 4 4 5", "M 4 4 3",
+                "M 4 4 5", "r 4");
+            Checks.runs("15 across the parts of a long row, " + times, town, body, 0, "r0");
+            town = town();
+            body = oneRow(town, times, "P 5 1 3", "P 4 5 5", "P 4 4 4", "P 5 3 5", "M 4 4 5", "M 4 4 5", "P 5 1 3", "M 4 4 1",
+                "P 4 4 3", "M 4 4 5", "r 4");
+            Checks.runs("15 out of rows that repeat themselves, " + times, town, body, 0, "r0");
+            town = town();
+            body = oneRow(town, times, "P 4 1 3", "P 5 4 4", "P 5 5 4", "P 4 5 1", "P 0 3 1", "P 0 0 1", "P 4 4 0", "M 4 4 5",
+                "M 4 4 0", "M 4 4 1", "r 4");
+            Checks.runs("15 a row that repeats itself out of another, " + times, town, body, 0, "r0");
+            town = town();
+            body = oneRow(town, times, "P 4 1 3", "P 5 4 4", "P 5 5 4", "P 0 5 3", "P 5 5 1", "P 4 3 1", "P 5 5 4", "P 4 3 3",
+                "P 5 5 4", "M 5 5 0", "P 4 1 3", "M 5 5 4", "M 5 5 4", "r 5");
+            Checks.runs("15 one that repeats itself up to its end, " + times, town, body, 0, "r0");
+        }
         Reifytown town = town();
-        int body = twoRows(town, 200, 1, "P 1 1 3", "M 1 1 3", "I 5 1 1", "r 5");
-        Checks.same("15 a row beyond all numbers", town.run(body, 0), 'l');
-        town = town();
-        body = twoRows(town, 100, 100, "P 3 3 1", "P 3 3 3", "M 5 3 1", "M 5 5 1", "r 5");
+        int body = twoRows(town, 100, 100, "P 3 3 1", "P 3 3 3", "M 5 3 1", "M 5 5 1", "r 5");
         Checks.runs("15 taken out beyond all numbers", town, body, 0, "rd");
     }
 
+    /** The local 1 becomes a row of the name 0 that is doubled so often, the local 3 one of the name 1. */
+    private static int oneRow(Reifytown town, int times, String... more) {
+        int body = body(town, "N 2 2");
+        Checks.write(town, body, doubled(0, 1, times, 1).toArray(new String[0]));
+        Checks.write(town, body, "D 3 2 1");
+        Checks.write(town, body, more);
+        return body;
+    }
+
     private static void callsWithoutSteps() {
-        for (int times : new int[] {0, 1, 12, 20, 30}) {
+        for (int times : new int[] {0, 1, 12, 20, 30, 58, 59, 60, 61, 100, 200}) {
             Reifytown town = town();
             int body = body(town, "N 2 2");
             Checks.write(town, body, doubled(3, 1, times + 1, 1).toArray(new String[0]));
             Checks.write(town, body, "D 3 2 1", "P 3 1 3", "I 4 3 1", "I 4 3 1", "I 0 1 1", "r 0");
-            long calls = 3L * (2L << times) + 2;
+            long calls = 3L * (2L << Math.min(times, 40)) + 2;
             Checks.runs("15 calls without steps, " + times, town, body, 0, "r0 2 2");
             Checks.same("25 are counted, " + times, town.calls(), (int) Math.min(Integer.MAX_VALUE, calls));
             Checks.same("24 are one piece, " + times, town.pieces(), 2);
