@@ -1812,6 +1812,9 @@ public final class Reifytown {
         // The argument in a piece is none, any reference (OWN), or one of the types.
         private static final int ARGUMENTS = MOST_TYPES + 2;
 
+        // Calls that take no step can be more than an int tells.
+        private static final int MOST_CALLS_TOLD = 0x7FFFFFFF;
+
         // How the statics of a type stand.
         static final int UNUSED = 0;
         static final int USED = 1;
@@ -1869,7 +1872,7 @@ public final class Reifytown {
         }
 
         void addCalls(long count) {
-            callCount = (int) Math.min(Integer.MAX_VALUE, callCount + count);
+            callCount = (int) Math.min(MOST_CALLS_TOLD, callCount + count);
         }
 
         boolean tellsAs(Outcome other) {
