@@ -1152,7 +1152,7 @@ public final class Reifytown {
      * each step, and rows share their parts. A part is one target, or two parts with lower numbers.
      */
     private static final class Rows {
-        private static final int FIRST_PARTS = 256;
+        private static final int FIRST_PARTS = 64;
         // 'P' makes one part, which lies one deeper; 'M' makes at most two for each depth, and none lies deeper.
         static final int DEEPEST_PART = MOST_STEPS;
         private static final int MOST_PARTS = 1 << 19;
@@ -1411,7 +1411,7 @@ public final class Reifytown {
      * of the beginnings of the pattern repeats itself at the step between them, as far as the longer one reaches.
      */
     private static final class Search {
-        private static final int FIRST_SIZE = 256;
+        private static final int FIRST_SIZE = 64;
         private static final int MOST_LADDERS = 1 << 20;
 
         // Where the pattern lies in a part: all of it, or across its two parts, with so many targets in the left one.
@@ -1901,7 +1901,7 @@ public final class Reifytown {
         private final Types types;
         private final Store store = new Store();
         private final Rows rows = new Rows();
-        private final Search search = new Search(rows);
+        private Search search = null;
         private final Frame[] stack = new Frame[MOST_CALLS];
         private final Frame[] plainFrames = new Frame[MOST_CALLS];
         private int depth = 0;
@@ -2546,7 +2546,13 @@ public final class Reifytown {
             if (!isRow(one) || !isRow(other)) {
                 return fail(FAULT_WRONG);
             }
-            return set(frame, body.as[i], body.ops[i] == 'P' ? rows.joined(one, other) : search.without(one, other));
+            if (body.ops[i] == 'P') {
+                return set(frame, body.as[i], rows.joined(one, other));
+            }
+            if (search == null) {
+                search = new Search(rows);
+            }
+            return set(frame, body.as[i], search.without(one, other));
         }
 
         private static boolean isRow(long value) {

@@ -153,7 +153,7 @@ public final class RandomRunsTest {
     }
 
     private void writeBody(int body, int bodies, int wrongness) {
-        int length = body < 2 ? 12 + upTo(13) : upTo(10) == 0 ? 0 : 1 + upTo(chance(30) ? 24 : 10);
+        int length = body < 2 ? 12 + upTo(13) : upTo(hasRows ? 2 : 10) == 0 ? 0 : 1 + upTo(chance(30) ? 24 : 10);
         java.util.Arrays.fill(guess, '0');
         guess[1] = 'n';
         if (body > 1) {
@@ -164,6 +164,7 @@ public final class RandomRunsTest {
             char op = of(i < 4 && chance(60) ? "NNNdB" : chance(40) ? "CCCCGGEEEIIDDPMQyye!.NBCC" : chance(20) ? "Sspp" : OPS);
             if (op == 'j' && chance(70)) op = 'z';
             if (body < 2 && i < 4) op = i < 2 ? 'N' : of("NdBGD");
+            if (hasRows && body < 2 && i > 1) op = of("DDDPPPMMIIIII.!");
             if ("rx".indexOf(op) >= 0 && i < length / 2 && chance(70)) op = 'C';
             writeStep(body, instead(op), length, wrongness);
         }
@@ -289,7 +290,11 @@ public final class RandomRunsTest {
         calls += plain.last.calls; steps += plain.last.steps;
     }
 
+    /** Whether the first two bodies are mostly about delegates, and many others have no steps. */
+    private boolean hasRows;
+
     private void live() {
+        hasRows = chance(15);
         town = new Reifytown();
         plain = new PlainTown();
         int wrongness = chance(50) ? 0 : 3;
