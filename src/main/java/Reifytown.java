@@ -981,6 +981,13 @@ public final class Reifytown {
 
         private long[] digits = new long[FIRST_LARGE * DIGITS];
         private int largeCount = 0;
+        // No number has more digits than this.
+        private int width = 1;
+
+        void clear() {
+            largeCount = 0;
+            width = 1;
+        }
 
         /** How many large numbers are kept. */
         int mark() {
@@ -1009,10 +1016,14 @@ public final class Reifytown {
             }
             int made = reserve();
             long sum = 0;
-            for (int i = 0; i < DIGITS; i++) {
+            for (int i = 0; i < width; i++) {
                 sum += digit(one, i) + digit(other, i);
                 digits[made + i] = sum & LARGE - 1;
                 sum >>= DIGIT;
+            }
+            if (sum > 0 && width < DIGITS) {
+                widen();
+                digits[made + width - 1] = sum;
             }
             return told(made);
         }
@@ -1024,7 +1035,7 @@ public final class Reifytown {
             }
             int made = reserve();
             long left = 0;
-            for (int i = 0; i < DIGITS; i++) {
+            for (int i = 0; i < width; i++) {
                 left += digit(one, i) - digit(other, i);
                 digits[made + i] = left & LARGE - 1;
                 left >>= DIGIT;
@@ -1039,7 +1050,7 @@ public final class Reifytown {
             }
             int made = reserve();
             Arrays.fill(digits, made, made + DIGITS, 0);
-            for (int i = BITS - 1; i >= 0; i--) {
+            for (int i = bitsOf(one) - 1; i >= 0; i--) {
                 long next = hasBit(one, i) ? 1 : 0;
                 for (int k = 0; k < DIGITS; k++) {
                     next += digits[made + k] * 2;
@@ -1072,7 +1083,7 @@ public final class Reifytown {
             }
             int place = (int) (one - LARGE) * DIGITS;
             int otherPlace = (int) (other - LARGE) * DIGITS;
-            int i = DIGITS - 1;
+            int i = width - 1;
             while (i > 0 && digits[place + i] == digits[otherPlace + i]) {
                 i--;
             }
@@ -1081,25 +1092,14 @@ public final class Reifytown {
 
         boolean isEqual(long one, long other) {
             int same = 0;
-            while (same < DIGITS && digit(one, same) == digit(other, same)) {
+            while (same < width && digit(one, same) == digit(other, same)) {
                 same++;
             }
-            return same == DIGITS;
+            return same == width;
         }
 
         long least(long one, long other) {
             return isLess(other, one) ? other : one;
-        }
-
-        /** 2 to some power. */
-        long power(int bit) {
-            if (bit < DIGIT) {
-                return 1L << bit;
-            }
-            int made = reserve();
-            Arrays.fill(digits, made, made + DIGITS, 0);
-            digits[made + bit / DIGIT] = 1L << bit % DIGIT;
-            return told(made);
         }
 
         boolean hasBit(long count, int bit) {
@@ -1107,7 +1107,7 @@ public final class Reifytown {
         }
 
         int bitsOf(long count) {
-            int bits = count < LARGE ? DIGIT : BITS;
+            int bits = count < LARGE ? DIGIT : DIGIT * width;
             while (bits > 0 && !hasBit(count, bits - 1)) {
                 bits--;
             }
@@ -1118,7 +1118,7 @@ public final class Reifytown {
             if (count < LARGE) {
                 return index == 0 ? count : 0;
             }
-            return digits[(int) (count - LARGE) * DIGITS + index];
+            return index >= width ? 0 : digits[(int) (count - LARGE) * DIGITS + index];
         }
 
         /** The place of the digits of a new large number. */
@@ -1134,8 +1134,16 @@ public final class Reifytown {
             return made;
         }
 
+        /** Gives all numbers one more digit. */
+        private void widen() {
+            for (int i = 0; i < largeCount; i++) {
+                digits[i * DIGITS + width] = 0;
+            }
+            width++;
+        }
+
         private long told(int made) {
-            int i = DIGITS - 1;
+            int i = width - 1;
             while (i > 0 && digits[made + i] == 0) {
                 i--;
             }
@@ -1185,7 +1193,7 @@ public final class Reifytown {
         private int signedCount = 0;
 
         void clear() {
-            counts.release(0);
+            counts.clear();
             targetCount = 0;
             rowCount = 0;
             partCount = 0;
@@ -1370,6 +1378,11 @@ public final class Reifytown {
             return signs[part] == signs[other] && counts.isEqual(lengths[part], lengths[other]);
         }
 
+        /** The sign of a row with a sign and a part behind it. */
+        long signBehind(long sign, int part) {
+            return reckon(sign, powers[part], signs[part]);
+        }
+
         /** The sign of the first targets of a part. */
         long signOfFirst(int whole, long count) {
             int mark = counts.mark();
@@ -1414,6 +1427,10 @@ public final class Reifytown {
         private static final int FIRST_SIZE = 64;
         private static final int MOST_LADDERS = 1 << 20;
 
+        // The rungs of a short ladder, at most so many, are tried one by one.
+        private static final int SHORT = 4;
+        private static final int FEW = (1 << SHORT) + 1;
+
         // Where the pattern lies in a part: all of it, or across its two parts, with so many targets in the left one.
         private static final long WHOLE = 0;
         private static final long NOWHERE = -1;
@@ -1435,7 +1452,11 @@ public final class Reifytown {
         private long[] steps = new long[FIRST_SIZE];
         private long[] tops = new long[FIRST_SIZE];
         private int ladderCount = 0;
-        private long lastStep = 0;
+        // How far the pattern repeats itself at the steps that were asked for.
+        private long[] knownSteps = new long[FIRST_SIZE];
+        private long[] reaches = new long[FIRST_SIZE];
+        private int knownCount = 0;
+        private boolean isShort = false;
         private long reach = 0;
         private long repeated = 0;
         private final int[] above = new int[Rows.DEEPEST_PART];
@@ -1486,7 +1507,7 @@ public final class Reifytown {
             pattern = sought;
             length = rows.lengthOf(sought);
             ladderCount = 0;
-            lastStep = 0;
+            knownCount = 0;
             if (places.length <= row) {
                 places = new long[row * 2];
                 starts = new int[row * 2];
@@ -1518,19 +1539,26 @@ public final class Reifytown {
 
         /** The least rung of a measured ladder behind which the right part begins with all else, or 0. */
         private long across(int ladder, int right) {
-            long only = firsts[ladder];
-            if (steps[ladder] > 0 && !counts.isLess(reach, length)) {
-                return rungFrom(ladder, counts.minus(length, repeated));
+            long rung = firsts[ladder];
+            for (int i = 0; isShort && i < FEW; i++) {
+                if (rung == 0 || isAcross(rung, right)) {
+                    return rung;
+                }
+                rung = rungBehind(ladder, rung);
             }
-            if (steps[ladder] > 0) {
-                only = counts.isLess(reach, repeated) ? 0 : counts.minus(reach, repeated);
-            }
-            if (!isOn(ladder, only)) {
+            if (isShort) {
                 return 0;
             }
-            long behind = counts.minus(length, only);
-            boolean isLong = !counts.isLess(rows.lengthOf(right), behind);
-            return isLong && areAlike(pattern, only, right, 0, behind) ? only : 0;
+            if (!counts.isLess(reach, length)) {
+                return rungFrom(ladder, counts.minus(length, repeated));
+            }
+            long only = onlyRung();
+            return isOn(ladder, only) && isAcross(only, right) ? only : 0;
+        }
+
+        private boolean isAcross(long rung, int right) {
+            long behind = counts.minus(length, rung);
+            return !counts.isLess(rows.lengthOf(right), behind) && areAlike(pattern, rung, right, behind);
         }
 
         // ---- what is left of a row when what was found in it is taken out
@@ -1591,7 +1619,7 @@ public final class Reifytown {
                 return;
             }
             if (left == NONE) {
-                if (areAlike(pattern, 0, part, 0, 1)) {
+                if (areAlike(pattern, 0, part, 1)) {
                     add(part, 1, 0, 1);
                 }
                 return;
@@ -1612,16 +1640,23 @@ public final class Reifytown {
             if (!counts.isLess(more, length)) {
                 return;
             }
-            long only = firsts[ladder];
-            if (steps[ladder] > 0 && !counts.isLess(repeated, more)) {
+            if (isShort) {
+                long rung = firsts[ladder];
+                for (int i = 0; i < FEW && rung > 0; i++) {
+                    climbFrom(part, rung, right);
+                    rung = rungBehind(ladder, rung);
+                }
+            } else if (!counts.isLess(repeated, more)) {
                 climbAll(part, ladder, more);
-                return;
+            } else if (isOn(ladder, onlyRung())) {
+                climbFrom(part, onlyRung(), right);
             }
-            if (steps[ladder] > 0) {
-                only = counts.isLess(reach, repeated) ? 0 : counts.minus(reach, repeated);
-            }
-            long next = counts.plus(only, more);
-            if (isOn(ladder, only) && counts.isLess(next, length) && areAlike(pattern, only, right, 0, more)) {
+        }
+
+        private void climbFrom(int part, long rung, int right) {
+            long more = rows.lengthOf(right);
+            long next = counts.plus(rung, more);
+            if (counts.isLess(next, length) && areAlike(pattern, rung, right, more)) {
                 add(part, next, 0, next);
             }
         }
@@ -1637,11 +1672,21 @@ public final class Reifytown {
             }
         }
 
+        /** The rung with which the pattern ceases to repeat itself as the right part does, or 0. */
+        private long onlyRung() {
+            return counts.isLess(reach, repeated) ? 0 : counts.minus(reach, repeated);
+        }
+
+        /** The next higher rung of a ladder, or 0. */
+        private long rungBehind(int ladder, long rung) {
+            return counts.isLess(rung, tops[ladder]) ? counts.plus(rung, steps[ladder]) : 0;
+        }
+
         private boolean isOn(int ladder, long number) {
             if (counts.isLess(number, firsts[ladder]) || counts.isLess(tops[ladder], number)) {
                 return false;
             }
-            return steps[ladder] == 0 || counts.rest(counts.minus(number, firsts[ladder]), steps[ladder]) == 0;
+            return counts.rest(counts.minus(number, firsts[ladder]), steps[ladder]) == 0;
         }
 
         /** The least rung of a ladder that is not less than a number, or 0. */
@@ -1684,57 +1729,82 @@ public final class Reifytown {
 
         // ---- what goes on alike
 
-        /** Finds how far the pattern and the right part repeat themselves at the step of a ladder on the left. */
+        /** Finds how far the pattern and the right part repeat themselves at the step of a ladder, if it is long. */
         private void measure(int ladder, int right) {
             long step = steps[ladder];
-            if (step == 0) {
+            long few = step;
+            for (int i = 0; i < SHORT; i++) {
+                few = counts.plus(few, few);
+            }
+            isShort = !counts.isLess(counts.plus(firsts[ladder], few), tops[ladder]);
+            if (isShort) {
                 return;
             }
-            if (lastStep == 0 || !counts.isEqual(lastStep, step)) {
-                lastStep = step;
-                reach = counts.plus(step, common(pattern, 0, pattern, step, counts.minus(length, step)));
+            int known = placeOfStep(step);
+            if (known == knownCount) {
+                knownSteps[known] = step;
+                reaches[known] = counts.plus(step, common(pattern, step, pattern, counts.minus(length, step)));
+                knownCount++;
             }
+            reach = reaches[known];
             long most = counts.least(rows.lengthOf(right), length);
             long once = counts.least(step, most);
-            repeated = common(pattern, counts.minus(tops[ladder], step), right, 0, once);
+            repeated = common(pattern, counts.minus(tops[ladder], step), right, once);
             if (!counts.isLess(repeated, once) && counts.isLess(step, most)) {
-                repeated = counts.plus(step, common(right, 0, right, step, counts.minus(most, step)));
+                repeated = counts.plus(step, common(right, step, right, counts.minus(most, step)));
             }
         }
 
-        /** How many targets, at most so many, are alike in two parts from a place on in each. */
-        private long common(int one, long place, int other, long otherPlace, long most) {
-            if (areAlike(one, place, other, otherPlace, most)) {
+        /** Where a step is among those that were asked for, or where it will be. */
+        private int placeOfStep(long step) {
+            for (int i = knownCount - 1; i >= 0; i--) {
+                if (counts.isEqual(knownSteps[i], step)) {
+                    return i;
+                }
+            }
+            if (knownCount >= knownSteps.length) {
+                knownSteps = Arrays.copyOf(knownSteps, knownCount * 2);
+                reaches = Arrays.copyOf(reaches, knownCount * 2);
+            }
+            return knownCount;
+        }
+
+        /** How many targets, at most so many, are alike from a place in one part on, and in another one. */
+        private long common(int one, long place, int other, long most) {
+            if (areAlike(one, place, other, most)) {
                 return most;
             }
             int mark = counts.mark();
-            int bits = counts.bitsOf(most);
-            int bit = 0;
-            while (bit < bits && areAlike(one, place, other, otherPlace, counts.power(bit))) {
-                bit++;
-            }
-            long alike = bit == 0 ? 0 : counts.power(bit - 1);
-            for (int i = bit - 2; i >= 0; i--) {
-                long more = counts.plus(alike, counts.power(i));
-                if (!counts.isLess(most, more) && areAlike(one, place, other, otherPlace, more)) {
-                    alike = more;
+            long alike = 0;
+            int part = other;
+            long sign = rows.signOfFirst(one, place);
+            for (int i = 0; i <= Rows.DEEPEST_PART && part >= 0; i++) {
+                int left = rows.leftOf(part);
+                int first = left < 0 ? part : left;
+                long next = counts.plus(alike, rows.lengthOf(first));
+                boolean isLong = counts.isLess(most, next);
+                long end = isLong ? 0 : rows.signOfFirst(one, counts.plus(place, next));
+                if (!isLong && end == rows.signBehind(sign, first)) {
+                    alike = next;
+                    sign = end;
+                    part = left < 0 ? NONE : rows.rightOf(part);
+                } else {
+                    part = left;
                 }
             }
             return counts.keep(alike, mark);
         }
 
-        /** Whether so many targets are alike in two parts from a place on in each. */
-        private boolean areAlike(int one, long place, int other, long otherPlace, long count) {
-            long power = Rows.PRIME - 1;
+        /** Whether so many targets are alike from a place in one part on, and in another one. */
+        private boolean areAlike(int one, long place, int other, long count) {
+            long power = 1;
             for (int i = counts.bitsOf(count) - 1; i >= 0; i--) {
                 if (counts.hasBit(count, i)) {
                     power = Rows.reckon(power, squares[i], 0);
                 }
             }
-            long end = rows.signOfFirst(one, counts.plus(place, count));
-            long otherEnd = rows.signOfFirst(other, counts.plus(otherPlace, count));
-            return Rows.reckon(rows.signOfFirst(one, place), power, end)
-                == Rows.reckon(rows.signOfFirst(other, otherPlace), power, otherEnd);
+            long sign = Rows.reckon(rows.signOfFirst(one, place), power, rows.signOfFirst(other, count));
+            return sign == rows.signOfFirst(one, counts.plus(place, count));
         }
     }
 
