@@ -1166,11 +1166,13 @@ public final class Reifytown {
         private static final int MOST_PARTS = 1 << 19;
         private static final int WAYS = 128;
 
-        // Signs are reckoned modulo this prime number, 2 to the power of 61 less 1.
-        static final long PRIME = (1L << 61) - 1;
-        static final long BASE = 1350490027123405247L;
-        private static final long LOW_30 = (1L << 30) - 1;
-        private static final long LOW_31 = (1L << 31) - 1;
+        // Signs are reckoned modulo two prime numbers, for the upper and the lower half of a long. With these bases
+        // no power is 1 below 2 to the power of 60.6, which is not near what rows have as their lengths.
+        private static final long HIGH_PRIME = 1783943243;
+        private static final long LOW_PRIME = 2042718023;
+        private static final long LOW_HALF = 0xFFFFFFFFL;
+        static final long BASE = 1627558490L << 32 | 1790043976L;
+        static final long ONE = 1L << 32 | 1L;
 
         // What is known of a part: that its calls take no step, that its pieces were noted, or are to be.
         private static final int IDLE = 1;
@@ -1364,7 +1366,8 @@ public final class Reifytown {
                 int left = lefts[signedCount];
                 int right = rights[signedCount];
                 if (left == NONE) {
-                    signs[signedCount] = receivers[right] * WAYS + ways[right] + 1;
+                    long letter = receivers[right] * WAYS + ways[right] + 1;
+                    signs[signedCount] = letter % HIGH_PRIME << 32 | letter % LOW_PRIME;
                     powers[signedCount] = BASE;
                 } else {
                     signs[signedCount] = reckon(signs[left], powers[right], signs[right]);
@@ -1405,15 +1408,9 @@ public final class Reifytown {
 
         /** A product and a sum of signs. */
         static long reckon(long one, long factor, long added) {
-            long high = one >>> 31;
-            long low = one & LOW_31;
-            long factorHigh = factor >>> 31;
-            long factorLow = factor & LOW_31;
-            long middle = low * factorHigh + high * factorLow;
-            long sum = high * factorHigh * 2 + (middle >>> 30) + ((middle & LOW_30) << 31) + low * factorLow;
-            sum = (sum >>> 61) + (sum & PRIME) + added;
-            sum = (sum >>> 61) + (sum & PRIME);
-            return sum >= PRIME ? sum - PRIME : sum;
+            long high = ((one >>> 32) * (factor >>> 32) + (added >>> 32)) % HIGH_PRIME;
+            long low = ((one & LOW_HALF) * (factor & LOW_HALF) + (added & LOW_HALF)) % LOW_PRIME;
+            return high << 32 | low;
         }
     }
 
@@ -1797,7 +1794,7 @@ public final class Reifytown {
 
         /** Whether so many targets are alike from a place in one part on, and in another one. */
         private boolean areAlike(int one, long place, int other, long count) {
-            long power = 1;
+            long power = Rows.ONE;
             for (int i = counts.bitsOf(count) - 1; i >= 0; i--) {
                 if (counts.hasBit(count, i)) {
                     power = Rows.reckon(power, squares[i], 0);

@@ -126,6 +126,9 @@ public final class RowsTest {
             body = oneRow(town, times, "P 4 1 3", "P 5 4 4", "P 5 5 5", "P 5 5 5", "P 5 5 5", "P 5 5 5", "P 0 5 1", "P 4 3 1",
                 "P 4 4 1", "P 0 0 4", "M 0 0 5", "M 0 0 4", "M 0 0 1", "r 0");
             Checks.runs("15 one that repeats itself often, " + times, town, body, 0, "r0");
+            town = town();
+            body = oneRow(town, times, "D 5 2 0", "P 4 5 3", "M 0 1 5", "P 4 4 0", "P 5 1 3", "M 0 5 4", "? 0 0 5", "r 0");
+            Checks.runs("15 one target at other ends of long rows, " + times, town, body, 0, "rn1");
         }
         Reifytown town = town();
         int body = twoRows(town, 100, 100, "P 3 3 1", "P 3 3 3", "M 5 3 1", "M 5 5 1", "r 5");
