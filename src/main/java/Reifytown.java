@@ -976,38 +976,68 @@ public final class Reifytown {
         // Enough for what 1000 steps can double.
         private static final int DIGITS = 17;
         static final int BITS = DIGIT * DIGITS;
-        private static final int FIRST_LARGE = 4;
+        // The first places are for passing results, a few at a time; those behind are for what is stored.
+        private static final int PASSING = 256;
+        private static final int FIRST_LARGE = PASSING + 16;
         private static final int MOST_LARGE = 1 << 19;
 
-        private long[] digits = new long[FIRST_LARGE * DIGITS];
-        private int largeCount = 0;
+        private long[] digits = new long[0];
+        private int passingCount = 0;
+        private int storedCount = 0;
         // No number has more digits than this.
         private int width = 1;
 
         void clear() {
-            largeCount = 0;
+            passingCount = 0;
+            storedCount = 0;
             width = 1;
         }
 
-        /** How many large numbers are kept. */
+        /** How many passing results there are. */
         int mark() {
-            return largeCount;
+            return passingCount;
         }
 
-        /** Gives up all large numbers that were made since there were so many. */
+        /** Gives up the passing results that were made since there were so many. */
         void release(int mark) {
-            largeCount = mark;
+            passingCount = mark;
         }
 
         /** Gives up all these but one. */
         long keep(long count, int mark) {
-            largeCount = mark;
-            if (count < LARGE) {
+            passingCount = mark;
+            if (count < LARGE || count >= LARGE + PASSING) {
                 return count;
             }
             System.arraycopy(digits, (int) (count - LARGE) * DIGITS, digits, mark * DIGITS, DIGITS);
-            largeCount++;
+            passingCount++;
             return LARGE + mark;
+        }
+
+        /** How many numbers are stored. */
+        int stored() {
+            return storedCount;
+        }
+
+        /** Gives up what was stored since there was so much. */
+        void drop(int stored) {
+            storedCount = stored;
+        }
+
+        /** Stores what may be a passing result. */
+        long store(long count) {
+            if (count < LARGE || count >= LARGE + PASSING) {
+                return count;
+            }
+            int place = (PASSING + storedCount) * DIGITS;
+            if (place >= digits.length && digits.length < MOST_LARGE * DIGITS) {
+                digits = Arrays.copyOf(digits, digits.length * 2);
+            }
+            if (place < digits.length) {
+                System.arraycopy(digits, (int) (count - LARGE) * DIGITS, digits, place, DIGITS);
+                storedCount++;
+            }
+            return LARGE + PASSING + storedCount - 1;
         }
 
         long plus(long one, long other) {
@@ -1121,22 +1151,23 @@ public final class Reifytown {
             return index >= width ? 0 : digits[(int) (count - LARGE) * DIGITS + index];
         }
 
-        /** The place of the digits of a new large number. */
+        /** The place of the digits of a new passing result. */
         private int reserve() {
-            int made = largeCount * DIGITS;
-            if (made >= digits.length && largeCount < MOST_LARGE) {
-                digits = Arrays.copyOf(digits, made * 2);
+            if (digits.length == 0) {
+                digits = new long[FIRST_LARGE * DIGITS];
             }
-            if (made >= digits.length) {
-                return made - DIGITS;
+            if (passingCount < PASSING) {
+                passingCount++;
             }
-            largeCount++;
-            return made;
+            return (passingCount - 1) * DIGITS;
         }
 
         /** Gives all numbers one more digit. */
         private void widen() {
-            for (int i = 0; i < largeCount; i++) {
+            for (int i = 0; i < passingCount; i++) {
+                digits[i * DIGITS + width] = 0;
+            }
+            for (int i = PASSING; i < PASSING + storedCount; i++) {
                 digits[i * DIGITS + width] = 0;
             }
             width++;
@@ -1150,7 +1181,7 @@ public final class Reifytown {
             if (i > 0) {
                 return LARGE + made / DIGITS;
             }
-            largeCount = made / DIGITS;
+            passingCount = made / DIGITS;
             return digits[made];
         }
     }
@@ -1179,7 +1210,7 @@ public final class Reifytown {
         private static final int NOTED = 2;
         private static final int ASKED = 4;
 
-        private final Counts counts = new Counts();
+        final Counts counts = new Counts();
         private final long[] receivers = new long[MOST_THINGS];
         private final int[] ways = new int[MOST_THINGS];
         private int targetCount = 0;
@@ -1279,8 +1310,9 @@ public final class Reifytown {
             return counts.isLess(place, lengths[part]);
         }
 
-        long placeBehind(long place, int part) {
-            return counts.plus(place, lengths[part]);
+        /** The place behind a part, as the one passing result since a mark. */
+        long placeBehind(long place, int part, int mark) {
+            return counts.keep(counts.plus(place, lengths[part]), mark);
         }
 
         /** The longest idle part, or else the one target, that begins in a part at a place. */
@@ -1293,7 +1325,7 @@ public final class Reifytown {
                 if (counts.isLess(ahead, lengths[left])) {
                     part = left;
                 } else {
-                    ahead = counts.minus(ahead, lengths[left]);
+                    ahead = counts.keep(counts.minus(ahead, lengths[left]), mark);
                     part = rights[part];
                 }
             }
@@ -1345,7 +1377,9 @@ public final class Reifytown {
             if (left == NONE || right == NONE || !reserve()) {
                 return left == NONE ? right : left;
             }
-            long length = counts.plus(lengths[left], lengths[right]);
+            int mark = counts.mark();
+            long length = counts.store(counts.plus(lengths[left], lengths[right]));
+            counts.release(mark);
             return add(left, right, length, marks[left] & marks[right] & IDLE);
         }
 
@@ -1398,7 +1432,7 @@ public final class Reifytown {
                     part = left;
                 } else {
                     sign = reckon(sign, powers[left], signs[left]);
-                    missing = counts.minus(missing, lengths[left]);
+                    missing = counts.keep(counts.minus(missing, lengths[left]), mark);
                     part = rights[part];
                 }
             }
@@ -1476,6 +1510,7 @@ public final class Reifytown {
                 return one;
             }
             int mark = counts.mark();
+            int stored = counts.stored();
             rows.signAll();
             begin(row, less);
             for (int i = 0; i <= row; i++) {
@@ -1487,16 +1522,19 @@ public final class Reifytown {
                     for (int k = left < 0 ? 0 : starts[left]; left >= 0 && k < ends[left]; k++) {
                         measure(k, right);
                         climbOn(i, k, right);
-                        across = across > 0 ? across : across(k, right);
+                        across = across > 0 ? across : counts.store(across(k, right));
+                        counts.release(mark);
                     }
                     settle(i, left, right, across);
                 }
             }
-            if (places[row] == NOWHERE) {
-                counts.release(mark);
-                return one;
+            boolean isFound = places[row] != NOWHERE;
+            long made = isFound ? rows.row(cut(row, stored)) : one;
+            counts.release(mark);
+            if (!isFound) {
+                counts.drop(stored);
             }
-            return rows.row(cut(row, mark));
+            return made;
         }
 
         /** Begins to look for a pattern in a row: all parts of this are wanted. */
@@ -1560,7 +1598,8 @@ public final class Reifytown {
 
         // ---- what is left of a row when what was found in it is taken out
 
-        private int cut(int row, int mark) {
+        /** What is left of a row; all that was stored for the search is given up first. */
+        private int cut(int row, int stored) {
             int depth = 0;
             int at = row;
             while (depth < above.length && (places[at] == IN_LEFT || places[at] == IN_RIGHT)) {
@@ -1568,7 +1607,8 @@ public final class Reifytown {
                 depth++;
                 at = places[at] == IN_LEFT ? rows.leftOf(at) : rows.rightOf(at);
             }
-            long across = counts.keep(Math.max(0, places[at]), mark);
+            long across = counts.plus(Math.max(0, places[at]), 0);
+            counts.drop(stored);
             int rest = NONE;
             if (across > 0) {
                 int front = shorten(rows.leftOf(at), across, true);
@@ -1584,6 +1624,7 @@ public final class Reifytown {
 
         /** A part without so many of its targets, the last or the first ones. */
         private int shorten(int whole, long count, boolean isEnd) {
+            int mark = counts.mark();
             int depth = 0;
             int part = whole;
             long less = count;
@@ -1595,7 +1636,7 @@ public final class Reifytown {
                     depth++;
                     part = shortened;
                 } else {
-                    less = counts.minus(less, rows.lengthOf(shortened));
+                    less = counts.keep(counts.minus(less, rows.lengthOf(shortened)), mark);
                     part = other;
                 }
             }
@@ -1704,8 +1745,8 @@ public final class Reifytown {
                 long gap = counts.minus(first, tops[last]);
                 boolean isLast = steps[last] == 0 || counts.isEqual(steps[last], gap);
                 if (isLast && (step == 0 || counts.isEqual(step, gap))) {
-                    steps[last] = gap;
-                    tops[last] = top;
+                    steps[last] = counts.store(gap);
+                    tops[last] = counts.store(top);
                     return;
                 }
             }
@@ -1717,9 +1758,9 @@ public final class Reifytown {
                 steps = Arrays.copyOf(steps, ladderCount * 2);
                 tops = Arrays.copyOf(tops, ladderCount * 2);
             }
-            firsts[ladderCount] = first;
-            steps[ladderCount] = step;
-            tops[ladderCount] = top;
+            firsts[ladderCount] = counts.store(first);
+            steps[ladderCount] = counts.store(step);
+            tops[ladderCount] = counts.store(top);
             ladderCount++;
             ends[part]++;
         }
@@ -1740,7 +1781,8 @@ public final class Reifytown {
             int known = placeOfStep(step);
             if (known == knownCount) {
                 knownSteps[known] = step;
-                reaches[known] = counts.plus(step, common(pattern, step, pattern, counts.minus(length, step)));
+                long common = common(pattern, step, pattern, counts.minus(length, step));
+                reaches[known] = counts.store(counts.plus(step, common));
                 knownCount++;
             }
             reach = reaches[known];
@@ -1781,15 +1823,16 @@ public final class Reifytown {
                 long next = counts.plus(alike, rows.lengthOf(first));
                 boolean isLong = counts.isLess(most, next);
                 long end = isLong ? 0 : rows.signOfFirst(one, counts.plus(place, next));
-                if (!isLong && end == rows.signBehind(sign, first)) {
-                    alike = next;
+                boolean isAlike = !isLong && end == rows.signBehind(sign, first);
+                if (isAlike) {
                     sign = end;
                     part = left < 0 ? NONE : rows.rightOf(part);
                 } else {
                     part = left;
                 }
+                alike = counts.keep(isAlike ? next : alike, mark);
             }
-            return counts.keep(alike, mark);
+            return alike;
         }
 
         /** Whether so many targets are alike from a place in one part on, and in another one. */
@@ -1800,8 +1843,10 @@ public final class Reifytown {
                     power = Rows.reckon(power, squares[i], 0);
                 }
             }
-            long sign = Rows.reckon(rows.signOfFirst(one, place), power, rows.signOfFirst(other, count));
-            return sign == rows.signOfFirst(one, counts.plus(place, count));
+            int mark = counts.mark();
+            long end = rows.signOfFirst(one, counts.plus(place, count));
+            counts.release(mark);
+            return end == Rows.reckon(rows.signOfFirst(one, place), power, rows.signOfFirst(other, count));
         }
     }
 
@@ -2637,14 +2682,14 @@ public final class Reifytown {
             }
             int row = rows.rootOf(delegate);
             int part = row;
-            for (long at = 0; rows.isBefore(at, row); at = rows.placeBehind(at, part)) {
+            int way = RETURNED;
+            int mark = rows.counts.mark();
+            for (long at = 0; way == RETURNED && rows.isBefore(at, row); at = rows.placeBehind(at, part, mark)) {
                 part = rows.partAt(row, at);
-                int way = rows.isIdle(part) ? callIdle(part) : callTarget(frame, rows.targetOf(part), body.cs[i]);
-                if (way != RETURNED) {
-                    return way;
-                }
+                way = rows.isIdle(part) ? callIdle(part) : callTarget(frame, rows.targetOf(part), body.cs[i]);
             }
-            return set(frame, body.as[i], result);
+            rows.counts.release(mark);
+            return way == RETURNED ? set(frame, body.as[i], result) : way;
         }
 
         /** Calls all targets of a part whose calls take no step; no run could end that called them one by one. */
