@@ -1144,6 +1144,18 @@ public final class Reifytown {
             return bits;
         }
 
+        /** A number as an int, or the greatest int if it is larger. */
+        int inInt(long count) {
+            if (bitsOf(count) > 31) {
+                return 0x7FFFFFFF;
+            }
+            int number = 0;
+            for (int i = 30; i >= 0; i--) {
+                number = number * 2 + (hasBit(count, i) ? 1 : 0);
+            }
+            return number;
+        }
+
         private long digit(long count, int index) {
             if (count < LARGE) {
                 return index == 0 ? count : 0;
@@ -1983,8 +1995,8 @@ public final class Reifytown {
             }
         }
 
-        void addCalls(long count) {
-            callCount = (int) Math.min(MOST_CALLS_TOLD, callCount + count);
+        void addCalls(int count) {
+            callCount = Math.min(callCount, MOST_CALLS_TOLD - count) + count;
         }
 
         boolean tellsAs(Outcome other) {
@@ -2702,7 +2714,7 @@ public final class Reifytown {
                     notePieceOf(rows.answer(i));
                 }
             }
-            out.addCalls(rows.lengthOf(part));
+            out.addCalls(rows.counts.inInt(rows.lengthOf(part)));
             result = NULL;
             return RETURNED;
         }
