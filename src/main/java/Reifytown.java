@@ -382,7 +382,7 @@ public final class Reifytown {
         if (last.callCount == 0) {
             throw new ArithmeticException("there were no calls");
         }
-        return (float) last.pieceCount / (float) last.callCount;
+        return (float) last.pieceCount / last.callsAsFloat;
     }
 
     public double meanSteps() throws ArithmeticException {
@@ -975,16 +975,18 @@ public final class Reifytown {
 
         // Enough for what 1000 steps can double.
         private static final int DIGITS = 17;
-        static final int BITS = DIGIT * DIGITS;
         // The first places are for passing results, a few at a time; those behind are for what is stored.
         private static final int PASSING = 256;
-        private static final int FIRST_LARGE = PASSING + 16;
-        private static final int MOST_LARGE = 1 << 19;
+        private static final int MOST_LARGE = 1 << 21;
+
+        // More than the bits that a float tells.
+        private static final int TOP_BITS = 40;
+        private static final long MIXING = 0x9E3779B97F4A7C15L;
 
         private long[] digits = new long[0];
         private int passingCount = 0;
         private int storedCount = 0;
-        // No number has more digits than this.
+        // So many digits are kept of each number, and none has more.
         private int width = 1;
 
         void clear() {
@@ -1009,7 +1011,7 @@ public final class Reifytown {
             if (count < LARGE || count >= LARGE + PASSING) {
                 return count;
             }
-            System.arraycopy(digits, (int) (count - LARGE) * DIGITS, digits, mark * DIGITS, DIGITS);
+            System.arraycopy(digits, (int) (count - LARGE) * width, digits, mark * width, width);
             passingCount++;
             return LARGE + mark;
         }
@@ -1026,18 +1028,19 @@ public final class Reifytown {
 
         /** Stores what may be a passing result. */
         long store(long count) {
-            if (count < LARGE || count >= LARGE + PASSING) {
+            return count < LARGE + PASSING ? copy(count) : count;
+        }
+
+        /** Stores a number behind all others; it may be one that was given up, if no other took its place since. */
+        long copy(long count) {
+            int place = PASSING + storedCount;
+            if (count < LARGE || place >= MOST_LARGE) {
                 return count;
             }
-            int place = (PASSING + storedCount) * DIGITS;
-            if (place >= digits.length && digits.length < MOST_LARGE * DIGITS) {
-                digits = Arrays.copyOf(digits, digits.length * 2);
-            }
-            if (place < digits.length) {
-                System.arraycopy(digits, (int) (count - LARGE) * DIGITS, digits, place, DIGITS);
-                storedCount++;
-            }
-            return LARGE + PASSING + storedCount - 1;
+            makeRoom((place + 1) * width);
+            System.arraycopy(digits, (int) (count - LARGE) * width, digits, place * width, width);
+            storedCount++;
+            return LARGE + place;
         }
 
         long plus(long one, long other) {
@@ -1048,12 +1051,12 @@ public final class Reifytown {
             long sum = 0;
             for (int i = 0; i < width; i++) {
                 sum += digit(one, i) + digit(other, i);
-                digits[made + i] = sum & LARGE - 1;
+                digits[made * width + i] = sum & LARGE - 1;
                 sum >>= DIGIT;
             }
             if (sum > 0 && width < DIGITS) {
                 widen();
-                digits[made + width - 1] = sum;
+                digits[(made + 1) * width - 1] = sum;
             }
             return told(made);
         }
@@ -1067,60 +1070,27 @@ public final class Reifytown {
             long left = 0;
             for (int i = 0; i < width; i++) {
                 left += digit(one, i) - digit(other, i);
-                digits[made + i] = left & LARGE - 1;
+                digits[made * width + i] = left & LARGE - 1;
                 left >>= DIGIT;
             }
             return told(made);
-        }
-
-        /** What is left when one is divided by another, which is not 0. */
-        long rest(long one, long other) {
-            if (one < LARGE || isLess(one, other)) {
-                return one < LARGE && other < LARGE ? one % other : one;
-            }
-            int made = reserve();
-            Arrays.fill(digits, made, made + DIGITS, 0);
-            for (int i = bitsOf(one) - 1; i >= 0; i--) {
-                long next = hasBit(one, i) ? 1 : 0;
-                for (int k = 0; k < DIGITS; k++) {
-                    next += digits[made + k] * 2;
-                    digits[made + k] = next & LARGE - 1;
-                    next >>= DIGIT;
-                }
-                lessen(made, other);
-            }
-            return told(made);
-        }
-
-        /** Takes a number away from another one, if it is not larger. */
-        private void lessen(int made, long other) {
-            int i = DIGITS - 1;
-            while (i > 0 && digits[made + i] == digit(other, i)) {
-                i--;
-            }
-            boolean isLarger = digits[made + i] < digit(other, i);
-            long left = 0;
-            for (int k = 0; k < DIGITS && !isLarger; k++) {
-                left += digits[made + k] - digit(other, k);
-                digits[made + k] = left & LARGE - 1;
-                left >>= DIGIT;
-            }
         }
 
         boolean isLess(long one, long other) {
             if (one < LARGE || other < LARGE) {
                 return one < other;
             }
-            int place = (int) (one - LARGE) * DIGITS;
-            int otherPlace = (int) (other - LARGE) * DIGITS;
             int i = width - 1;
-            while (i > 0 && digits[place + i] == digits[otherPlace + i]) {
+            while (i > 0 && digit(one, i) == digit(other, i)) {
                 i--;
             }
-            return digits[place + i] < digits[otherPlace + i];
+            return digit(one, i) < digit(other, i);
         }
 
         boolean isEqual(long one, long other) {
+            if (one < LARGE || other < LARGE) {
+                return one == other;
+            }
             int same = 0;
             while (same < width && digit(one, same) == digit(other, same)) {
                 same++;
@@ -1128,20 +1098,16 @@ public final class Reifytown {
             return same == width;
         }
 
-        long least(long one, long other) {
-            return isLess(other, one) ? other : one;
-        }
-
-        boolean hasBit(long count, int bit) {
-            return (digit(count, bit / DIGIT) >> bit % DIGIT & 1) != 0;
-        }
-
-        int bitsOf(long count) {
-            int bits = count < LARGE ? DIGIT : DIGIT * width;
-            while (bits > 0 && !hasBit(count, bits - 1)) {
-                bits--;
+        /** The same for equal numbers, and mostly another one for others. */
+        long mixOf(long count) {
+            if (count < LARGE) {
+                return count;
             }
-            return bits;
+            long mixed = 0;
+            for (int i = 0; i < width; i++) {
+                mixed = mixed * MIXING + digit(count, i);
+            }
+            return mixed;
         }
 
         /** A number as an int, or the greatest int if it is larger. */
@@ -1151,50 +1117,88 @@ public final class Reifytown {
             }
             int number = 0;
             for (int i = 30; i >= 0; i--) {
-                number = number * 2 + (hasBit(count, i) ? 1 : 0);
+                number = number * 2 + bit(count, i);
             }
             return number;
+        }
+
+        /** A number as the float that is nearest to it. */
+        float inFloat(long count) {
+            int bits = bitsOf(count);
+            int low = Math.max(0, bits - TOP_BITS);
+            long top = 0;
+            for (int i = bits - 1; i >= low; i--) {
+                top = top * 2 + bit(count, i);
+            }
+            // What lies below counts as a half of the last bit, since it only tells apart what is in the middle.
+            int below = 0;
+            for (int i = 0; i < low; i++) {
+                below |= bit(count, i);
+            }
+            float number = (float) (top * 2 + below) / 2;
+            for (int i = 0; i < low; i++) {
+                number *= 2;
+            }
+            return number;
+        }
+
+        private int bit(long count, int place) {
+            return (int) (digit(count, place / DIGIT) >> place % DIGIT & 1);
+        }
+
+        private int bitsOf(long count) {
+            int bits = count < LARGE ? DIGIT : DIGIT * width;
+            while (bits > 0 && bit(count, bits - 1) == 0) {
+                bits--;
+            }
+            return bits;
         }
 
         private long digit(long count, int index) {
             if (count < LARGE) {
                 return index == 0 ? count : 0;
             }
-            return index >= width ? 0 : digits[(int) (count - LARGE) * DIGITS + index];
+            return index >= width ? 0 : digits[(int) (count - LARGE) * width + index];
         }
 
-        /** The place of the digits of a new passing result. */
+        /** The place of a new passing result. */
         private int reserve() {
-            if (digits.length == 0) {
-                digits = new long[FIRST_LARGE * DIGITS];
-            }
+            makeRoom((PASSING + storedCount) * width);
             if (passingCount < PASSING) {
                 passingCount++;
             }
-            return (passingCount - 1) * DIGITS;
+            return passingCount - 1;
+        }
+
+        private void makeRoom(int wanted) {
+            if (wanted > digits.length) {
+                digits = Arrays.copyOf(digits, Math.max(wanted, digits.length * 2));
+            }
         }
 
         /** Gives all numbers one more digit. */
         private void widen() {
-            for (int i = 0; i < passingCount; i++) {
-                digits[i * DIGITS + width] = 0;
+            int count = PASSING + storedCount;
+            int wider = width + 1;
+            makeRoom(count * wider);
+            for (int i = count - 1; i >= 0; i--) {
+                System.arraycopy(digits, i * width, digits, i * wider, width);
+                digits[i * wider + width] = 0;
             }
-            for (int i = PASSING; i < PASSING + storedCount; i++) {
-                digits[i * DIGITS + width] = 0;
-            }
-            width++;
+            width = wider;
         }
 
+        /** A new passing result, which is none if it is less than LARGE. */
         private long told(int made) {
             int i = width - 1;
-            while (i > 0 && digits[made + i] == 0) {
+            while (i > 0 && digits[made * width + i] == 0) {
                 i--;
             }
             if (i > 0) {
-                return LARGE + made / DIGITS;
+                return LARGE + made;
             }
-            passingCount = made / DIGITS;
-            return digits[made];
+            passingCount = made;
+            return digits[made * width];
         }
     }
 
@@ -1204,18 +1208,11 @@ public final class Reifytown {
      */
     private static final class Rows {
         private static final int FIRST_PARTS = 64;
-        // 'P' makes one part, which lies one deeper; 'M' makes at most two for each depth, and none lies deeper.
+        // 'P' and 'M' make one part that lies one deeper than the others.
         static final int DEEPEST_PART = MOST_STEPS;
-        private static final int MOST_PARTS = 1 << 19;
-        private static final int WAYS = 128;
-
-        // Signs are reckoned modulo two prime numbers, for the upper and the lower half of a long. With these bases
-        // no power is 1 below 2 to the power of 60.6, which is not near what rows have as their lengths.
-        private static final long HIGH_PRIME = 1783943243;
-        private static final long LOW_PRIME = 2042718023;
-        private static final long LOW_HALF = 0xFFFFFFFFL;
-        static final long BASE = 1627558490L << 32 | 1790043976L;
-        static final long ONE = 1L << 32 | 1L;
+        // 'P' makes one part, 'M' at most two for each depth.
+        private static final int MOST_PARTS = 1 << 20;
+        private static final long MIXING = 0x9E3779B97F4A7C15L;
 
         // What is known of a part: that its calls take no step, that its pieces were noted, or are to be.
         private static final int IDLE = 1;
@@ -1231,18 +1228,19 @@ public final class Reifytown {
         private int[] lefts = new int[FIRST_PARTS];
         private int[] rights = new int[FIRST_PARTS];
         private long[] lengths = new long[FIRST_PARTS];
-        private long[] signs = new long[FIRST_PARTS];
-        private long[] powers = new long[FIRST_PARTS];
         private byte[] marks = new byte[FIRST_PARTS];
         private int partCount = 0;
-        private int signedCount = 0;
+        // The parts that are made of two, by these two: the last one in each slot, and the one ahead of each.
+        private int[] slots = new int[FIRST_PARTS];
+        private int[] nexts = new int[FIRST_PARTS];
+        private final int[] kept = new int[DEEPEST_PART];
 
         void clear() {
             counts.clear();
             targetCount = 0;
             rowCount = 0;
             partCount = 0;
-            signedCount = 0;
+            Arrays.fill(slots, NONE);
         }
 
         // ---- delegates
@@ -1287,7 +1285,6 @@ public final class Reifytown {
         /** Changes a receiver, and so what its target is like. */
         void setReceiver(int target, long value) {
             receivers[target] = value;
-            signedCount = 0;
         }
 
         int wayOf(int target) {
@@ -1345,6 +1342,15 @@ public final class Reifytown {
             return part;
         }
 
+        /** Whether a part ends with all of another one, as one of the parts that it is made of. */
+        boolean hasAtEnd(int whole, int end) {
+            int part = whole;
+            for (int i = 0; i < DEEPEST_PART && part != end && lefts[part] >= 0; i++) {
+                part = rights[part];
+            }
+            return part == end;
+        }
+
         /** Asks for the pieces of a part; false if they were noted before. */
         boolean ask(int part) {
             if ((marks[part] & NOTED) != 0) {
@@ -1367,6 +1373,50 @@ public final class Reifytown {
             return targetOf(part);
         }
 
+        // ---- parts of two others
+
+        /** The part of two others, or the other one if one is NONE. */
+        private int join(int left, int right) {
+            if (left == NONE || right == NONE) {
+                return left == NONE ? right : left;
+            }
+            for (int i = slots[slotOf(left, right)]; i >= 0; i = nexts[i]) {
+                if (lefts[i] == left && rights[i] == right) {
+                    return i;
+                }
+            }
+            if (!reserve()) {
+                return left;
+            }
+            int mark = counts.mark();
+            long length = counts.store(counts.plus(lengths[left], lengths[right]));
+            counts.release(mark);
+            return add(left, right, length, marks[left] & marks[right] & IDLE);
+        }
+
+        private int slotOf(int left, int right) {
+            return (int) ((left * MIXING + right) * MIXING >>> 33) & slots.length - 1;
+        }
+
+        private int add(int left, int right, long length, int mark) {
+            int part = partCount;
+            partCount++;
+            lefts[part] = left;
+            rights[part] = right;
+            lengths[part] = length;
+            marks[part] = (byte) mark;
+            if (left >= 0) {
+                putIntoSlot(part);
+            }
+            return part;
+        }
+
+        private void putIntoSlot(int part) {
+            int slot = slotOf(lefts[part], rights[part]);
+            nexts[part] = slots[slot];
+            slots[slot] = part;
+        }
+
         private boolean reserve() {
             if (partCount < lefts.length) {
                 return true;
@@ -1378,260 +1428,25 @@ public final class Reifytown {
             lefts = Arrays.copyOf(lefts, wanted);
             rights = Arrays.copyOf(rights, wanted);
             lengths = Arrays.copyOf(lengths, wanted);
-            signs = Arrays.copyOf(signs, wanted);
-            powers = Arrays.copyOf(powers, wanted);
             marks = Arrays.copyOf(marks, wanted);
+            nexts = new int[wanted];
+            slots = new int[wanted];
+            Arrays.fill(slots, NONE);
+            for (int i = 0; i < partCount; i++) {
+                if (lefts[i] >= 0) {
+                    putIntoSlot(i);
+                }
+            }
             return true;
         }
 
-        /** A part of two others, or the other one if one is NONE. */
-        int join(int left, int right) {
-            if (left == NONE || right == NONE || !reserve()) {
-                return left == NONE ? right : left;
-            }
+        /** A part without so many targets that lie behind so many others; NONE if none is left. */
+        int without(int whole, long ahead, long count) {
             int mark = counts.mark();
-            long length = counts.store(counts.plus(lengths[left], lengths[right]));
+            int front = shorten(whole, counts.minus(lengths[whole], ahead), true);
+            int back = shorten(whole, counts.plus(ahead, count), false);
             counts.release(mark);
-            return add(left, right, length, marks[left] & marks[right] & IDLE);
-        }
-
-        private int add(int left, int right, long length, int mark) {
-            int part = partCount;
-            partCount++;
-            lefts[part] = left;
-            rights[part] = right;
-            lengths[part] = length;
-            marks[part] = (byte) mark;
-            return part;
-        }
-
-        // ---- signs: what rows that are alike have in common
-
-        void signAll() {
-            while (signedCount < partCount) {
-                int left = lefts[signedCount];
-                int right = rights[signedCount];
-                if (left == NONE) {
-                    long letter = receivers[right] * WAYS + ways[right] + 1;
-                    signs[signedCount] = letter % HIGH_PRIME << 32 | letter % LOW_PRIME;
-                    powers[signedCount] = BASE;
-                } else {
-                    signs[signedCount] = reckon(signs[left], powers[right], signs[right]);
-                    powers[signedCount] = reckon(powers[left], powers[right], 0);
-                }
-                signedCount++;
-            }
-        }
-
-        boolean isLike(int part, int other) {
-            return signs[part] == signs[other] && counts.isEqual(lengths[part], lengths[other]);
-        }
-
-        /** The sign of a row with a sign and a part behind it. */
-        long signBehind(long sign, int part) {
-            return reckon(sign, powers[part], signs[part]);
-        }
-
-        /** The sign of the first targets of a part. */
-        long signOfFirst(int whole, long count) {
-            int mark = counts.mark();
-            int part = whole;
-            long missing = count;
-            long sign = 0;
-            for (int i = 0; i < DEEPEST_PART && missing > 0 && counts.isLess(missing, lengths[part]); i++) {
-                int left = lefts[part];
-                if (counts.isLess(missing, lengths[left])) {
-                    part = left;
-                } else {
-                    sign = reckon(sign, powers[left], signs[left]);
-                    missing = counts.keep(counts.minus(missing, lengths[left]), mark);
-                    part = rights[part];
-                }
-            }
-            counts.release(mark);
-            return missing > 0 ? reckon(sign, powers[part], signs[part]) : sign;
-        }
-
-        /** A product and a sum of signs. */
-        static long reckon(long one, long factor, long added) {
-            long high = ((one >>> 32) * (factor >>> 32) + (added >>> 32)) % HIGH_PRIME;
-            long low = ((one & LOW_HALF) * (factor & LOW_HALF) + (added & LOW_HALF)) % LOW_PRIME;
-            return high << 32 | low;
-        }
-    }
-
-    /**
-     * Looks for the last place of a pattern in a row, and takes it out, however long both are. For each part, it
-     * is told where the pattern lies last in it, and with which first targets of the pattern, but not all, the part
-     * ends. How many these are is kept as ladders, with the same step between the numbers: a row that ends with two
-     * of the beginnings of the pattern repeats itself at the step between them, as far as the longer one reaches.
-     */
-    private static final class Search {
-        private static final int FIRST_SIZE = 64;
-        private static final int MOST_LADDERS = 1 << 20;
-
-        // The rungs of a short ladder, at most so many, are tried one by one.
-        private static final int SHORT = 4;
-        private static final int FEW = (1 << SHORT) + 1;
-
-        // Where the pattern lies in a part: all of it, or across its two parts, with so many targets in the left one.
-        private static final long WHOLE = 0;
-        private static final long NOWHERE = -1;
-        private static final long IN_LEFT = -2;
-        private static final long IN_RIGHT = -3;
-        private static final long WANTED = -4;
-        private static final long UNWANTED = -5;
-
-        private final Rows rows;
-        private final Counts counts;
-        private final long[] squares = new long[Counts.BITS];
-        private int pattern = NONE;
-        private long length = 0;
-        private long[] places = new long[FIRST_SIZE];
-        private int[] starts = new int[FIRST_SIZE];
-        private int[] ends = new int[FIRST_SIZE];
-        // A ladder goes from its first number to its top; its step is 0 if they are the same.
-        private long[] firsts = new long[FIRST_SIZE];
-        private long[] steps = new long[FIRST_SIZE];
-        private long[] tops = new long[FIRST_SIZE];
-        private int ladderCount = 0;
-        // How far the pattern repeats itself at the steps that were asked for.
-        private long[] knownSteps = new long[FIRST_SIZE];
-        private long[] reaches = new long[FIRST_SIZE];
-        private int knownCount = 0;
-        private boolean isShort = false;
-        private long reach = 0;
-        private long repeated = 0;
-        private final int[] above = new int[Rows.DEEPEST_PART];
-        private final int[] kept = new int[Rows.DEEPEST_PART];
-
-        Search(Rows rows) {
-            this.rows = rows;
-            counts = rows.counts;
-            squares[0] = Rows.BASE;
-            for (int i = 1; i < squares.length; i++) {
-                squares[i] = Rows.reckon(squares[i - 1], squares[i - 1], 0);
-            }
-        }
-
-        /** The one delegate without the last part of its row that is like the row of the other. */
-        long without(long one, long other) {
-            int row = rows.rootOf(one);
-            int less = rows.rootOf(other);
-            if (row == NONE || less == NONE || counts.isLess(rows.lengthOf(row), rows.lengthOf(less))) {
-                return one;
-            }
-            int mark = counts.mark();
-            int stored = counts.stored();
-            rows.signAll();
-            begin(row, less);
-            for (int i = 0; i <= row; i++) {
-                if (places[i] == WANTED) {
-                    int left = rows.leftOf(i);
-                    int right = rows.rightOf(i);
-                    climb(i, left, right);
-                    long across = 0;
-                    for (int k = left < 0 ? 0 : starts[left]; left >= 0 && k < ends[left]; k++) {
-                        measure(k, right);
-                        climbOn(i, k, right);
-                        across = across > 0 ? across : counts.store(across(k, right));
-                        counts.release(mark);
-                    }
-                    settle(i, left, right, across);
-                }
-            }
-            boolean isFound = places[row] != NOWHERE;
-            long made = isFound ? rows.row(cut(row, stored)) : one;
-            counts.release(mark);
-            if (!isFound) {
-                counts.drop(stored);
-            }
-            return made;
-        }
-
-        /** Begins to look for a pattern in a row: all parts of this are wanted. */
-        private void begin(int row, int sought) {
-            pattern = sought;
-            length = rows.lengthOf(sought);
-            ladderCount = 0;
-            knownCount = 0;
-            if (places.length <= row) {
-                places = new long[row * 2];
-                starts = new int[row * 2];
-                ends = new int[row * 2];
-            }
-            Arrays.fill(places, 0, row + 1, UNWANTED);
-            places[row] = WANTED;
-            for (int i = row; i >= 0; i--) {
-                if (places[i] == WANTED && rows.leftOf(i) >= 0) {
-                    places[rows.leftOf(i)] = WANTED;
-                    places[rows.rightOf(i)] = WANTED;
-                }
-            }
-        }
-
-        // ---- where the pattern lies
-
-        /** Tells where the pattern lies last in a part, when this is known of its two parts. */
-        private void settle(int part, int left, int right, long across) {
-            places[part] = NOWHERE;
-            if (rows.isLike(part, pattern)) {
-                places[part] = WHOLE;
-            } else if (left >= 0 && places[right] != NOWHERE) {
-                places[part] = IN_RIGHT;
-            } else if (left >= 0) {
-                places[part] = across > 0 ? across : places[left] == NOWHERE ? NOWHERE : IN_LEFT;
-            }
-        }
-
-        /** The least rung of a measured ladder behind which the right part begins with all else, or 0. */
-        private long across(int ladder, int right) {
-            long rung = firsts[ladder];
-            for (int i = 0; isShort && i < FEW; i++) {
-                if (rung == 0 || isAcross(rung, right)) {
-                    return rung;
-                }
-                rung = rungBehind(ladder, rung);
-            }
-            if (isShort) {
-                return 0;
-            }
-            if (!counts.isLess(reach, length)) {
-                return rungFrom(ladder, counts.minus(length, repeated));
-            }
-            long only = onlyRung();
-            return isOn(ladder, only) && isAcross(only, right) ? only : 0;
-        }
-
-        private boolean isAcross(long rung, int right) {
-            long behind = counts.minus(length, rung);
-            return !counts.isLess(rows.lengthOf(right), behind) && areAlike(pattern, rung, right, behind);
-        }
-
-        // ---- what is left of a row when what was found in it is taken out
-
-        /** What is left of a row; all that was stored for the search is given up first. */
-        private int cut(int row, int stored) {
-            int depth = 0;
-            int at = row;
-            while (depth < above.length && (places[at] == IN_LEFT || places[at] == IN_RIGHT)) {
-                above[depth] = at;
-                depth++;
-                at = places[at] == IN_LEFT ? rows.leftOf(at) : rows.rightOf(at);
-            }
-            long across = counts.plus(Math.max(0, places[at]), 0);
-            counts.drop(stored);
-            int rest = NONE;
-            if (across > 0) {
-                int front = shorten(rows.leftOf(at), across, true);
-                rest = rows.join(front, shorten(rows.rightOf(at), counts.minus(length, across), false));
-            }
-            for (int i = depth - 1; i >= 0; i--) {
-                int part = above[i];
-                boolean isLeft = places[part] == IN_LEFT;
-                rest = isLeft ? rows.join(rest, rows.rightOf(part)) : rows.join(rows.leftOf(part), rest);
-            }
-            return rest;
+            return join(front, back);
         }
 
         /** A part without so many of its targets, the last or the first ones. */
@@ -1640,225 +1455,751 @@ public final class Reifytown {
             int depth = 0;
             int part = whole;
             long less = count;
-            for (int i = 0; i < kept.length && less > 0 && counts.isLess(less, rows.lengthOf(part)); i++) {
-                int shortened = isEnd ? rows.rightOf(part) : rows.leftOf(part);
-                int other = isEnd ? rows.leftOf(part) : rows.rightOf(part);
-                if (counts.isLess(less, rows.lengthOf(shortened))) {
+            for (int i = 0; i < kept.length && less > 0 && counts.isLess(less, lengths[part]); i++) {
+                int shortened = isEnd ? rights[part] : lefts[part];
+                int other = isEnd ? lefts[part] : rights[part];
+                if (counts.isLess(less, lengths[shortened])) {
                     kept[depth] = other;
                     depth++;
                     part = shortened;
                 } else {
-                    less = counts.keep(counts.minus(less, rows.lengthOf(shortened)), mark);
+                    less = counts.keep(counts.minus(less, lengths[shortened]), mark);
                     part = other;
                 }
             }
+            counts.release(mark);
             int rest = less > 0 ? NONE : part;
             for (int i = depth - 1; i >= 0; i--) {
-                rest = isEnd ? rows.join(kept[i], rest) : rows.join(rest, kept[i]);
+                rest = isEnd ? join(kept[i], rest) : join(rest, kept[i]);
             }
             return rest;
         }
+    }
 
-        // ---- ladders
+    /**
+     * The letters that rows are written with while one is looked for in another one. A letter stands for one target
+     * or more; letters that are made alike are the same.
+     */
+    private static final class Letters {
+        // What a letter is made of: a target; the one letter that it is named by, alone, in a run of nothing else, as
+        // what is left of such a run, or ahead of a run; or this letter and another one behind it.
+        static final int TARGET = 0;
+        static final int ALONE = 1;
+        static final int RUN = 2;
+        static final int REST = 3;
+        static final int AHEAD = 4;
+        static final int PAIR = 5;
+        private static final int MAKES = 6;
 
-        /** Begins the ladders of a part with those of its right part. */
-        private void climb(int part, int left, int right) {
-            starts[part] = ladderCount;
-            ends[part] = ladderCount;
-            if (length == 1) {
-                return;
-            }
-            if (left == NONE) {
-                if (areAlike(pattern, 0, part, 1)) {
-                    add(part, 1, 0, 1);
-                }
-                return;
-            }
-            if (!counts.isLess(rows.lengthOf(right), length)) {
-                starts[part] = starts[right];
-                ends[part] = ends[right];
-                return;
-            }
-            for (int i = starts[right]; i < ends[right]; i++) {
-                add(part, firsts[i], steps[i], tops[i]);
-            }
+        // A left letter may be joined with a right one behind it.
+        static final byte NEITHER = 0;
+        static final byte LEFT = 1;
+        static final byte RIGHT = 2;
+
+        private static final int FIRST_LETTERS = 64;
+        private static final int FIRST_LINKS = 256;
+        private static final long MIXING = 0x9E3779B97F4A7C15L;
+
+        private final Counts counts;
+        private int[] makes = new int[FIRST_LETTERS];
+        private long[] keys = new long[FIRST_LETTERS];
+        private long[] lengths = new long[FIRST_LETTERS];
+        private byte[] sides = new byte[FIRST_LETTERS];
+        private int count = 0;
+        // The last letter in each slot, and the one ahead of each.
+        private int[] slots = new int[FIRST_LETTERS];
+        private int[] nexts = new int[FIRST_LETTERS];
+        // Which letters stand side by side: what each letter has behind it, and, as ~, ahead of it.
+        private int[] firstLinks = new int[FIRST_LETTERS];
+        private int[] nextLinks = new int[FIRST_LINKS];
+        private int[] others = new int[FIRST_LINKS];
+        private double[] weights = new double[FIRST_LINKS];
+        private int linkCount = 0;
+
+        Letters(Counts counts) {
+            this.counts = counts;
         }
 
-        /** Adds the rungs of a measured ladder of the left part with which the pattern goes on as the right part. */
-        private void climbOn(int part, int ladder, int right) {
-            long more = rows.lengthOf(right);
-            if (!counts.isLess(more, length)) {
-                return;
-            }
-            if (isShort) {
-                long rung = firsts[ladder];
-                for (int i = 0; i < FEW && rung > 0; i++) {
-                    climbFrom(part, rung, right);
-                    rung = rungBehind(ladder, rung);
-                }
-            } else if (!counts.isLess(repeated, more)) {
-                climbAll(part, ladder, more);
-            } else if (isOn(ladder, onlyRung())) {
-                climbFrom(part, onlyRung(), right);
-            }
+        void clear() {
+            count = 0;
+            Arrays.fill(slots, NONE);
         }
 
-        private void climbFrom(int part, long rung, int right) {
-            long more = rows.lengthOf(right);
-            long next = counts.plus(rung, more);
-            if (counts.isLess(next, length) && areAlike(pattern, rung, right, more)) {
-                add(part, next, 0, next);
-            }
-        }
+        // ---- names
 
-        /** Adds the rungs of a ladder, that much higher, up to where the pattern ends or repeats itself no more. */
-        private void climbAll(int part, int ladder, long more) {
-            long first = counts.plus(firsts[ladder], more);
-            long most = counts.least(reach, counts.minus(length, 1));
-            if (!counts.isLess(most, first)) {
-                long top = counts.least(counts.plus(tops[ladder], more), most);
-                top = counts.minus(top, counts.rest(counts.minus(top, first), steps[ladder]));
-                add(part, first, counts.isLess(first, top) ? steps[ladder] : 0, top);
-            }
-        }
-
-        /** The rung with which the pattern ceases to repeat itself as the right part does, or 0. */
-        private long onlyRung() {
-            return counts.isLess(reach, repeated) ? 0 : counts.minus(reach, repeated);
-        }
-
-        /** The next higher rung of a ladder, or 0. */
-        private long rungBehind(int ladder, long rung) {
-            return counts.isLess(rung, tops[ladder]) ? counts.plus(rung, steps[ladder]) : 0;
-        }
-
-        private boolean isOn(int ladder, long number) {
-            if (counts.isLess(number, firsts[ladder]) || counts.isLess(tops[ladder], number)) {
-                return false;
-            }
-            return counts.rest(counts.minus(number, firsts[ladder]), steps[ladder]) == 0;
-        }
-
-        /** The least rung of a ladder that is not less than a number, or 0. */
-        private long rungFrom(int ladder, long number) {
-            long first = firsts[ladder];
-            if (!counts.isLess(first, number)) {
-                return first;
-            }
-            long over = counts.rest(counts.minus(number, first), steps[ladder]);
-            long rung = over == 0 ? number : counts.plus(number, counts.minus(steps[ladder], over));
-            return counts.isLess(tops[ladder], rung) ? 0 : rung;
-        }
-
-        /** Adds a ladder behind all others of a part, or to the last of them, if the steps are the same. */
-        private void add(int part, long first, long step, long top) {
-            int last = ladderCount - 1;
-            if (ends[part] > starts[part]) {
-                long gap = counts.minus(first, tops[last]);
-                boolean isLast = steps[last] == 0 || counts.isEqual(steps[last], gap);
-                if (isLast && (step == 0 || counts.isEqual(step, gap))) {
-                    steps[last] = counts.store(gap);
-                    tops[last] = counts.store(top);
-                    return;
-                }
-            }
-            if (ladderCount >= MOST_LADDERS) {
-                return;
-            }
-            if (ladderCount >= firsts.length) {
-                firsts = Arrays.copyOf(firsts, ladderCount * 2);
-                steps = Arrays.copyOf(steps, ladderCount * 2);
-                tops = Arrays.copyOf(tops, ladderCount * 2);
-            }
-            firsts[ladderCount] = counts.store(first);
-            steps[ladderCount] = counts.store(step);
-            tops[ladderCount] = counts.store(top);
-            ladderCount++;
-            ends[part]++;
-        }
-
-        // ---- what goes on alike
-
-        /** Finds how far the pattern and the right part repeat themselves at the step of a ladder, if it is long. */
-        private void measure(int ladder, int right) {
-            long step = steps[ladder];
-            long few = step;
-            for (int i = 0; i < SHORT; i++) {
-                few = counts.plus(few, few);
-            }
-            isShort = !counts.isLess(counts.plus(firsts[ladder], few), tops[ladder]);
-            if (isShort) {
-                return;
-            }
-            int known = placeOfStep(step);
-            if (known == knownCount) {
-                knownSteps[known] = step;
-                long common = common(pattern, step, pattern, counts.minus(length, step));
-                reaches[known] = counts.store(counts.plus(step, common));
-                knownCount++;
-            }
-            reach = reaches[known];
-            long most = counts.least(rows.lengthOf(right), length);
-            long once = counts.least(step, most);
-            repeated = common(pattern, counts.minus(tops[ladder], step), right, once);
-            if (!counts.isLess(repeated, once) && counts.isLess(step, most)) {
-                repeated = counts.plus(step, common(right, step, right, counts.minus(most, step)));
-            }
-        }
-
-        /** Where a step is among those that were asked for, or where it will be. */
-        private int placeOfStep(long step) {
-            for (int i = knownCount - 1; i >= 0; i--) {
-                if (counts.isEqual(knownSteps[i], step)) {
+        /** The letter that is made so, or NONE. */
+        int find(int base, int make, long key) {
+            int made = base * MAKES + make;
+            for (int i = slots[slotOf(made, key)]; i >= 0; i = nexts[i]) {
+                if (makes[i] == made && (make == RUN ? counts.isEqual(keys[i], key) : keys[i] == key)) {
                     return i;
                 }
             }
-            if (knownCount >= knownSteps.length) {
-                knownSteps = Arrays.copyOf(knownSteps, knownCount * 2);
-                reaches = Arrays.copyOf(reaches, knownCount * 2);
-            }
-            return knownCount;
+            return NONE;
         }
 
-        /** How many targets, at most so many, are alike from a place in one part on, and in another one. */
-        private long common(int one, long place, int other, long most) {
-            if (areAlike(one, place, other, most)) {
-                return most;
+        /** The letter that is made so, which is a new one with this length if there is none. */
+        int name(int base, int make, long key, long length) {
+            int found = find(base, make, key);
+            if (found != NONE) {
+                return found;
             }
-            int mark = counts.mark();
-            long alike = 0;
-            int part = other;
-            long sign = rows.signOfFirst(one, place);
-            for (int i = 0; i <= Rows.DEEPEST_PART && part >= 0; i++) {
-                int left = rows.leftOf(part);
-                int first = left < 0 ? part : left;
-                long next = counts.plus(alike, rows.lengthOf(first));
-                boolean isLong = counts.isLess(most, next);
-                long end = isLong ? 0 : rows.signOfFirst(one, counts.plus(place, next));
-                boolean isAlike = !isLong && end == rows.signBehind(sign, first);
-                if (isAlike) {
-                    sign = end;
-                    part = left < 0 ? NONE : rows.rightOf(part);
-                } else {
-                    part = left;
-                }
-                alike = counts.keep(isAlike ? next : alike, mark);
+            if (count >= makes.length) {
+                grow();
             }
-            return alike;
+            lengths[count] = counts.copy(length);
+            makes[count] = base * MAKES + make;
+            keys[count] = make == RUN ? lengths[count] : key;
+            sides[count] = NEITHER;
+            putIntoSlot(count);
+            count++;
+            return count - 1;
         }
 
-        /** Whether so many targets are alike from a place in one part on, and in another one. */
-        private boolean areAlike(int one, long place, int other, long count) {
-            long power = Rows.ONE;
-            for (int i = counts.bitsOf(count) - 1; i >= 0; i--) {
-                if (counts.hasBit(count, i)) {
-                    power = Rows.reckon(power, squares[i], 0);
+        private int slotOf(int made, long key) {
+            long mixed = made % MAKES == RUN ? counts.mixOf(key) : key;
+            return (int) ((mixed * MIXING + made) * MIXING >>> 33) & slots.length - 1;
+        }
+
+        private void putIntoSlot(int letter) {
+            int slot = slotOf(makes[letter], keys[letter]);
+            nexts[letter] = slots[slot];
+            slots[slot] = letter;
+        }
+
+        private void grow() {
+            int wanted = count * 2;
+            makes = Arrays.copyOf(makes, wanted);
+            keys = Arrays.copyOf(keys, wanted);
+            lengths = Arrays.copyOf(lengths, wanted);
+            sides = Arrays.copyOf(sides, wanted);
+            nexts = new int[wanted];
+            firstLinks = new int[wanted];
+            slots = new int[wanted];
+            Arrays.fill(slots, NONE);
+            for (int i = 0; i < count; i++) {
+                putIntoSlot(i);
+            }
+        }
+
+        /** The letter that a letter is named by. */
+        int baseOf(int letter) {
+            return makes[letter] / MAKES;
+        }
+
+        /** How many targets a letter stands for. */
+        long lengthOf(int letter) {
+            return lengths[letter];
+        }
+
+        /** Stores the lengths anew, one behind the other. */
+        void storeLengths() {
+            for (int i = 0; i < count; i++) {
+                lengths[i] = counts.copy(lengths[i]);
+            }
+        }
+
+        // ---- runs
+
+        /** Whether a letter stands for a run of the same as another one, and for not less. */
+        boolean isRunAs(int letter, int other) {
+            return baseOf(letter) == baseOf(other) && !counts.isLess(lengths[letter], lengths[other]);
+        }
+
+        /** Whether some letter stands for a longer run of the same as another one. */
+        boolean hasLongerRun(int other) {
+            for (int i = 0; i < count; i++) {
+                if (i != other && isRunAs(i, other)) {
+                    return true;
                 }
             }
-            int mark = counts.mark();
-            long end = rows.signOfFirst(one, counts.plus(place, count));
+            return false;
+        }
+
+        /** Makes the runs of what one letter has left letters, and those not shorter than another one right ones. */
+        void setSides(int left, int right) {
+            for (int i = 0; i < count; i++) {
+                boolean isLeft = baseOf(i) == baseOf(left);
+                sides[i] = isLeft ? LEFT : isRunAs(i, right) ? RIGHT : NEITHER;
+            }
+        }
+
+        // ---- sides
+
+        byte sideOf(int letter) {
+            return sides[letter];
+        }
+
+        void setSide(int letter, byte side) {
+            sides[letter] = side;
+        }
+
+        void forgetSides() {
+            Arrays.fill(sides, 0, count, NEITHER);
+            Arrays.fill(firstLinks, 0, count, NONE);
+            linkCount = 0;
+        }
+
+        /** Tells that a letter stands ahead of another one, so often. */
+        void addPair(int letter, int behind, double weight) {
+            if (linkCount + 2 > others.length) {
+                nextLinks = Arrays.copyOf(nextLinks, linkCount * 2);
+                others = Arrays.copyOf(others, linkCount * 2);
+                weights = Arrays.copyOf(weights, linkCount * 2);
+            }
+            link(letter, behind, weight);
+            link(behind, ~letter, weight);
+        }
+
+        private void link(int letter, int other, double weight) {
+            others[linkCount] = other;
+            weights[linkCount] = weight;
+            nextLinks[linkCount] = firstLinks[letter];
+            firstLinks[letter] = linkCount;
+            linkCount++;
+        }
+
+        /**
+         * Makes one letter a left one, another one a right one, and each other one what lets more of the pairs be
+         * joined, if those that have no side yet get one by chance: so at least a quarter of all are.
+         */
+        void chooseSides(int left, int right) {
+            sides[left] = LEFT;
+            sides[right] = RIGHT;
+            for (int i = 0; i < count; i++) {
+                if (sides[i] == NEITHER) {
+                    sides[i] = leaningOf(i) < 0 ? RIGHT : LEFT;
+                }
+            }
+        }
+
+        private double leaningOf(int letter) {
+            double leaning = 0;
+            for (int i = firstLinks[letter]; i >= 0; i = nextLinks[i]) {
+                boolean isBehind = others[i] >= 0;
+                byte side = sides[isBehind ? others[i] : ~others[i]];
+                double weight = side == NEITHER ? weights[i] : side == (isBehind ? RIGHT : LEFT) ? weights[i] * 2 : 0;
+                leaning = isBehind ? leaning + weight : leaning - weight;
+            }
+            return leaning;
+        }
+    }
+
+    /**
+     * Looks for the last place of a pattern in a row, however long both are, and takes it out. Both are written as
+     * rules, which are what parts are: letters and rules with lower numbers. In rounds, all rules are written anew,
+     * with one letter in place of a run or of a pair, so that targets that are alike get letters that are alike, until
+     * one letter stands for the pattern. Where that lies in the row, the pattern does.
+     */
+    private static final class Search {
+        private static final int FIRST_RULES = 64;
+        // Where no items are, parts wait that are to be written.
+        private static final int FIRST_ITEMS = 2 * Rows.DEEPEST_PART;
+        // Two rounds make the pattern shorter by a quarter, so that far fewer are enough.
+        private static final int MOST_ROUNDS = 1000000;
+        private static final int MOST_WAITING = 1 << 24;
+        private static final long NOWHERE = -1;
+
+        // What is known of a part: nothing, or that it is written out where it stands.
+        private static final int UNUSED = 0;
+        private static final int WRITTEN_OUT = 1 << 31;
+
+        // So little that all that the row has counts less than a letter of the pattern.
+        private static final double NEARLY_NOTHING = 1e-300;
+
+        private final Rows rows;
+        private final Counts counts;
+        private Letters letters;
+        private Letters newLetters;
+        // An item is a letter, or ~ the number of a rule. The last two rules are the row and the pattern.
+        private int ruleCount = 0;
+        private int[] starts = new int[FIRST_RULES];
+        private int[] items = new int[FIRST_ITEMS];
+        private int[] newStarts = new int[FIRST_RULES];
+        private int[] newItems = new int[FIRST_ITEMS];
+        private int written = 0;
+        // The letters that a rule begins and ends with; while it is written, those that are left to where it stands.
+        private int[] ends = new int[2 * FIRST_RULES];
+        private long[] endRuns = new long[2 * FIRST_RULES];
+        private double[] weights = new double[FIRST_RULES];
+        private int[] codes = new int[FIRST_RULES];
+        // The letter that waits for what comes behind it.
+        private int held = NONE;
+        private long heldRun = 0;
+        // The letters of the pattern that are fitted to the row.
+        private int first = NONE;
+        private int last = NONE;
+        private int mark = 0;
+        private int stored = 0;
+
+        Search(Rows rows) {
+            this.rows = rows;
+            counts = rows.counts;
+            letters = new Letters(counts);
+            newLetters = new Letters(counts);
+        }
+
+        /** What 'M' makes of two delegates: the first one, if it has no row of targets like those of the other one. */
+        long without(long one, long other) {
+            int row = rows.rootOf(one);
+            int less = rows.rootOf(other);
+            if (row == NONE || less == NONE || counts.isLess(rows.lengthOf(row), rows.lengthOf(less))) {
+                return one;
+            }
+            mark = counts.mark();
+            stored = counts.stored();
+            long ahead = NOWHERE;
+            if (rows.hasAtEnd(row, less)) {
+                ahead = counts.minus(rows.lengthOf(row), rows.lengthOf(less));
+            } else {
+                begin(row, less);
+                ahead = lastPlace();
+            }
+            counts.drop(stored);
+            long made = ahead == NOWHERE ? one : rows.row(rows.without(row, ahead, rows.lengthOf(less)));
             counts.release(mark);
-            return end == Rows.reckon(rows.signOfFirst(one, place), power, rows.signOfFirst(other, count));
+            return made;
+        }
+
+        /** How many targets of the row lie ahead of the last place of the pattern, or NOWHERE. */
+        private long lastPlace() {
+            for (int round = 0; round < MOST_ROUNDS && hasAllLetters(); round++) {
+                writeRuns();
+                if (starts[ruleCount] - starts[ruleCount - 1] == 1) {
+                    return placeOfRun();
+                }
+                fitEnds();
+                chooseSides(round % 2 == 0);
+                writeAnew();
+            }
+            return NOWHERE;
+        }
+
+        // ---- the first rules
+
+        private void begin(int row, int pattern) {
+            int top = Math.max(row, pattern);
+            if (codes.length <= top) {
+                codes = new int[top * 2];
+            }
+            makeRuleRoom(countUses(row, pattern) + 2);
+            newLetters.clear();
+            ruleCount = 0;
+            written = 0;
+            for (int i = 0; i <= top; i++) {
+                if (codes[i] != UNUSED) {
+                    codes[i] = codeOf(i);
+                }
+            }
+            items[0] = row;
+            writeRule(1);
+            items[0] = pattern;
+            writeRule(1);
+            closePass();
+        }
+
+        /** Counts how often each part is used, and how many are made of two and used more than once. */
+        private int countUses(int row, int pattern) {
+            int top = Math.max(row, pattern);
+            int count = 0;
+            Arrays.fill(codes, 0, top + 1, UNUSED);
+            codes[row]++;
+            codes[pattern]++;
+            for (int i = top; i >= 0; i--) {
+                if (codes[i] != UNUSED && rows.leftOf(i) >= 0) {
+                    codes[rows.leftOf(i)]++;
+                    codes[rows.rightOf(i)]++;
+                    count += codes[i] > 1 ? 1 : 0;
+                }
+            }
+            return count;
+        }
+
+        /** What is written for a part: its letter, or the rule that is written for it if it is used more than once. */
+        private int codeOf(int part) {
+            int target = rows.targetOf(part);
+            if (target >= 0) {
+                return newLetters.name(rows.wayOf(target), Letters.TARGET, rows.receiverOf(target), 1);
+            }
+            if (codes[part] == 1) {
+                return WRITTEN_OUT;
+            }
+            items[0] = rows.rightOf(part);
+            items[1] = rows.leftOf(part);
+            writeRule(2);
+            return ~(ruleCount - 1);
+        }
+
+        /** Writes a rule of so many parts that wait, the last one first. */
+        private void writeRule(int waitingCount) {
+            newStarts[ruleCount] = written;
+            ruleCount++;
+            int waiting = waitingCount;
+            for (int turn = 0; turn < MOST_WAITING && waiting > 0; turn++) {
+                waiting--;
+                int part = items[waiting];
+                if (codes[part] == WRITTEN_OUT && waiting + 2 <= items.length) {
+                    items[waiting] = rows.rightOf(part);
+                    items[waiting + 1] = rows.leftOf(part);
+                    waiting += 2;
+                } else {
+                    write(codes[part]);
+                }
+            }
+        }
+
+        private void makeRuleRoom(int wanted) {
+            if (starts.length <= wanted) {
+                int size = wanted * 2;
+                starts = new int[size];
+                newStarts = new int[size];
+                ends = new int[2 * size];
+                endRuns = new long[2 * size];
+                weights = new double[size];
+            }
+        }
+
+        // ---- rules that are written anew
+
+        private void openPass() {
+            newLetters.clear();
+            written = 0;
+            held = NONE;
+            Arrays.fill(ends, 0, 2 * ruleCount, NONE);
+        }
+
+        private void closePass() {
+            newStarts[ruleCount] = written;
+            int[] oldStarts = starts;
+            starts = newStarts;
+            newStarts = oldStarts;
+            int[] oldItems = items;
+            items = newItems;
+            newItems = oldItems;
+            Letters oldLetters = letters;
+            letters = newLetters;
+            newLetters = oldLetters;
+            counts.drop(stored);
+            letters.storeLengths();
+        }
+
+        private void write(int item) {
+            if (written >= newItems.length) {
+                newItems = Arrays.copyOf(newItems, written * 2);
+            }
+            newItems[written] = item;
+            written++;
+        }
+
+        /** Whether a rule stands in others, to which it can leave its ends. */
+        private boolean isPart(int rule) {
+            return rule < ruleCount - 2;
+        }
+
+        /** Whether anything is left of a rule that was written, but for its ends. */
+        private boolean hasItems(int rule) {
+            return newStarts[rule] < newStarts[rule + 1];
+        }
+
+        // ---- runs
+
+        /** Writes one letter in place of each run of a letter. */
+        private void writeRuns() {
+            openPass();
+            for (int rule = 0; rule < ruleCount; rule++) {
+                newStarts[rule] = written;
+                for (int i = starts[rule]; i < starts[rule + 1]; i++) {
+                    if (items[i] >= 0) {
+                        addRun(rule, items[i], letters.lengthOf(items[i]));
+                    } else {
+                        addRunsOf(rule, ~items[i]);
+                    }
+                }
+                endRun(rule, true);
+            }
+            closePass();
+        }
+
+        private void addRunsOf(int rule, int part) {
+            addRun(rule, ends[2 * part], endRuns[2 * part]);
+            if (hasItems(part)) {
+                endRun(rule, false);
+                write(~part);
+            }
+            if (ends[2 * part + 1] != NONE) {
+                addRun(rule, ends[2 * part + 1], endRuns[2 * part + 1]);
+            }
+        }
+
+        private void addRun(int rule, int letter, long run) {
+            if (letter == held) {
+                heldRun = counts.keep(counts.plus(heldRun, run), mark);
+            } else {
+                endRun(rule, false);
+                held = letter;
+                heldRun = run;
+            }
+        }
+
+        /** Writes the run that is held, or leaves it to where the rule stands, if it may go on there. */
+        private void endRun(int rule, boolean isLast) {
+            boolean isFirst = ends[2 * rule] == NONE;
+            if (held == NONE) {
+                return;
+            }
+            if (isPart(rule) && (isFirst || isLast)) {
+                int end = isFirst ? 2 * rule : 2 * rule + 1;
+                ends[end] = held;
+                endRuns[end] = counts.store(heldRun);
+            } else if (heldRun == letters.lengthOf(held)) {
+                writeAlone(held);
+            } else {
+                write(newLetters.name(held, Letters.RUN, heldRun, heldRun));
+            }
+            held = NONE;
+            counts.release(mark);
+        }
+
+        // ---- pairs
+
+        /** Writes one letter in place of each left letter and right letter, or fits the ends of the pattern. */
+        private void writeAnew() {
+            openPass();
+            for (int rule = 0; rule < ruleCount; rule++) {
+                newStarts[rule] = written;
+                for (int i = starts[rule]; i < starts[rule + 1]; i++) {
+                    if (items[i] >= 0) {
+                        addLetter(rule, items[i]);
+                    } else {
+                        addLettersOf(rule, ~items[i]);
+                    }
+                }
+                endRule(rule);
+            }
+            closePass();
+        }
+
+        private void addLettersOf(int rule, int part) {
+            if (ends[2 * part] != NONE) {
+                addLetter(rule, ends[2 * part]);
+            }
+            if (hasItems(part)) {
+                writeHeld();
+                write(~part);
+            }
+            if (ends[2 * part + 1] != NONE) {
+                addLetter(rule, ends[2 * part + 1]);
+            }
+        }
+
+        private void addLetter(int rule, int letter) {
+            boolean isRight = letters.sideOf(letter) == Letters.RIGHT;
+            boolean isFirst = held == NONE && ends[2 * rule] == NONE && newStarts[rule] == written;
+            if (isRight && isFirst && isPart(rule)) {
+                ends[2 * rule] = letter;
+            } else if (isRight && held != NONE && letters.sideOf(held) == Letters.LEFT) {
+                joinHeld(letter);
+            } else {
+                writeHeld();
+                held = letter;
+            }
+        }
+
+        private void endRule(int rule) {
+            if (held != NONE && isPart(rule) && letters.sideOf(held) == Letters.LEFT) {
+                ends[2 * rule + 1] = held;
+                held = NONE;
+            } else if (isLeftOut(rule)) {
+                held = NONE;
+            } else {
+                writeHeld();
+            }
+        }
+
+        private void joinHeld(int letter) {
+            if (first != NONE) {
+                write(newLetters.name(held, Letters.AHEAD, 0, letters.lengthOf(held)));
+                held = letter;
+                return;
+            }
+            int pair = newLetters.find(held, Letters.PAIR, letter);
+            if (pair == NONE) {
+                long length = counts.plus(letters.lengthOf(held), letters.lengthOf(letter));
+                pair = newLetters.name(held, Letters.PAIR, letter, length);
+                counts.release(mark);
+            }
+            write(pair);
+            held = NONE;
+        }
+
+        private void writeHeld() {
+            if (held == NONE) {
+                return;
+            }
+            if (first != NONE && held != first && letters.isRunAs(held, first)) {
+                writeRest(first);
+                writeAlone(first);
+            } else if (last != NONE && held != last && letters.isRunAs(held, last)) {
+                writeAlone(last);
+                writeRest(last);
+            } else {
+                writeAlone(held);
+            }
+            held = NONE;
+        }
+
+        private void writeAlone(int letter) {
+            write(newLetters.name(letter, Letters.ALONE, 0, letters.lengthOf(letter)));
+        }
+
+        private void writeRest(int less) {
+            long rest = counts.minus(letters.lengthOf(held), letters.lengthOf(less));
+            write(newLetters.name(held, Letters.REST, 0, rest));
+            counts.release(mark);
+        }
+
+        // ---- what the pattern begins and ends with
+
+        /**
+         * In the row, the runs at the ends of the pattern may be longer. So a longer run is written as two letters, one
+         * of them for the end of the pattern. If both ends are runs of the same letter, that can't be done for both: the
+         * last run of the pattern is left out, and what stands ahead of such a run, or of a longer one, is told apart.
+         */
+        private void fitEnds() {
+            int end = starts[ruleCount];
+            first = items[starts[ruleCount - 1]];
+            last = items[end - 1];
+            if (letters.baseOf(first) == letters.baseOf(last)) {
+                findEnds();
+                letters.setSides(endOf(items[end - 2], 1), last);
+                last = NONE;
+                writeAnew();
+            } else if (letters.hasLongerRun(first) || letters.hasLongerRun(last)) {
+                writeAnew();
+            }
+            first = NONE;
+            last = NONE;
+        }
+
+        private boolean isLeftOut(int rule) {
+            return rule == ruleCount - 1 && first != NONE && last == NONE;
+        }
+
+        /** Finds the letters that all rules begin and end with. */
+        private void findEnds() {
+            for (int rule = 0; rule < ruleCount; rule++) {
+                if (starts[rule] < starts[rule + 1]) {
+                    ends[2 * rule] = endOf(items[starts[rule]], 0);
+                    ends[2 * rule + 1] = endOf(items[starts[rule + 1] - 1], 1);
+                }
+            }
+        }
+
+        /** The letter that an item begins with, or ends with. */
+        private int endOf(int item, int end) {
+            return item >= 0 ? item : ends[2 * ~item + end];
+        }
+
+        // ---- which letters are joined
+
+        /** Lets many pairs be joined: of those in the pattern, or of those in all rules. */
+        private void chooseSides(boolean isByPattern) {
+            weigh(isByPattern);
+            findEnds();
+            letters.forgetSides();
+            for (int rule = 0; rule < ruleCount; rule++) {
+                for (int i = starts[rule] + 1; i < starts[rule + 1]; i++) {
+                    int ahead = endOf(items[i - 1], 1);
+                    int behind = endOf(items[i], 0);
+                    if (ahead != behind) {
+                        letters.addPair(ahead, behind, weights[rule]);
+                    }
+                }
+            }
+            letters.chooseSides(items[starts[ruleCount - 1]], items[starts[ruleCount] - 1]);
+        }
+
+        private void weigh(boolean isByPattern) {
+            Arrays.fill(weights, 0, ruleCount, isByPattern ? 0 : 1);
+            if (isByPattern) {
+                weights[ruleCount - 2] = NEARLY_NOTHING;
+                weights[ruleCount - 1] = 1;
+            }
+            for (int rule = ruleCount - 1; rule >= 0 && isByPattern; rule--) {
+                for (int i = starts[rule]; i < starts[rule + 1]; i++) {
+                    if (items[i] < 0) {
+                        weights[~items[i]] += weights[rule];
+                    }
+                }
+            }
+        }
+
+        /** Whether the row has all letters that the pattern has. */
+        private boolean hasAllLetters() {
+            Arrays.fill(ends, 0, 2 * ruleCount, 0);
+            ends[2 * (ruleCount - 2)] = 1;
+            ends[2 * (ruleCount - 1) + 1] = 1;
+            for (int rule = ruleCount - 1; rule >= 0; rule--) {
+                boolean isInRow = ends[2 * rule] > 0;
+                for (int i = starts[rule]; i < starts[rule + 1]; i++) {
+                    if (items[i] < 0) {
+                        ends[2 * ~items[i]] |= ends[2 * rule];
+                        ends[2 * ~items[i] + 1] |= ends[2 * rule + 1];
+                    } else if (isInRow) {
+                        letters.setSide(items[i], Letters.LEFT);
+                    }
+                }
+            }
+            for (int rule = 0; rule < ruleCount; rule++) {
+                for (int i = starts[rule]; i < starts[rule + 1] && ends[2 * rule + 1] > 0; i++) {
+                    if (items[i] >= 0 && letters.sideOf(items[i]) != Letters.LEFT) {
+                        return false;
+                    }
+                }
+            }
+            return true;
+        }
+
+        // ---- where the pattern is found
+
+        /** Where the last run in the row lies that is the one letter of the pattern, or ends with it. */
+        private long placeOfRun() {
+            int sought = items[starts[ruleCount] - 1];
+            measure(sought);
+            long ahead = 0;
+            int rule = ruleCount - 2;
+            for (int turn = 0; turn < ruleCount && ends[2 * rule] != NONE; turn++) {
+                int place = ends[2 * rule];
+                for (int i = starts[rule]; i < place; i++) {
+                    ahead = counts.keep(counts.plus(ahead, lengthOf(items[i])), mark);
+                }
+                if (items[place] >= 0) {
+                    long less = counts.minus(lengthOf(items[place]), lengthOf(sought));
+                    return counts.keep(counts.plus(ahead, less), mark);
+                }
+                rule = ~items[place];
+            }
+            return NOWHERE;
+        }
+
+        /** Finds how long all rules are, and the last item of each that has the letter in it. */
+        private void measure(int sought) {
+            for (int rule = 0; rule < ruleCount; rule++) {
+                long length = 0;
+                ends[2 * rule] = NONE;
+                for (int i = starts[rule]; i < starts[rule + 1]; i++) {
+                    int item = items[i];
+                    boolean isIn = item >= 0 ? letters.isRunAs(item, sought) : ends[2 * ~item] != NONE;
+                    ends[2 * rule] = isIn ? i : ends[2 * rule];
+                    length = counts.keep(counts.plus(length, lengthOf(item)), mark);
+                }
+                endRuns[2 * rule] = counts.copy(length);
+                counts.release(mark);
+            }
+        }
+
+        private long lengthOf(int item) {
+            return item >= 0 ? letters.lengthOf(item) : endRuns[2 * ~item];
         }
     }
 
@@ -1936,9 +2277,6 @@ public final class Reifytown {
         // The argument in a piece is none, any reference (OWN), or one of the types.
         private static final int ARGUMENTS = MOST_TYPES + 2;
 
-        // Calls that take no step can be more than an int tells.
-        private static final int MOST_CALLS_TOLD = 0x7FFFFFFF;
-
         // How the statics of a type stand.
         static final int UNUSED = 0;
         static final int USED = 1;
@@ -1953,7 +2291,9 @@ public final class Reifytown {
         // A new piece takes a new step that calls, makes an iterator, or makes a target.
         private final int[] pieces = new int[MOST_THINGS];
         int pieceCount = 0;
+        // Calls that take no step can be more than an int tells.
         int callCount = 0;
+        float callsAsFloat = 0;
         int boxCount = 0;
         int finalCount = 0;
         final long[] statics = new long[MOST_TYPES * STATICS];
@@ -1968,6 +2308,7 @@ public final class Reifytown {
             stepCount = 0;
             pieceCount = 0;
             callCount = 0;
+            callsAsFloat = 0;
             boxCount = 0;
             finalCount = 0;
             Arrays.fill(statics, ZERO);
@@ -1993,10 +2334,6 @@ public final class Reifytown {
                 pieces[pieceCount] = piece;
                 pieceCount++;
             }
-        }
-
-        void addCalls(int count) {
-            callCount = Math.min(callCount, MOST_CALLS_TOLD - count) + count;
         }
 
         boolean tellsAs(Outcome other) {
@@ -2031,6 +2368,8 @@ public final class Reifytown {
         private int depth = 0;
         private final Frame[] iterators = new Frame[MOST_THINGS];
         private int iteratorCount = 0;
+        // How many calls were made, as one of the numbers of targets.
+        private long calls = 0;
         private Pending spare = null;
         private Outcome out = null;
         private boolean isWritten = false;
@@ -2055,12 +2394,15 @@ public final class Reifytown {
             rows.clear();
             depth = 0;
             iteratorCount = 0;
+            calls = 0;
             out = outcome;
             isWritten = isWrittenOut;
             Frame frame = open(body, INT, Frame.RUN);
             frame.locals[1] = ofNumber(argument);
             int way = enter(frame);
             out.boxCount = store.boxCount;
+            out.callCount = rows.counts.inInt(calls);
+            out.callsAsFloat = rows.counts.inFloat(calls);
             if (way == RETURNED) {
                 out.end = 'r';
                 out.value = result;
@@ -2076,6 +2418,13 @@ public final class Reifytown {
 
         private boolean isFull() {
             return depth >= MOST_CALLS;
+        }
+
+        private void addCalls(long count) {
+            Counts counts = rows.counts;
+            int mark = counts.mark();
+            calls = counts.store(counts.plus(calls, count));
+            counts.release(mark);
         }
 
         /** A new call that has not begun; there must be room for it. */
@@ -2233,7 +2582,7 @@ public final class Reifytown {
             Frame asked = open(filter, frame.argument, Frame.FILTER);
             bindTo(asked, frame, 0);
             asked.locals[1] = ofNumber(number);
-            out.addCalls(1);
+            addCalls(1);
             int way = enter(asked);
             if (way == RETURNED) {
                 return kindOf(result) == NUMBER && restOf(result) != 0 ? 1 : 0;
@@ -2579,7 +2928,7 @@ public final class Reifytown {
                 return fail(FAULT_LIMIT);
             }
             out.staticStates[type] = Outcome.USED;
-            out.addCalls(1);
+            addCalls(1);
             int way = enter(open(plan.bodies[ready], types.arguments[type], Frame.READY));
             if (way == RETURNED) {
                 return NEXT;
@@ -2629,7 +2978,7 @@ public final class Reifytown {
         /** A call of the method that was found, which has not begun. */
         private Frame openFound(int name, long argument) {
             countPiece(name);
-            out.addCalls(1);
+            addCalls(1);
             Frame called = open(foundBody(), foundArgument, Frame.METHOD);
             called.locals[1] = argument;
             return called;
@@ -2714,7 +3063,7 @@ public final class Reifytown {
                     notePieceOf(rows.answer(i));
                 }
             }
-            out.addCalls(rows.counts.inInt(rows.lengthOf(part)));
+            addCalls(rows.lengthOf(part));
             result = NULL;
             return RETURNED;
         }

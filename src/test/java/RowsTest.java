@@ -15,6 +15,11 @@ public final class RowsTest {
         callsWithoutStepsThrow();
         changedReceivers();
         rowsOfEachLength();
+        noFourthPowers();
+        shareOfCalls();
+        for (int seed = from; seed < to; seed += 10) {
+            randomLongRows(seed);
+        }
         for (int seed = from; seed < to; seed++) {
             randomRows(seed);
             randomRounds(seed);
@@ -218,6 +223,69 @@ public final class RowsTest {
             Checks.runs("15 a row of " + (5 * times + 1), town, body, 0, "r0 1");
             Checks.same("25 the calls of a row of " + (5 * times + 1), town.calls(), 5 * times + 2);
         }
+    }
+
+    /** Rows like those of Fibonacci have each of their beginnings again and again, but never four times in a row. */
+    private static void noFourthPowers() {
+        for (int times : new int[] {1, 2, 3, 10, 30, 60}) {
+            for (int more : new int[] {1, 2, 3, 20, 40, 80}) {
+                Reifytown town = town();
+                int body = body(town, "N 2 2", "D 1 2 0", "D 3 2 1", "= 4 " + times, "= 5 1", "P 1 1 3", "P 3 3 1",
+                    "- 4 4 5", "z 4 10", "j 0 5", "P 0 1 1", "P 0 0 0", "= 4 " + more, "P 1 1 3", "P 3 3 1",
+                    "- 4 4 5", "z 4 18", "j 0 13", "M 4 1 0", "? 4 4 1", "r 4");
+                Checks.runs("15 no fourth power, " + times + " and " + more, town, body, 0, "rn1");
+                town = town();
+                body = body(town, "N 2 2", "D 1 2 0", "D 3 2 1", "= 4 " + times, "= 5 1", "P 1 1 3", "P 3 3 1",
+                    "- 4 4 5", "z 4 10", "j 0 5", "P 0 1 1", "= 4 " + (more + 5), "P 1 1 3", "P 3 3 1", "- 4 4 5",
+                    "z 4 17", "j 0 12", "M 4 1 0", "? 4 4 1", "r 4");
+                Checks.runs("15 but two in a row, " + times + " and " + more, town, body, 0, "rn0");
+            }
+        }
+    }
+
+    /** The share of more calls than an int or a long tells. */
+    private static void shareOfCalls() {
+        for (int times : new int[] {0, 1, 24, 31, 40, 59, 60, 61, 64, 100, 127, 128, 129, 200}) {
+            Reifytown town = town();
+            int body = body(town, "N 2 2");
+            Checks.write(town, body, doubled(3, 1, times + 1, 1).toArray(new String[0]));
+            Checks.write(town, body, "D 3 2 4", "P 3 3 1", "I 0 3 1", "I 4 3 1", "r 0");
+            town.run(body, 0);
+            // 2 to the power of times + 2, and 2 more: a float tells them only if there are not too many.
+            double calls = 2;
+            for (int i = 0; i < times + 1; i++) {
+                calls = calls * 2;
+            }
+            Checks.same("29 the share of many calls, " + times, town.pieceShare(), 2f / (float) (calls + 2));
+        }
+        // Just above the middle of two floats, and just in it: 2 to the power of 40, of 16, and one or none.
+        for (int more = 0; more < 2; more++) {
+            Reifytown town = town();
+            int body = body(town, "N 2 2", "D 1 2 3", "D 0 2 3", "= 4 16", "= 5 1", "P 1 1 1", "- 4 4 5", "z 4 9", "j 0 5",
+                ": 3 1", "= 4 24", "P 3 3 3", "- 4 4 5", "z 4 15", "j 0 11", "P 1 1 3", "I 4 1 1", "z 2 20", "= 4 " + more, "z 4 21",
+                "I 4 0 1", "r 4");
+            town.run(body, 0);
+            long calls = (1L << 40) + (1L << 16) + more;
+            Checks.same("29 the nearest float, " + more, town.pieceShare(), 1f / (float) calls);
+        }
+    }
+
+    /** Much longer rows than lists hold: the last row is taken out ahead of a target that is in none. */
+    private static void randomLongRows(int seed) {
+        Random random = new Random(seed);
+        int[] own = {0, 3, 4, 5};
+        Reifytown town = town();
+        int body = body(town, "N 2 2", "D 0 2 0", "D 3 2 1", "P 4 0 3", "P 5 3 0", "= 2 1");
+        int changes = 3 + random.nextInt(5);
+        for (int i = 0; i < changes; i++) {
+            Checks.write(town, body, "P " + own[random.nextInt(4)] + " " + own[random.nextInt(4)] + " " + own[random.nextInt(4)]);
+        }
+        int behind = 6 + changes;
+        int front = own[random.nextInt(4)];
+        int end = own[random.nextInt(4)];
+        Checks.write(town, body, "- 1 1 2", "z 1 " + (behind + 3), "j 0 6", "N 2 2", "D 2 2 2", "P 1 " + front + " " + end,
+            "P 1 1 2", "M 1 1 " + end, "M 1 1 " + front, "M 1 1 2", "r 1");
+        Checks.runs("15 random long rows " + seed, town, body, 1 + random.nextInt(900 / (changes + 3)), "r0");
     }
 
     // ---- random rows, held against plain lists

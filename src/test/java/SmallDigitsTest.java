@@ -17,7 +17,6 @@ public final class SmallDigitsTest {
     private static final String[][] CHANGES = {
         {"int DIGIT = 60;", "int DIGIT = 3;"},
         {"int DIGITS = 17;", "int DIGITS = 340;"},
-        {"int SHORT = 4;", "int SHORT = 0;"},
     };
 
     public static void main(String[] args) throws Exception {
