@@ -1037,9 +1037,11 @@ public final class Reifytown {
             if (count < LARGE || place >= MOST_LARGE) {
                 return count;
             }
-            makeRoom((place + 1) * width);
-            System.arraycopy(digits, (int) (count - LARGE) * width, digits, place * width, width);
             storedCount++;
+            if (digits.length < (place + 1) * width) {
+                digits = Arrays.copyOf(digits, 2 * (place + 1) * width);
+            }
+            System.arraycopy(digits, (int) (count - LARGE) * width, digits, place * width, width);
             return LARGE + place;
         }
 
@@ -1080,19 +1082,23 @@ public final class Reifytown {
             if (one < LARGE || other < LARGE) {
                 return one < other;
             }
+            int place = (int) (one - LARGE) * width;
+            int otherPlace = (int) (other - LARGE) * width;
             int i = width - 1;
-            while (i > 0 && digit(one, i) == digit(other, i)) {
+            while (i > 0 && digits[place + i] == digits[otherPlace + i]) {
                 i--;
             }
-            return digit(one, i) < digit(other, i);
+            return digits[place + i] < digits[otherPlace + i];
         }
 
         boolean isEqual(long one, long other) {
             if (one < LARGE || other < LARGE) {
                 return one == other;
             }
+            int place = (int) (one - LARGE) * width;
+            int otherPlace = (int) (other - LARGE) * width;
             int same = 0;
-            while (same < width && digit(one, same) == digit(other, same)) {
+            while (same < width && digits[place + same] == digits[otherPlace + same]) {
                 same++;
             }
             return same == width;
@@ -1163,24 +1169,22 @@ public final class Reifytown {
 
         /** The place of a new passing result. */
         private int reserve() {
-            makeRoom((PASSING + storedCount) * width);
+            if (digits.length < PASSING * width) {
+                digits = Arrays.copyOf(digits, PASSING * width);
+            }
             if (passingCount < PASSING) {
                 passingCount++;
             }
             return passingCount - 1;
         }
 
-        private void makeRoom(int wanted) {
-            if (wanted > digits.length) {
-                digits = Arrays.copyOf(digits, Math.max(wanted, digits.length * 2));
-            }
-        }
-
         /** Gives all numbers one more digit. */
         private void widen() {
             int count = PASSING + storedCount;
             int wider = width + 1;
-            makeRoom(count * wider);
+            if (digits.length < count * wider) {
+                digits = Arrays.copyOf(digits, 2 * count * wider);
+            }
             for (int i = count - 1; i >= 0; i--) {
                 System.arraycopy(digits, i * width, digits, i * wider, width);
                 digits[i * wider + width] = 0;
@@ -1527,44 +1531,38 @@ public final class Reifytown {
 
         // ---- names
 
-        /** The letter that is made so, or NONE. */
-        int find(int base, int make, long key) {
+        /** The letter that is made so, or NONE; of runs, it is the one with this length. */
+        int find(int base, int make, long key, long length) {
             int made = base * MAKES + make;
-            for (int i = slots[slotOf(made, key)]; i >= 0; i = nexts[i]) {
-                if (makes[i] == made && (make == RUN ? counts.isEqual(keys[i], key) : keys[i] == key)) {
-                    return i;
-                }
+            int i = slots[slotOf(made, key)];
+            while (i >= 0 && (makes[i] != made || keys[i] != key || make == RUN && !counts.isEqual(lengths[i], length))) {
+                i = nexts[i];
             }
-            return NONE;
+            return i;
         }
 
         /** The letter that is made so, which is a new one with this length if there is none. */
         int name(int base, int make, long key, long length) {
-            int found = find(base, make, key);
+            int found = find(base, make, key, length);
             if (found != NONE) {
                 return found;
             }
             if (count >= makes.length) {
                 grow();
             }
-            lengths[count] = counts.copy(length);
             makes[count] = base * MAKES + make;
-            keys[count] = make == RUN ? lengths[count] : key;
+            keys[count] = key;
+            lengths[count] = counts.copy(length);
             sides[count] = NEITHER;
-            putIntoSlot(count);
+            int slot = slotOf(makes[count], key);
+            nexts[count] = slots[slot];
+            slots[slot] = count;
             count++;
             return count - 1;
         }
 
         private int slotOf(int made, long key) {
-            long mixed = made % MAKES == RUN ? counts.mixOf(key) : key;
-            return (int) ((mixed * MIXING + made) * MIXING >>> 33) & slots.length - 1;
-        }
-
-        private void putIntoSlot(int letter) {
-            int slot = slotOf(makes[letter], keys[letter]);
-            nexts[letter] = slots[slot];
-            slots[slot] = letter;
+            return (int) ((key * MIXING + made) * MIXING >>> 33) & slots.length - 1;
         }
 
         private void grow() {
@@ -1578,7 +1576,9 @@ public final class Reifytown {
             slots = new int[wanted];
             Arrays.fill(slots, NONE);
             for (int i = 0; i < count; i++) {
-                putIntoSlot(i);
+                int slot = slotOf(makes[i], keys[i]);
+                nexts[i] = slots[slot];
+                slots[slot] = i;
             }
         }
 
@@ -1749,30 +1749,29 @@ public final class Reifytown {
             mark = counts.mark();
             stored = counts.stored();
             long ahead = NOWHERE;
-            if (rows.hasAtEnd(row, less)) {
+            boolean isOver = rows.hasAtEnd(row, less);
+            if (isOver) {
                 ahead = counts.minus(rows.lengthOf(row), rows.lengthOf(less));
             } else {
                 begin(row, less);
-                ahead = lastPlace();
+            }
+            for (int round = 0; round < MOST_ROUNDS && !isOver && hasAllLetters(); round++) {
+                writeRuns();
+                isOver = isPatternOneLetter();
+                if (isOver) {
+                    ahead = placeOfRun();
+                    continue;
+                }
+                if (mustFitEnds()) {
+                    writeAnew();
+                }
+                chooseSides(round % 2 == 0);
+                writeAnew();
             }
             counts.drop(stored);
             long made = ahead == NOWHERE ? one : rows.row(rows.without(row, ahead, rows.lengthOf(less)));
             counts.release(mark);
             return made;
-        }
-
-        /** How many targets of the row lie ahead of the last place of the pattern, or NOWHERE. */
-        private long lastPlace() {
-            for (int round = 0; round < MOST_ROUNDS && hasAllLetters(); round++) {
-                writeRuns();
-                if (starts[ruleCount] - starts[ruleCount - 1] == 1) {
-                    return placeOfRun();
-                }
-                fitEnds();
-                chooseSides(round % 2 == 0);
-                writeAnew();
-            }
-            return NOWHERE;
         }
 
         // ---- the first rules
@@ -1911,24 +1910,21 @@ public final class Reifytown {
                 for (int i = starts[rule]; i < starts[rule + 1]; i++) {
                     if (items[i] >= 0) {
                         addRun(rule, items[i], letters.lengthOf(items[i]));
-                    } else {
-                        addRunsOf(rule, ~items[i]);
+                        continue;
+                    }
+                    int part = ~items[i];
+                    addRun(rule, ends[2 * part], endRuns[2 * part]);
+                    if (hasItems(part)) {
+                        endRun(rule, false);
+                        write(~part);
+                    }
+                    if (ends[2 * part + 1] != NONE) {
+                        addRun(rule, ends[2 * part + 1], endRuns[2 * part + 1]);
                     }
                 }
                 endRun(rule, true);
             }
             closePass();
-        }
-
-        private void addRunsOf(int rule, int part) {
-            addRun(rule, ends[2 * part], endRuns[2 * part]);
-            if (hasItems(part)) {
-                endRun(rule, false);
-                write(~part);
-            }
-            if (ends[2 * part + 1] != NONE) {
-                addRun(rule, ends[2 * part + 1], endRuns[2 * part + 1]);
-            }
         }
 
         private void addRun(int rule, int letter, long run) {
@@ -1952,9 +1948,9 @@ public final class Reifytown {
                 ends[end] = held;
                 endRuns[end] = counts.store(heldRun);
             } else if (heldRun == letters.lengthOf(held)) {
-                writeAlone(held);
+                write(newLetters.name(held, Letters.ALONE, 0, heldRun));
             } else {
-                write(newLetters.name(held, Letters.RUN, heldRun, heldRun));
+                write(newLetters.name(held, Letters.RUN, counts.mixOf(heldRun), heldRun));
             }
             held = NONE;
             counts.release(mark);
@@ -1970,26 +1966,23 @@ public final class Reifytown {
                 for (int i = starts[rule]; i < starts[rule + 1]; i++) {
                     if (items[i] >= 0) {
                         addLetter(rule, items[i]);
-                    } else {
-                        addLettersOf(rule, ~items[i]);
+                        continue;
+                    }
+                    int part = ~items[i];
+                    if (ends[2 * part] != NONE) {
+                        addLetter(rule, ends[2 * part]);
+                    }
+                    if (hasItems(part)) {
+                        writeHeld();
+                        write(~part);
+                    }
+                    if (ends[2 * part + 1] != NONE) {
+                        addLetter(rule, ends[2 * part + 1]);
                     }
                 }
                 endRule(rule);
             }
             closePass();
-        }
-
-        private void addLettersOf(int rule, int part) {
-            if (ends[2 * part] != NONE) {
-                addLetter(rule, ends[2 * part]);
-            }
-            if (hasItems(part)) {
-                writeHeld();
-                write(~part);
-            }
-            if (ends[2 * part + 1] != NONE) {
-                addLetter(rule, ends[2 * part + 1]);
-            }
         }
 
         private void addLetter(int rule, int letter) {
@@ -2022,7 +2015,7 @@ public final class Reifytown {
                 held = letter;
                 return;
             }
-            int pair = newLetters.find(held, Letters.PAIR, letter);
+            int pair = newLetters.find(held, Letters.PAIR, letter, 0);
             if (pair == NONE) {
                 long length = counts.plus(letters.lengthOf(held), letters.lengthOf(letter));
                 pair = newLetters.name(held, Letters.PAIR, letter, length);
@@ -2036,26 +2029,19 @@ public final class Reifytown {
             if (held == NONE) {
                 return;
             }
-            if (first != NONE && held != first && letters.isRunAs(held, first)) {
-                writeRest(first);
-                writeAlone(first);
-            } else if (last != NONE && held != last && letters.isRunAs(held, last)) {
-                writeAlone(last);
-                writeRest(last);
-            } else {
-                writeAlone(held);
+            boolean isBeyondFirst = first != NONE && held != first && letters.isRunAs(held, first);
+            boolean isBeyondLast = last != NONE && held != last && letters.isRunAs(held, last);
+            int end = isBeyondFirst ? first : isBeyondLast ? last : held;
+            long rest = end == held ? 0 : counts.minus(letters.lengthOf(held), letters.lengthOf(end));
+            if (isBeyondFirst) {
+                write(newLetters.name(held, Letters.REST, 0, rest));
             }
-            held = NONE;
-        }
-
-        private void writeAlone(int letter) {
-            write(newLetters.name(letter, Letters.ALONE, 0, letters.lengthOf(letter)));
-        }
-
-        private void writeRest(int less) {
-            long rest = counts.minus(letters.lengthOf(held), letters.lengthOf(less));
-            write(newLetters.name(held, Letters.REST, 0, rest));
+            write(newLetters.name(end, Letters.ALONE, 0, letters.lengthOf(end)));
+            if (isBeyondLast) {
+                write(newLetters.name(held, Letters.REST, 0, rest));
+            }
             counts.release(mark);
+            held = NONE;
         }
 
         // ---- what the pattern begins and ends with
@@ -2065,7 +2051,7 @@ public final class Reifytown {
          * of them for the end of the pattern. If both ends are runs of the same letter, that can't be done for both: the
          * last run of the pattern is left out, and what stands ahead of such a run, or of a longer one, is told apart.
          */
-        private void fitEnds() {
+        private boolean mustFitEnds() {
             int end = starts[ruleCount];
             first = items[starts[ruleCount - 1]];
             last = items[end - 1];
@@ -2073,12 +2059,9 @@ public final class Reifytown {
                 findEnds();
                 letters.setSides(endOf(items[end - 2], 1), last);
                 last = NONE;
-                writeAnew();
-            } else if (letters.hasLongerRun(first) || letters.hasLongerRun(last)) {
-                writeAnew();
+                return true;
             }
-            first = NONE;
-            last = NONE;
+            return letters.hasLongerRun(first) || letters.hasLongerRun(last);
         }
 
         private boolean isLeftOut(int rule) {
@@ -2104,6 +2087,8 @@ public final class Reifytown {
 
         /** Lets many pairs be joined: of those in the pattern, or of those in all rules. */
         private void chooseSides(boolean isByPattern) {
+            first = NONE;
+            last = NONE;
             weigh(isByPattern);
             findEnds();
             letters.forgetSides();
@@ -2161,6 +2146,10 @@ public final class Reifytown {
         }
 
         // ---- where the pattern is found
+
+        private boolean isPatternOneLetter() {
+            return starts[ruleCount] - starts[ruleCount - 1] == 1;
+        }
 
         /** Where the last run in the row lies that is the one letter of the pattern, or ends with it. */
         private long placeOfRun() {
