@@ -66,8 +66,7 @@ public final class Reifytown {
     private static final int LIMIT = 8;
 
     private final Plan plan = new Plan();
-    private final Types types = new Types();
-    private final Machine machine = new Machine(plan, types);
+    private final Machine machine = new Machine(plan);
     private final Outcome last = new Outcome();
     private final Outcome shared = new Outcome();
     private final Outcome writtenOut = new Outcome();
@@ -147,17 +146,17 @@ public final class Reifytown {
 
     public int type(int kind, int argument) throws IndexOutOfBoundsException, IllegalArgumentException,
             UnsupportedOperationException, IllegalStateException {
-        if (!plan.hasKind(kind) || argument != NONE && !types.isThere(argument)) {
+        if (!plan.hasKind(kind) || argument != NONE && !plan.hasType(argument)) {
             throw new IndexOutOfBoundsException("no such kind or type");
         }
         Kind made = plan.kinds[kind];
         if (made.hasParameter == (argument == NONE)) {
             throw new IllegalArgumentException("an argument just if there is no parameter");
         }
-        if (argument != NONE && !types.allows(made.limit, argument)) {
+        if (argument != NONE && !plan.allows(made.limit, argument)) {
             throw new UnsupportedOperationException("the limit of the parameter");
         }
-        int type = types.make(made, argument);
+        int type = plan.makeType(made, argument);
         if (type == NONE) {
             throw new IllegalStateException("too many types, or too deep");
         }
@@ -165,14 +164,14 @@ public final class Reifytown {
     }
 
     public int types() {
-        return types.count;
+        return plan.typeCount;
     }
 
     public boolean isBelow(int type, int other) throws IndexOutOfBoundsException {
-        if (!types.isThere(type) || !types.isThere(other)) {
+        if (!plan.hasType(type) || !plan.hasType(other)) {
             throw new IndexOutOfBoundsException("no such type");
         }
-        return types.fits(type, other);
+        return plan.fits(type, other);
     }
 
     // ---- methods and code
@@ -283,13 +282,13 @@ public final class Reifytown {
     }
 
     public int found(int type, int kind, int name) throws IndexOutOfBoundsException, IllegalArgumentException {
-        if (!types.isThere(type) || !plan.hasKind(kind)) {
+        if (!plan.hasType(type) || !plan.hasKind(kind)) {
             throw new IndexOutOfBoundsException("no such type or kind");
         }
         if (!isName(name)) {
             throw new IllegalArgumentException("no such name");
         }
-        Kind receiver = types.kinds[type];
+        Kind receiver = plan.typeKinds[type];
         if (receiver == null || receiver.letter == 'i' || (plan.allAbove(receiver.index) >> kind & 1) == 0) {
             return NONE;
         }
@@ -341,14 +340,14 @@ public final class Reifytown {
 
     public int staticOf(int type, int index)
             throws IndexOutOfBoundsException, IllegalArgumentException, NoSuchElementException {
-        if (!types.isThere(type)) {
+        if (!plan.hasType(type)) {
             throw new IndexOutOfBoundsException("no such type");
         }
         if (index < 0 || index >= STATICS) {
             throw new IllegalArgumentException("no such static");
         }
         long value = last.statics[type * STATICS + index];
-        if (runCount == 0 || types.kinds[type] == null || kindOf(value) != NUMBER) {
+        if (runCount == 0 || plan.typeKinds[type] == null || kindOf(value) != NUMBER) {
             throw new NoSuchElementException("no number there");
         }
         return restOf(value);
@@ -415,7 +414,7 @@ public final class Reifytown {
 
     /** Whether it can be told as the argument of a parent or an interface, of whatever kind. */
     private boolean isTold(int argument) {
-        return argument == NONE || argument == OWN || types.isThere(argument);
+        return argument == NONE || argument == OWN || plan.hasType(argument);
     }
 
     private static boolean canLieBelow(Kind child, Kind above, int argument) {
@@ -427,7 +426,7 @@ public final class Reifytown {
         if (argument == OWN) {
             return above.limit == '-' || above.limit == child.limit;
         }
-        return argument == NONE || types.allows(above.limit, argument);
+        return argument == NONE || plan.allows(above.limit, argument);
     }
 
     private static boolean isName(int name) {
@@ -604,12 +603,24 @@ public final class Reifytown {
         }
     }
 
-    /** The kinds and bodies that were told, and which method a call finds among them. */
+    /** The kinds, types and bodies that were told: which types lie below which, and which method a call finds. */
     private static final class Plan {
         final Kind[] kinds = new Kind[MOST_KINDS];
         int kindCount = 0;
         final Body[] bodies = new Body[MOST_BODIES];
         int bodyCount = 0;
+        final Kind[] typeKinds = new Kind[MOST_TYPES];
+        final int[] typeArguments = new int[MOST_TYPES];
+        private final int[] typeDepths = new int[MOST_TYPES];
+        int typeCount = 2;
+        private final int[] questions = new int[MOST_TYPES * MOST_TYPES];
+        private final boolean[] isAsked = new boolean[MOST_TYPES * MOST_TYPES];
+        private int questionCount = 0;
+
+        Plan() {
+            Arrays.fill(typeArguments, NONE);
+            Arrays.fill(typeDepths, 1);
+        }
 
         boolean hasKind(int kind) {
             return kind >= 0 && kind < kindCount;
@@ -722,7 +733,7 @@ public final class Reifytown {
                 return argument;
             }
             for (int i = 0; i < kind.otherCount; i++) {
-                int found = searchArgument(kind.others[i], Types.put(kind.otherArguments[i], argument), wanted);
+                int found = searchArgument(kind.others[i], put(kind.otherArguments[i], argument), wanted);
                 if (found != MISSING) {
                     return found;
                 }
@@ -730,31 +741,17 @@ public final class Reifytown {
             if (kind.parent == null) {
                 return MISSING;
             }
-            return searchArgument(kind.parent, Types.put(kind.parentArgument, argument), wanted);
-        }
-    }
-
-    /** The types that were made, and which lie below which. */
-    private static final class Types {
-        final Kind[] kinds = new Kind[MOST_TYPES];
-        final int[] arguments = new int[MOST_TYPES];
-        private final int[] depths = new int[MOST_TYPES];
-        int count = 2;
-        private final int[] questions = new int[MOST_TYPES * MOST_TYPES];
-        private final boolean[] isAsked = new boolean[MOST_TYPES * MOST_TYPES];
-        private int questionCount = 0;
-
-        Types() {
-            Arrays.fill(arguments, NONE);
-            Arrays.fill(depths, 1);
+            return searchArgument(kind.parent, put(kind.parentArgument, argument), wanted);
         }
 
-        boolean isThere(int type) {
-            return type >= 0 && type < count;
+        // ---- types
+
+        boolean hasType(int type) {
+            return type >= 0 && type < typeCount;
         }
 
         boolean isValue(int type) {
-            return type == INT || kinds[type] != null && kinds[type].letter == 's';
+            return type == INT || typeKinds[type] != null && typeKinds[type].letter == 's';
         }
 
         boolean allows(char limit, int type) {
@@ -762,22 +759,22 @@ public final class Reifytown {
         }
 
         /** The type of a kind with an argument, made if it is new, or NONE if it can't be. */
-        int make(Kind kind, int argument) {
-            for (int i = 0; i < count; i++) {
-                if (kinds[i] == kind && arguments[i] == argument) {
+        int makeType(Kind kind, int argument) {
+            for (int i = 0; i < typeCount; i++) {
+                if (typeKinds[i] == kind && typeArguments[i] == argument) {
                     return i;
                 }
             }
-            int depth = argument == NONE ? 1 : depths[argument] + 1;
-            if (count >= MOST_TYPES || depth > DEEPEST) {
+            int depth = argument == NONE ? 1 : typeDepths[argument] + 1;
+            if (typeCount >= MOST_TYPES || depth > DEEPEST) {
                 return NONE;
             }
-            kinds[count] = kind;
-            arguments[count] = argument;
-            depths[count] = depth;
+            typeKinds[typeCount] = kind;
+            typeArguments[typeCount] = argument;
+            typeDepths[typeCount] = depth;
             kind.isTyped = true;
-            count++;
-            return count - 1;
+            typeCount++;
+            return typeCount - 1;
         }
 
         /** The argument that was told for a parent or an interface, where a type has this own one. */
@@ -815,16 +812,16 @@ public final class Reifytown {
             if (type == other || other == OBJECT) {
                 return true;
             }
-            return kinds[type] != null && climb(kinds[type], arguments[type], other);
+            return typeKinds[type] != null && climb(typeKinds[type], typeArguments[type], other);
         }
 
         /** All that lies above a kind has a lower number, so this goes at most 10 deep. */
         private boolean climb(Kind kind, int argument, int other) {
-            if (kind == kinds[other]) {
-                if (argument == arguments[other]) {
+            if (kind == typeKinds[other]) {
+                if (argument == typeArguments[other]) {
                     return true;
                 }
-                askByVariance(kind.variance, argument, arguments[other]);
+                askByVariance(kind.variance, argument, typeArguments[other]);
             }
             for (int i = 0; i < kind.otherCount; i++) {
                 if (climb(kind.others[i], put(kind.otherArguments[i], argument), other)) {
@@ -2348,7 +2345,6 @@ public final class Reifytown {
         private static final int STALE = -2;
 
         private final Plan plan;
-        private final Types types;
         private final Store store = new Store();
         private final Rows rows = new Rows();
         private Search search = null;
@@ -2369,9 +2365,8 @@ public final class Reifytown {
         private int foundMethod = NONE;
         private int foundArgument = NONE;
 
-        Machine(Plan plan, Types types) {
+        Machine(Plan plan) {
             this.plan = plan;
-            this.types = types;
             for (int i = 0; i < MOST_CALLS; i++) {
                 plainFrames[i] = new Frame();
             }
@@ -2823,7 +2818,7 @@ public final class Reifytown {
         /** The type that a step names, made if it is new; or, if there is none, less than 0: less the fault. */
         private int typeInStep(Frame frame, int number) {
             if (number >= 0) {
-                return types.isThere(number) ? number : -FAULT_WRONG;
+                return plan.hasType(number) ? number : -FAULT_WRONG;
             }
             if (frame.argument == NONE) {
                 return -FAULT_LIMIT;
@@ -2836,7 +2831,7 @@ public final class Reifytown {
                 return -FAULT_WRONG;
             }
             Kind kind = plan.kinds[index];
-            int type = types.allows(kind.limit, frame.argument) ? types.make(kind, frame.argument) : NONE;
+            int type = plan.allows(kind.limit, frame.argument) ? plan.makeType(kind, frame.argument) : NONE;
             return type == NONE ? -FAULT_LIMIT : type;
         }
 
@@ -2848,17 +2843,17 @@ public final class Reifytown {
             if (type < 0) {
                 return fail(-type);
             }
-            if (op == 'd' || op == 'N' && types.isValue(type)) {
+            if (op == 'd' || op == 'N' && plan.isValue(type)) {
                 return set(frame, a, firstOf(type));
             }
             if (op == 'N') {
-                Kind kind = types.kinds[type];
+                Kind kind = plan.typeKinds[type];
                 return kind == null || kind.letter != 'c' ? fail(FAULT_WRONG) : set(frame, a, store.newObject(type));
             }
             long value = get(frame, body.bs[i]);
             int own = store.typeOf(value);
             if (op == 'T') {
-                return set(frame, a, ofNumber(own != NONE && types.fits(own, type) ? 1 : 0));
+                return set(frame, a, ofNumber(own != NONE && plan.fits(own, type) ? 1 : 0));
             }
             return unbox(frame, a, value, type);
         }
@@ -2867,19 +2862,19 @@ public final class Reifytown {
             if (type == INT) {
                 return ZERO;
             }
-            return types.isValue(type) ? store.structure(type, ZERO, ZERO, ZERO) : NULL;
+            return plan.isValue(type) ? store.structure(type, ZERO, ZERO, ZERO) : NULL;
         }
 
         private int unbox(Frame frame, int a, long value, int type) {
             int own = store.typeOf(value);
-            if (types.isValue(type)) {
+            if (plan.isValue(type)) {
                 if (value == NULL) {
                     return fail(FAULT_NULL);
                 }
                 boolean isRight = kindOf(value) == BOX && own == type;
                 return isRight ? set(frame, a, store.inBox(restOf(value))) : fail(FAULT_UNBOX);
             }
-            boolean isRight = value == NULL || own != NONE && types.fits(own, type);
+            boolean isRight = value == NULL || own != NONE && plan.fits(own, type);
             return isRight ? set(frame, a, value) : fail(FAULT_UNBOX);
         }
 
@@ -2889,7 +2884,7 @@ public final class Reifytown {
             if (type < 0) {
                 return fail(-type);
             }
-            if (types.kinds[type] == null) {
+            if (plan.typeKinds[type] == null) {
                 return fail(FAULT_WRONG);
             }
             int way = makeReady(type);
@@ -2909,7 +2904,7 @@ public final class Reifytown {
             if (out.staticStates[type] == Outcome.SPOILT) {
                 return fail(out.staticFaults[type]);
             }
-            int ready = types.kinds[type].ready;
+            int ready = plan.typeKinds[type].ready;
             if (out.staticStates[type] == Outcome.USED || !plan.hasBody(ready)) {
                 return NEXT;
             }
@@ -2918,7 +2913,7 @@ public final class Reifytown {
             }
             out.staticStates[type] = Outcome.USED;
             addCalls(1);
-            int way = enter(open(plan.bodies[ready], types.arguments[type], Frame.READY));
+            int way = enter(open(plan.bodies[ready], plan.typeArguments[type], Frame.READY));
             if (way == RETURNED) {
                 return NEXT;
             }
@@ -2938,7 +2933,7 @@ public final class Reifytown {
                 return FAULT_NULL;
             }
             int type = store.typeOf(receiver);
-            Kind kind = type == NONE ? null : types.kinds[type];
+            Kind kind = type == NONE ? null : plan.typeKinds[type];
             int through = way / 10;
             if (kind == null || !plan.hasKind(through) || (plan.allAbove(kind.index) >> through & 1) == 0) {
                 return FAULT_WRONG;
@@ -2948,7 +2943,7 @@ public final class Reifytown {
                 return FAULT_NO_BODY;
             }
             Kind owner = plan.kinds[foundMethod / MOST_BODIES];
-            foundArgument = Plan.argumentFor(kind, types.arguments[type], owner);
+            foundArgument = Plan.argumentFor(kind, plan.typeArguments[type], owner);
             return foundArgument == MISSING ? FAULT_WRONG : 0;
         }
 
@@ -2958,7 +2953,7 @@ public final class Reifytown {
 
         private void countPiece(int name) {
             int argument = foundArgument;
-            if (!isWritten && argument != NONE && !types.isValue(argument)) {
+            if (!isWritten && argument != NONE && !plan.isValue(argument)) {
                 argument = OWN;
             }
             out.notePiece(foundMethod, name, argument);
