@@ -24,6 +24,7 @@ public final class RowsTest {
             randomRows(seed);
             randomRounds(seed);
             randomWords(seed);
+            randomTakes(seed);
         }
         Checks.close("RowsTest");
     }
@@ -382,6 +383,64 @@ public final class RowsTest {
         Checks.write(town, body, "I 0 5 4", "r 0");
         town.run(body, 0);
         Checks.same("15 random words " + seed, Checks.tells(town), due(locals.get(5), 22));
+    }
+
+    /** Rows grow out of a few words; what they were earlier is taken out of what they are later. */
+    private static void randomTakes(int seed) {
+        Random random = new Random(seed);
+        Reifytown town = town();
+        List<List<Integer>> locals = new ArrayList<>();
+        for (int i = 0; i < 6; i++) {
+            locals.add(new ArrayList<>());
+        }
+        int words = town.addBody();
+        town.addMethod(0, 5, 'v', words);
+        for (int i = 3; i < 6; i++) {
+            int name = random.nextInt(i - 2);
+            Checks.write(town, words, "D " + i + " 0 " + name);
+            locals.get(i).add(name);
+        }
+        int body = body(town, "N 2 2", "C 1 2 5 1", ". 3 2 0", ". 4 2 1", ". 5 2 2");
+        int steps = 3 + grow(town, words, locals, random, 2 + random.nextInt(16), 50) + 3 + 5;
+        Checks.write(town, words, "! 3 0 0", "! 4 0 1", "! 5 0 2");
+        List<List<Integer>> kept = new ArrayList<>();
+        for (int part = 0; part < 3; part++) {
+            steps += grow(town, body, locals, random, 1 + random.nextInt(3), 400);
+            if (part < 2) {
+                int held = 3 + random.nextInt(3);
+                Checks.write(town, body, "! " + held + " 2 " + part);
+                kept.add(locals.get(held));
+                steps++;
+            }
+        }
+        int front = 3 + random.nextInt(3);
+        int end = 3 + random.nextInt(3);
+        Checks.write(town, body, "P 1 " + front + " " + end);
+        rounds(locals, new int[][] {{1, 1, front, end}}, 1);
+        for (int part = 1; part >= 0; part--) {
+            Checks.write(town, body, ". 0 2 " + part, "M 1 1 0");
+            locals.set(0, kept.get(part));
+            rounds(locals, new int[][] {{0, 1, 1, 0}}, 1);
+        }
+        Checks.write(town, body, "I 0 1 2", "r 0");
+        town.run(body, 0);
+        Checks.same("15 random takes " + seed, Checks.tells(town), due(locals.get(1), steps + 5));
+    }
+
+    /** The locals 3 to 5 become longer, at most so often, and no longer than this; tells how often. */
+    private static int grow(Reifytown town, int body, List<List<Integer>> locals, Random random, int most, int longest) {
+        int steps = 0;
+        for (int i = 0; i < most; i++) {
+            int a = 3 + random.nextInt(3);
+            int b = 3 + random.nextInt(3);
+            int[] change = random.nextBoolean() ? new int[] {1, a, a, b} : new int[] {1, a, b, a};
+            if (locals.get(a).size() + locals.get(b).size() <= longest) {
+                Checks.write(town, body, "P " + change[1] + " " + change[2] + " " + change[3]);
+                rounds(locals, new int[][] {change}, 1);
+                steps++;
+            }
+        }
+        return steps;
     }
 
     /** Carries changes out on plain lists, at least once and until one is long, and tells how often. */
