@@ -1753,6 +1753,7 @@ public final class Reifytown {
                 begin(row, less);
             }
             for (int round = 0; round < MOST_ROUNDS && !isOver && hasAllLetters(); round++) {
+                findRuns();
                 writeRuns();
                 isOver = isPatternOneLetter();
                 if (isOver) {
@@ -1899,6 +1900,22 @@ public final class Reifytown {
 
         // ---- runs
 
+        /** Makes the letters right ones that stand in runs anywhere, and those at the ends of the pattern. */
+        private void findRuns() {
+            findEnds();
+            letters.forgetSides();
+            for (int rule = 0; rule < ruleCount; rule++) {
+                for (int i = starts[rule] + 1; i < starts[rule + 1]; i++) {
+                    int ahead = endOf(items[i - 1], 1);
+                    if (ahead == endOf(items[i], 0)) {
+                        letters.setSide(ahead, Letters.RIGHT);
+                    }
+                }
+            }
+            letters.setSide(endOf(items[starts[ruleCount - 1]], 0), Letters.RIGHT);
+            letters.setSide(endOf(items[starts[ruleCount] - 1], 1), Letters.RIGHT);
+        }
+
         /** Writes one letter in place of each run of a letter. */
         private void writeRuns() {
             openPass();
@@ -1910,7 +1927,9 @@ public final class Reifytown {
                         continue;
                     }
                     int part = ~items[i];
-                    addRun(rule, ends[2 * part], endRuns[2 * part]);
+                    if (ends[2 * part] != NONE) {
+                        addRun(rule, ends[2 * part], endRuns[2 * part]);
+                    }
                     if (hasItems(part)) {
                         endRun(rule, false);
                         write(~part);
@@ -1936,11 +1955,11 @@ public final class Reifytown {
 
         /** Writes the run that is held, or leaves it to where the rule stands, if it may go on there. */
         private void endRun(int rule, boolean isLast) {
-            boolean isFirst = ends[2 * rule] == NONE;
+            boolean isFirst = ends[2 * rule] == NONE && newStarts[rule] == written;
             if (held == NONE) {
                 return;
             }
-            if (isPart(rule) && (isFirst || isLast)) {
+            if (isPart(rule) && (isFirst || isLast) && letters.sideOf(held) == Letters.RIGHT) {
                 int end = isFirst ? 2 * rule : 2 * rule + 1;
                 ends[end] = held;
                 endRuns[end] = counts.store(heldRun);
