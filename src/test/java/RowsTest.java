@@ -25,6 +25,7 @@ public final class RowsTest {
             randomRounds(seed);
             randomWords(seed);
             randomTakes(seed);
+            randomSpelling(seed);
         }
         Checks.close("RowsTest");
     }
@@ -425,6 +426,37 @@ public final class RowsTest {
         Checks.write(town, body, "I 0 1 2", "r 0");
         town.run(body, 0);
         Checks.same("15 random takes " + seed, Checks.tells(town), due(locals.get(1), steps + 5));
+    }
+
+    /** A row is made of longer and longer ones, and what is taken out of it of one target after the other. */
+    private static void randomSpelling(int seed) {
+        Random random = new Random(seed);
+        int[] own = {0, 5, 3, 4};
+        Reifytown town = town();
+        int body = body(town, "N 2 2", "D 3 2 0", "D 4 2 1");
+        List<List<Integer>> locals = new ArrayList<>();
+        for (int i = 0; i < 6; i++) {
+            locals.add(new ArrayList<>(i == 3 || i == 4 ? List.of(i - 3) : List.of()));
+        }
+        for (int i = 0; i < 9; i++) {
+            int[] change = {1, i == 8 ? 5 : own[random.nextInt(2)], own[random.nextInt(4)], own[random.nextInt(4)]};
+            Checks.write(town, body, "P " + change[1] + " " + change[2] + " " + change[3]);
+            rounds(locals, new int[][] {change}, 1);
+        }
+        List<Integer> row = locals.get(5);
+        if (row.isEmpty()) {
+            return;
+        }
+        int count = Math.min(row.size(), 1 + random.nextInt(8));
+        int first = random.nextInt(row.size() - count + 1);
+        for (int target : row.subList(first, first + count)) {
+            Checks.write(town, body, (locals.get(1).isEmpty() ? ": 1 " : "P 1 1 ") + (target + 3));
+            locals.get(1).add(target);
+        }
+        Checks.write(town, body, "M 5 5 1", "I 0 5 2", "r 0");
+        rounds(locals, new int[][] {{0, 5, 5, 1}}, 1);
+        town.run(body, 0);
+        Checks.same("15 random spelling " + seed, Checks.tells(town), due(locals.get(5), 12 + count + 1));
     }
 
     /** The locals 3 to 5 become longer, at most so often, and no longer than this; tells how often. */
