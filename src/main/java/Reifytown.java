@@ -1493,9 +1493,9 @@ public final class Reifytown {
         private static final int MAKES = 6;
 
         // A left letter may be joined with a right one behind it.
-        static final byte NEITHER = 0;
-        static final byte LEFT = 1;
-        static final byte RIGHT = 2;
+        static final int NEITHER = 0;
+        static final int LEFT = 1;
+        static final int RIGHT = 2;
 
         private static final int FIRST_LETTERS = 64;
         private static final int FIRST_LINKS = 256;
@@ -1617,22 +1617,22 @@ public final class Reifytown {
         void setSides(int left, int right) {
             for (int i = 0; i < count; i++) {
                 boolean isLeft = baseOf(i) == baseOf(left);
-                sides[i] = isLeft ? LEFT : isRunAs(i, right) ? RIGHT : NEITHER;
+                setSide(i, isLeft ? LEFT : isRunAs(i, right) ? RIGHT : NEITHER);
             }
         }
 
         // ---- sides
 
-        byte sideOf(int letter) {
+        int sideOf(int letter) {
             return sides[letter];
         }
 
-        void setSide(int letter, byte side) {
-            sides[letter] = side;
+        void setSide(int letter, int side) {
+            sides[letter] = (byte) side;
         }
 
         void forgetSides() {
-            Arrays.fill(sides, 0, count, NEITHER);
+            Arrays.fill(sides, 0, count, (byte) NEITHER);
             Arrays.fill(firstLinks, 0, count, NONE);
             linkCount = 0;
         }
@@ -1665,7 +1665,7 @@ public final class Reifytown {
             sides[right] = RIGHT;
             for (int i = 0; i < count; i++) {
                 if (sides[i] == NEITHER) {
-                    sides[i] = leaningOf(i) < 0 ? RIGHT : LEFT;
+                    setSide(i, leaningOf(i) < 0 ? RIGHT : LEFT);
                 }
             }
         }
@@ -1674,7 +1674,7 @@ public final class Reifytown {
             double leaning = 0;
             for (int i = firstLinks[letter]; i >= 0; i = nextLinks[i]) {
                 boolean isBehind = others[i] >= 0;
-                byte side = sides[isBehind ? others[i] : ~others[i]];
+                int side = sides[isBehind ? others[i] : ~others[i]];
                 double weight = side == NEITHER ? weights[i] : side == (isBehind ? RIGHT : LEFT) ? weights[i] * 2 : 0;
                 leaning = isBehind ? leaning + weight : leaning - weight;
             }
@@ -1700,9 +1700,6 @@ public final class Reifytown {
         // What is known of a part: nothing, or that it is written out where it stands.
         private static final int UNUSED = 0;
         private static final int WRITTEN_OUT = 1 << 31;
-
-        // So little that all that the row has counts less than a letter of the pattern.
-        private static final double NEARLY_NOTHING = 1e-300;
 
         private final Rows rows;
         private final Counts counts;
@@ -2123,7 +2120,8 @@ public final class Reifytown {
         private void weigh(boolean isByPattern) {
             Arrays.fill(weights, 0, ruleCount, isByPattern ? 0 : 1);
             if (isByPattern) {
-                weights[ruleCount - 2] = NEARLY_NOTHING;
+                // So little that all letters of the row count less than one of the pattern.
+                weights[ruleCount - 2] = 1e-300;
                 weights[ruleCount - 1] = 1;
             }
             for (int rule = ruleCount - 1; rule >= 0 && isByPattern; rule--) {
