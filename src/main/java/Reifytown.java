@@ -1505,7 +1505,7 @@ public final class Reifytown {
         private int[] makes = new int[FIRST_LETTERS];
         private long[] keys = new long[FIRST_LETTERS];
         private long[] lengths = new long[FIRST_LETTERS];
-        private byte[] sides = new byte[FIRST_LETTERS];
+        private int[] sides = new int[FIRST_LETTERS];
         private int count = 0;
         // The last letter in each slot, and the one ahead of each.
         private int[] slots = new int[FIRST_LETTERS];
@@ -1628,11 +1628,11 @@ public final class Reifytown {
         }
 
         void setSide(int letter, int side) {
-            sides[letter] = (byte) side;
+            sides[letter] = side;
         }
 
         void forgetSides() {
-            Arrays.fill(sides, 0, count, (byte) NEITHER);
+            Arrays.fill(sides, 0, count, NEITHER);
             Arrays.fill(firstLinks, 0, count, NONE);
             linkCount = 0;
         }
@@ -1640,12 +1640,22 @@ public final class Reifytown {
         /** Tells that a letter stands ahead of another one, so often. */
         void addPair(int letter, int behind, double weight) {
             if (linkCount + 2 > others.length) {
-                nextLinks = Arrays.copyOf(nextLinks, linkCount * 2);
-                others = Arrays.copyOf(others, linkCount * 2);
-                weights = Arrays.copyOf(weights, linkCount * 2);
+                growLinks();
             }
             link(letter, behind, weight);
             link(behind, ~letter, weight);
+        }
+
+        private void growLinks() {
+            int wanted = linkCount * 2;
+            nextLinks = Arrays.copyOf(nextLinks, wanted);
+            others = Arrays.copyOf(others, wanted);
+            double[] oldWeights = weights;
+            weights = new double[wanted];
+            // One by one: the language has no function of the library for doubles.
+            for (int i = 0; i < linkCount; i++) {
+                weights[i] = oldWeights[i];
+            }
         }
 
         private void link(int letter, int other, double weight) {
@@ -2118,7 +2128,10 @@ public final class Reifytown {
         }
 
         private void weigh(boolean isByPattern) {
-            Arrays.fill(weights, 0, ruleCount, isByPattern ? 0 : 1);
+            // One by one: the language has no function of the library for doubles.
+            for (int rule = 0; rule < ruleCount; rule++) {
+                weights[rule] = isByPattern ? 0 : 1;
+            }
             if (isByPattern) {
                 // So little that all letters of the row count less than one of the pattern.
                 weights[ruleCount - 2] = 1e-300;
