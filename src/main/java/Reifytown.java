@@ -1381,10 +1381,12 @@ public final class Reifytown {
             if (left == NONE || right == NONE) {
                 return left == NONE ? right : left;
             }
-            for (int i = slots[slotOf(left, right)]; i >= 0; i = nexts[i]) {
+            int i = slots[slotOf(left, right)];
+            for (int turn = 0; turn < partCount && i >= 0; turn++) {
                 if (lefts[i] == left && rights[i] == right) {
                     return i;
                 }
+                i = nexts[i];
             }
             if (!reserve()) {
                 return left;
@@ -1532,10 +1534,13 @@ public final class Reifytown {
         int find(int base, int make, long key, long length) {
             int made = base * MAKES + make;
             int i = slots[slotOf(made, key)];
-            while (i >= 0 && (makes[i] != made || keys[i] != key || make == RUN && !counts.isEqual(lengths[i], length))) {
+            for (int turn = 0; turn < count && i >= 0; turn++) {
+                if (makes[i] == made && keys[i] == key && (make != RUN || counts.isEqual(lengths[i], length))) {
+                    return i;
+                }
                 i = nexts[i];
             }
-            return i;
+            return NONE;
         }
 
         /** The letter that is made so, which is a new one with this length if there is none. */
@@ -1682,11 +1687,13 @@ public final class Reifytown {
 
         private double leaningOf(int letter) {
             double leaning = 0;
-            for (int i = firstLinks[letter]; i >= 0; i = nextLinks[i]) {
+            int i = firstLinks[letter];
+            for (int turn = 0; turn < linkCount && i >= 0; turn++) {
                 boolean isBehind = others[i] >= 0;
                 int side = sides[isBehind ? others[i] : ~others[i]];
                 double weight = side == NEITHER ? weights[i] : side == (isBehind ? RIGHT : LEFT) ? weights[i] * 2 : 0;
                 leaning = isBehind ? leaning + weight : leaning - weight;
+                i = nextLinks[i];
             }
             return leaning;
         }
@@ -2373,6 +2380,8 @@ public final class Reifytown {
     private static final class Machine {
         // The exception left an iterator that stood still since its handler was found.
         private static final int STALE = -2;
+        // Far more than the idle parts, as many as a row is deep, between the targets that take 1000 steps.
+        private static final int MOST_PARTS_CALLED = 1 << 24;
 
         private final Plan plan;
         private final Store store = new Store();
@@ -3059,9 +3068,11 @@ public final class Reifytown {
             int part = row;
             int way = RETURNED;
             int mark = rows.counts.mark();
-            for (long at = 0; way == RETURNED && rows.isBefore(at, row); at = rows.placeBehind(at, part, mark)) {
+            long at = 0;
+            for (int turn = 0; turn < MOST_PARTS_CALLED && way == RETURNED && rows.isBefore(at, row); turn++) {
                 part = rows.partAt(row, at);
                 way = rows.isIdle(part) ? callIdle(part) : callTarget(frame, rows.targetOf(part), body.cs[i]);
+                at = rows.placeBehind(at, part, mark);
             }
             rows.counts.release(mark);
             return way == RETURNED ? set(frame, body.as[i], result) : way;

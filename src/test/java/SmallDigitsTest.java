@@ -10,8 +10,8 @@ import javax.tools.JavaCompiler;
 import javax.tools.ToolProvider;
 
 /**
- * Runs RowsTest against the same source with other constants: numbers of targets from 8 on are large, and no ladder is
- * short. So what only rows of more than 2 to the power of 60 targets use is held against plain lists.
+ * Runs RowsTest against the same source with other constants: numbers of targets from 8 on are large. So what only
+ * rows of more than 2 to the power of 60 targets use is held against plain lists.
  */
 public final class SmallDigitsTest {
     private static final String[][] CHANGES = {
