@@ -1229,7 +1229,7 @@ public final class Reifytown {
         private int[] lefts = new int[FIRST_PARTS];
         private int[] rights = new int[FIRST_PARTS];
         private long[] lengths = new long[FIRST_PARTS];
-        private byte[] marks = new byte[FIRST_PARTS];
+        private int[] marks = new int[FIRST_PARTS];
         private int partCount = 0;
         // The parts that are made of two, by these two: the last one in each slot, and the one ahead of each.
         private int[] slots = new int[FIRST_PARTS];
@@ -1366,7 +1366,7 @@ public final class Reifytown {
             if ((marks[part] & ASKED) == 0) {
                 return NONE;
             }
-            marks[part] = (byte) (marks[part] & ~ASKED | NOTED);
+            marks[part] = marks[part] & ~ASKED | NOTED;
             if (lefts[part] >= 0) {
                 ask(lefts[part]);
                 ask(rights[part]);
@@ -1407,7 +1407,7 @@ public final class Reifytown {
             lefts[part] = left;
             rights[part] = right;
             lengths[part] = length;
-            marks[part] = (byte) mark;
+            marks[part] = mark;
             if (left >= 0) {
                 putIntoSlot(part);
             }

@@ -23,7 +23,6 @@ public final class LanguageTest {
         "java/lang/System.arraycopy(Ljava/lang/Object;ILjava/lang/Object;II)V",
         "java/util/Arrays.copyOf([II)[I",
         "java/util/Arrays.copyOf([JI)[J",
-        "java/util/Arrays.copyOf([BI)[B",
         "java/util/Arrays.fill([II)V",
         "java/util/Arrays.fill([JJ)V",
         "java/util/Arrays.fill([IIII)V",
