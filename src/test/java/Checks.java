@@ -86,7 +86,8 @@ final class Checks {
                 text.append('l');
             }
         }
-        for (int i = 0; i < town.outputs(); i++) {
+        int outputs = town.outputs();
+        for (int i = 0; i < outputs; i++) {
             text.append(' ').append(town.output(i));
         }
         return text.toString();

@@ -17,6 +17,7 @@ public final class RowsTest {
         rowsOfEachLength();
         noFourthPowers();
         shareOfCalls();
+        callsAroundPowers();
         for (int seed = from; seed < to; seed += 10) {
             randomLongRows(seed);
         }
@@ -269,6 +270,26 @@ public final class RowsTest {
             town.run(body, 0);
             long calls = (1L << 40) + (1L << 16) + more;
             Checks.same("29 the nearest float, " + more, town.pieceShare(), 1f / (float) calls);
+        }
+    }
+
+    /** As many calls as a power of 2, and one less or more, as it is and with a 1 in the midst of its digits. */
+    private static void callsAroundPowers() {
+        for (int power : new int[] {1, 2, 7, 8, 15, 16, 23, 24, 25, 29, 30, 31, 32, 39, 40, 41, 58, 59, 60, 61}) {
+            for (int lower : new int[] {0, power / 2, power * 3 / 5}) {
+                for (int more = -1; more <= 1; more++) {
+                    Reifytown town = town();
+                    int body = body(town, "N 2 2", "D 3 2 3", ": 1 3", "= 4 " + lower, "= 5 1", "z 4 9", "P 1 1 1", "- 4 4 5", "j 0 5",
+                        lower == 0 ? "e" : "P 1 1 3", "= 4 " + (power - lower), "z 4 15", "P 1 1 1", "- 4 4 5", "j 0 11",
+                        more < 0 ? "M 1 1 3" : more > 0 ? "P 1 1 3" : "e", "I 4 1 5", "r 4");
+                    Checks.runs("15 calls around powers", town, body, 0, "r0");
+                    long calls = (1L << power) + (lower == 0 ? 0 : 1L << power - lower) + more;
+                    String what = " calls, 2 to the power of " + power + " and " + lower + " and " + more;
+                    Checks.same("25" + what, town.calls(), (int) Math.min(Integer.MAX_VALUE, calls));
+                    Checks.same("24" + what, town.pieces(), 1);
+                    Checks.same("29" + what, town.pieceShare(), 1f / (float) calls);
+                }
+            }
         }
     }
 
