@@ -1,56 +1,7 @@
-import java.util.NoSuchElementException;
-
 /** Holds Reifytown against PlainTown over many random towns: every call must be answered alike. */
-public final class RandomRunsTest {
-    private static final String OPS = "=:+-<?jzNd.!BUTCGEQySsDPMIxrep";
-    private long seed;
-    private Reifytown town;
-    private PlainTown plain;
-    private final StringBuilder told = new StringBuilder();
-    private static final int[] ends = new int[128];
-    private static final int[] thrown = new int[8];
-    private static long finals, pieces, boxes, calls, steps, skipped;
-
-    private interface Answer { Object get(); }
-
+public final class RandomRunsTest extends BothTowns {
     private RandomRunsTest(long seed) {
-        this.seed = seed * 0x9E3779B97F4A7C15L + 12345;
-    }
-
-    private int upTo(int n) {
-        seed = seed * 6364136223846793005L + 1442695040888963407L;
-        return (int) ((seed >>> 33) % n);
-    }
-
-    private boolean chance(int percent) {
-        return upTo(100) < percent;
-    }
-
-    private char of(String letters) {
-        return letters.charAt(upTo(letters.length()));
-    }
-
-    private static Object answer(Answer a) {
-        try {
-            return a.get();
-        } catch (IndexOutOfBoundsException e) {
-            return "throws " + IndexOutOfBoundsException.class;
-        } catch (PlainTown.TooBig e) {
-            throw e;
-        } catch (IllegalArgumentException | UnsupportedOperationException | IllegalStateException
-                | NoSuchElementException | ArithmeticException e) {
-            return "throws " + e.getClass();
-        }
-    }
-
-    private Object both(String call, Answer a, Answer b) {
-        Object want = answer(b);
-        Object got = answer(a);
-        told.append(call).append(" -> ").append(want).append('\n');
-        if (!want.equals(got)) {
-            throw new IllegalStateException(told + "but answered " + got);
-        }
-        return want;
+        super(seed);
     }
 
     private void build(int wrongness) {
@@ -60,25 +11,24 @@ public final class RandomRunsTest {
             boolean p = chance(50);
             char v = l == 'i' && p ? of("+-=") : chance(wrongness) ? of("+-=") : '=';
             char m = p ? of("------vr") : chance(wrongness) ? of("vr") : '-';
-            both("addKind " + l + p + v + m, () -> town.addKind(l, p, v, m), () -> plain.addKind(l, p, v, m));
+            addKind(l, p, v, m);
             if (chance(30)) makeType();
             for (int n = upTo(4); n > 0; n--) addAbove(i, chance(50), wrongness);
         }
         for (int n = 5 + upTo(20); n > 0; n--) makeType();
         for (int n = upTo(4); n > 0; n--) addAbove(upTo(Math.max(1, plain.kinds.size())), chance(50), wrongness);
         int bodies = 4 + upTo(11);
-        for (int i = 0; i < bodies; i++) both("addBody", () -> town.addBody(), () -> plain.addBody());
+        for (int i = 0; i < bodies; i++) addBody();
         for (int n = 20 + upTo(40); n > 0; n--) {
             int k = upTo(kinds), name = chance(wrongness) ? 6 : upTo(3), b = 2 + upTo(bodies - 2);
             char l = plain.noKind(k) || chance(wrongness) ? of("vonad") : of(plain.kinds.get(k).letter == 'i' ? "add" : "vvoon");
-            int body = l == 'a' ? -1 : b;
-            both("addMethod " + k + " " + name + " " + l + " " + body, () -> town.addMethod(k, name, l, body), () -> plain.addMethod(k, name, l, body));
+            addMethod(k, name, l, l == 'a' ? -1 : b);
             int o = upTo(kinds), name2 = upTo(3);
-            if (chance(40)) both("tell " + k + " " + o + " " + name2 + " " + b, () -> town.tell(k, o, name2, b), () -> plain.tell(k, o, name2, b));
+            if (chance(40)) tell(k, o, name2, b);
         }
         for (int n = upTo(4); n > 0; n--) {
             int k = upTo(kinds), b = upTo(bodies + 1) - 1;
-            both("setReady " + k + " " + b, () -> town.setReady(k, b), () -> plain.setReady(k, b));
+            setReady(k, b);
         }
         for (int i = 0; i < bodies; i++) writeBody(i, bodies, wrongness);
     }
@@ -88,22 +38,19 @@ public final class RandomRunsTest {
         int o = upTo(plain.kinds.size());
         for (int n = 0; n < 8 && (plain.kinds.get(o).letter == 'c') != isParent; n++) o = upTo(plain.kinds.size());
         int other = o;
-        int arg = !plain.kinds.get(other).par || chance(wrongness) ? -1 : chance(70) ? -2 : upTo(town.types() + (chance(wrongness) ? 1 : 0));
-        if (isParent) {
-            both("setParent " + kind + " " + other + " " + arg, () -> town.setParent(kind, other, arg), () -> plain.setParent(kind, other, arg));
-        } else {
-            both("addInterface " + kind + " " + other + " " + arg, () -> town.addInterface(kind, other, arg), () -> plain.addInterface(kind, other, arg));
-        }
+        int arg = !plain.kinds.get(other).par || chance(wrongness) ? -1 : chance(70) ? -2 : upTo(plain.types() + (chance(wrongness) ? 1 : 0));
+        if (isParent) setParent(kind, other, arg);
+        else addInterface(kind, other, arg);
     }
 
     private void makeType() {
-        int k = upTo(Math.max(1, plain.kinds.size())), arg = chance(40) ? -1 : upTo(town.types() + 1);
-        both("type " + k + " " + arg, () -> town.type(k, arg), () -> plain.type(k, arg));
+        int k = upTo(Math.max(1, plain.kinds.size())), arg = chance(40) ? -1 : upTo(plain.types() + 1);
+        addType(k, arg);
     }
 
     private int pickType() {
         int n = upTo(12);
-        return n == 0 ? -1 : n < 3 ? -2 - upTo(10) : n < 7 && plain.types.size() > 3 ? 2 + upTo(plain.types.size() - 2) : n == 7 ? 0 : upTo(town.types() + (chance(5) ? 3 : 0));
+        return n == 0 ? -1 : n < 3 ? -2 - upTo(10) : n < 7 && plain.types.size() > 3 ? 2 + upTo(plain.types.size() - 2) : n == 7 ? 0 : upTo(plain.types() + (chance(5) ? 3 : 0));
     }
 
     /** What each local of the body that is written probably holds, by the letters of returned(), and of which type. */
@@ -170,16 +117,14 @@ public final class RandomRunsTest {
         }
         if (body < 2 ? chance(60) : chance(30)) {
             int mid = length / 2;
-            both("addRegion " + body + " 2 " + mid + " c -1 " + (mid + 1),
-                () -> town.addRegion(body, 2, mid, 'c', -1, mid + 1), () -> plain.addRegion(body, 2, mid, 'c', -1, mid + 1));
+            addRegion(body, 2, mid, 'c', -1, mid + 1);
         }
         for (int n = upTo(5); n > 0; n--) {
             char l = of("ffffcccw");
             int first = upTo(Math.max(1, length)), last = first + upTo(4) + (chance(30) ? upTo(20) : 0);
             int number = l == 'w' ? upTo(bodies) : chance(70) ? -1 : upTo(7);
             int place = chance(85) ? upTo(Math.max(1, length + 1)) : upTo(26);
-            both("addRegion " + body + " " + first + " " + last + " " + l + " " + number + " " + place,
-                () -> town.addRegion(body, first, last, l, number, place), () -> plain.addRegion(body, first, last, l, number, place));
+            addRegion(body, first, last, l, number, place);
         }
     }
 
@@ -229,103 +174,38 @@ public final class RandomRunsTest {
         }
         if (chance(wrongness)) b += upTo(60) - 30;
         if (chance(wrongness)) c += upTo(60) - 30;
-        int aa = a, bb = b, cc = c;
-        both("addStep " + body + " " + op + " " + a + " " + b + " " + c + " " + d,
-            () -> town.addStep(body, op, aa, bb, cc, d), () -> plain.addStep(body, op, aa, bb, cc, d));
+        addStep(body, op, a, b, c, d);
     }
 
     private void ask() {
-        for (int n = 0; n < 25; n++) {
-            int t = upTo(town.types() + 1), u = upTo(town.types()), k = upTo(10), name = upTo(4);
+        for (int n = 0; n < 12 && asked < 510; n++) {
+            int t = upTo(plain.types() + 1), u = upTo(plain.types()), k = upTo(10), name = upTo(4);
             both("isBelow " + t + " " + u, () -> town.isBelow(t, u), () -> plain.isBelow(t, u));
             both("found " + t + " " + k + " " + name, () -> town.found(t, k, name), () -> plain.found(t, k, name));
         }
     }
 
     private void runSome() {
-        for (int n = 0; n < 14; n++) {
-            int b = chance(80) ? upTo(2) : upTo(14), arg = upTo(5) - 1;
-            PlainTown.copies = 0;
-            if (chance(60)) {
-                both("run " + b + " " + arg, () -> town.run(b, arg), () -> plain.run(b, arg));
-            } else if (chance(50)) {
-                both("runWritten " + b + " " + arg, () -> town.runWritten(b, arg), () -> plain.runWritten(b, arg));
-            } else {
-                both("isSame " + b + " " + arg, () -> town.isSame(b, arg), () -> plain.isSame(b, arg));
-            }
-            look();
+        for (int n = 0; n < 14 && asked < 512 - 60; n++) {
+            perform(chance(80) ? upTo(2) : upTo(14), upTo(5) - 1);
         }
-    }
-
-    private void look() {
-        both("returned", () -> town.returned(), () -> plain.returned());
-        both("number", () -> town.number(), () -> plain.number());
-        both("unhandled", () -> town.unhandled(), () -> plain.unhandled());
-        both("outputs", () -> town.outputs(), () -> plain.outputs());
-        for (int i = 0; i < Math.min(20, plain.outputs()); i++) {
-            int at = i;
-            both("output " + i, () -> town.output(at), () -> plain.output(at));
-        }
-        both("steps", () -> town.steps(), () -> plain.steps());
-        both("pieces", () -> town.pieces(), () -> plain.pieces());
-        both("calls", () -> town.calls(), () -> plain.calls());
-        both("boxes", () -> town.boxes(), () -> plain.boxes());
-        both("finals", () -> town.finals(), () -> plain.finals());
-        both("types", () -> town.types(), () -> plain.types());
-        both("allSteps", () -> town.allSteps(), () -> plain.allSteps());
-        both("pieceShare", () -> town.pieceShare(), () -> plain.pieceShare());
-        both("meanSteps", () -> town.meanSteps(), () -> plain.meanSteps());
-        for (int i = 0; i < 6; i++) {
-            int t = upTo(62), s = upTo(3);
-            both("staticOf " + t + " " + s, () -> town.staticOf(t, s), () -> plain.staticOf(t, s));
-        }
-        count();
-    }
-
-    private void count() {
-        if (plain.last == null) return;
-        ends[plain.last.end]++;
-        if (plain.last.end == 'u') thrown[plain.last.unhandled >= 0 && plain.last.unhandled < 7 ? plain.last.unhandled : 7]++;
-        finals += plain.last.finals; pieces += plain.last.pieces.size(); boxes += plain.last.boxes;
-        calls += plain.last.calls; steps += plain.last.steps;
     }
 
     /** Whether the first two bodies are mostly about delegates, and many others have no steps. */
     private boolean hasRows;
 
-    private void live() {
+    @Override
+    void live() {
         hasRows = chance(15);
-        town = new Reifytown();
-        plain = new PlainTown();
-        int wrongness = chance(50) ? 0 : 3;
-        try {
-            build(wrongness);
-            ask();
-            runSome();
-            ask();
-        } catch (PlainTown.TooBig e) {
-            skipped++;
-        }
+        build(chance(50) ? 0 : 3);
+        ask();
+        runSome();
+        ask();
     }
 
     public static void main(String[] args) {
         int from = args.length > 0 ? Integer.parseInt(args[0]) : 0;
         int to = args.length > 1 ? Integer.parseInt(args[1]) : 10000;
-        for (int i = from; i < to; i++) {
-            try {
-                new RandomRunsTest(i).live();
-            } catch (IllegalStateException e) {
-                System.out.println("town " + i + ":\n" + e.getMessage());
-                System.exit(1);
-            }
-        }
-        System.out.println("RandomRunsTest: " + (to - from) + " passed, 0 failed");
-        if (args.length > 0) {
-            System.out.println("r " + ends['r'] + " u " + ends['u'] + " l " + ends['l'] + " thrown "
-                + java.util.Arrays.toString(thrown) + " finals " + finals + " pieces " + pieces + " boxes " + boxes
-                + " calls " + calls + " steps " + steps + " skipped " + skipped);
-            for (char op : OPS.toCharArray()) System.out.print(op + " " + PlainTown.done[op] + "/" + PlainTown.tried[op] + "  ");
-            System.out.println();
-        }
+        liveAll("RandomRunsTest", from, to, args.length > 0, RandomRunsTest::new);
     }
 }

@@ -533,9 +533,10 @@ public final class RowsTest {
         }
         int left = 1000 - steps - 1;
         StringBuilder text = new StringBuilder(2 * row.size() + 1 <= left ? "r0" : "l");
-        for (int i = 0; i < row.size() && 2 * i + 2 <= left; i++) {
+        int outputs = Math.min(row.size(), left / 2);
+        for (int i = 0; i < Math.min(Checks.MOST_TOLD, outputs); i++) {
             text.append(' ').append(row.get(i) + 1);
         }
-        return text.toString();
+        return text.append(outputs > Checks.MOST_TOLD ? " of " + outputs : "").toString();
     }
 }

@@ -1078,7 +1078,7 @@ public final class RunsTest {
         int dear = body(town, "N 2 3", "N 4 2", "! 2 4 0", "B 3 4", "G 5 2 10 1", "E 3 5 3", "D 3 2 10", "P 3 3 3",
             "I 3 3 1", "j 0 0");
         boolean isSame = true;
-        for (int i = 0; i < 500; i++) {
+        for (int i = 0; i < 490; i++) {
             isSame &= town.isSame(dear, i);
         }
         Checks.same("31 many times", isSame, true);

@@ -179,7 +179,11 @@ final class Twins {
         for (int i = 0; i < 7; i++) {
             int at = i;
             add(told, () -> town.run(at, 7));
-            add(told, () -> Checks.tells(town));
+            add(told, town::returned);
+            add(told, town::number);
+            add(told, town::unhandled);
+            add(told, town::outputs);
+            add(told, () -> town.output(town.outputs() - 1));
             add(told, town::steps);
             add(told, town::finals);
         }
