@@ -715,6 +715,7 @@ public final class RunBoundsTest {
         all.addRegion(outer, 1, 1, 'w', yes, 3);
         runs("all filters ahead of what is done at last", all, outer, 5, "rn5 5 5 5 5 77");
         Checks.same("25 four filters and a method", all.calls(), 5);
+        goingOn();
         Reifytown throwing = new Reifytown();
         int other = Checks.body(throwing, "= 2 99", "x 2");
         int asks = Checks.body(throwing, "x 1", "r 5");
@@ -723,6 +724,30 @@ public final class RunBoundsTest {
         runs("what a filter throws is forgotten", throwing, asks, 5, "u5");
         throwing.addRegion(asks, 0, 0, 'c', 5, 1);
         runs("what was thrown goes on", throwing, asks, 5, "rn5");
+    }
+
+    /** While filters are asked, the iterator that threw still goes on; when its handler begins, it is over. */
+    private static void goingOn() {
+        Reifytown town = Towns.of("c");
+        town.type(0, -1);
+        int within = Checks.body(town, "x 1", "e", "p 1", "e");
+        town.addRegion(within, 0, 0, 'f', 0, 2);
+        town.addMethod(0, 0, 'v', within);
+        int asks = Checks.body(town, ". 3 0 0", "E 4 3 5", "= 2 1", "r 2", "p 5", "r 4");
+        town.addRegion(asks, 1, 1, 'c', 5, 4);
+        int body = Checks.body(town, "N 0 2", "G 3 0 0 1", "! 3 0 0", "E 4 3 5", "e", "E 4 3 5", "r 4");
+        town.addRegion(body, 3, 3, 'w', asks, 5);
+        // The local 4 of the filter is null, which is no number: it does not accept.
+        runs("E in a filter of one that goes on", town, body, 6, "u6 5");
+        town.addRegion(body, 3, 3, 'c', -1, 5);
+        runs("it is over behind that", town, body, 6, "rn0 5 6");
+        Checks.same("27 what it had to do at last", town.finals(), 1);
+        int ownHandler = Checks.body(town, "r 1", "e", "x 1", "p 1", "r 5");
+        town.addRegion(ownHandler, 0, 0, 'f', 0, 2);
+        town.addRegion(ownHandler, 0, 1, 'c', -1, 3);
+        runs("what is done at last is not within what it is told for", town, ownHandler, 6, "u6");
+        town.addRegion(ownHandler, 2, 2, 'c', -1, 4);
+        runs("but where it lies", town, ownHandler, 6, "rn6");
     }
 
     /** Made ready once for each type, ahead of the first use; others see what is there while it goes on. */
