@@ -16,6 +16,7 @@ public final class RowsTest {
         changedReceivers();
         rowsOfEachLength();
         noFourthPowers();
+        allSmallRows();
         shareOfCalls();
         callsAroundPowers();
         for (int seed = from; seed < to; seed += 10) {
@@ -243,6 +244,38 @@ public final class RowsTest {
                     "z 4 17", "j 0 12", "M 4 1 0", "? 4 4 1", "r 4");
                 Checks.runs("15 but two in a row, " + times + " and " + more, town, body, 0, "rn0");
             }
+        }
+    }
+
+    /** All rows of two names up to six targets, with all up to four taken out, made from the front and from the end. */
+    private static void allSmallRows() {
+        for (int row = 2; row < 128; row++) {
+            for (int less = 2; less < 32; less++) {
+                Reifytown town = town();
+                String text = Integer.toBinaryString(row).substring(1);
+                String taken = Integer.toBinaryString(less).substring(1);
+                int at = text.lastIndexOf(taken);
+                String left = at < 0 ? text : text.substring(0, at) + text.substring(at + taken.length());
+                StringBuilder due = new StringBuilder(left.isEmpty() ? "u1" : "r0");
+                for (char name : left.toCharArray()) {
+                    due.append(' ').append(name - '0' + 1);
+                }
+                int body = body(town, "N 2 2", "D 3 2 0", "D 4 2 1");
+                boolean isFront = (row + less) % 2 == 0;
+                write(town, body, 0, text, isFront);
+                write(town, body, 5, taken, !isFront);
+                Checks.write(town, body, "M 1 0 5", "I 1 1 2");
+                Checks.runs("15 " + taken + " out of " + text, town, body, 0, due.toString());
+            }
+        }
+    }
+
+    /** The names 0 and 1 are held by the locals 3 and 4. */
+    private static void write(Reifytown town, int body, int local, String names, boolean isFront) {
+        Checks.write(town, body, "d " + local + " 2");
+        for (int i = 0; i < names.length(); i++) {
+            int name = names.charAt(isFront ? i : names.length() - 1 - i) - '0' + 3;
+            Checks.write(town, body, "P " + local + (isFront ? " " + local + " " + name : " " + name + " " + local));
         }
     }
 
